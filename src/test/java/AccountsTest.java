@@ -1,0 +1,253 @@
+/** The promises 42 to 49. */
+final class AccountsTest {
+    private AccountsTest() {
+    }
+
+    static void promise42Energy() {
+        Dramwright d = new Dramwright();
+        d.go(10);
+        Check.same("2 for each rank with none open", d.energy(), 40L);
+        d.read(0, 0);
+        d.go(1);
+        Check.same("a 10, and 3 with an open bank", d.energy(), 40L + 10 + 3 + 2);
+        d.go(10);
+        Check.same("r 8", d.energy(), 40L + 10 + 8 + 11 * 5);
+        d.rows('c');
+        d.go(1);
+        Check.same("p 4", d.energy(), 40L + 10 + 8 + 4 + 11 * 5 + 4);
+        d.policy('r', 5);
+        d.go(10);
+        Check.same("both rest", d.rests(0) && d.rests(1), true);
+        long before = d.energy();
+        d.go(10);
+        Check.same("1 at rest", d.energy() - before, 20L);
+    }
+
+    static void promise42EnergyOfOtherCommands() {
+        long idle = 4;
+        Dramwright d = new Dramwright();
+        d.write(0, 0, 1, 15, false);
+        d.go(10);
+        Check.same("w 8", d.energy(), 10L * 5 + 10 + 8);
+        Dramwright e = new Dramwright();
+        e.policy('a', 1);
+        e.go(1);
+        Check.same("f 40", e.energy(), 40 + idle);
+        Dramwright g = new Dramwright();
+        g.policy('a', 1);
+        g.policy('g', 1);
+        g.go(1);
+        Check.same("g 12", g.energy(), 12 + idle);
+        Dramwright t = new Dramwright();
+        t.train(0);
+        t.go(1);
+        Check.same("t 20", t.energy(), 20 + idle);
+        Dramwright r = new Dramwright();
+        r.policy('r', 1);
+        r.go(2);
+        Check.same("d 1", r.energy(), idle + 1 + 1 + 2);
+        r.go(1);
+        Check.same("d 1", r.energy(), idle + 4 + 1 + 2);
+        long before = r.energy();
+        r.read(0, 0);
+        r.go(3);
+        Check.same("x 1 as soon as S lets it", r.energy() - before, 2L + 2 + 1 + 2 + 1);
+    }
+
+    static void promise43WaitsThrowsAndSums() {
+        Dramwright d = new Dramwright();
+        Check.illegal("no such cause", () -> d.waits('x'));
+        Check.illegal("capital", () -> d.waits('F'));
+        d.read(0, 0);
+        d.read(1, 300);
+        d.write(1, 300, 5, 15, false);
+        d.finish(300);
+        Check.same("all together", Check.allWaits(d), (long) d.waited(0) + d.waited(1) + d.waited(2));
+    }
+
+    static void promise43WaitsOfOneBank() {
+        Dramwright d = new Dramwright();
+        d.read(0, 0);
+        d.finish(100);
+        Check.same("A", d.waits('b'), 4L);
+        d.read(0, Check.at(0, 0, 1, 0));
+        d.finish(100);
+        Check.same("p at 11, a at 15, r at 19", Check.trace(d), "a00:0@0 r00:0@4 p00@11 a00:1@15 r00:0@19");
+        Check.same("B and A", d.waits('b'), 4L + 8);
+        Check.same("no others", Check.allWaits(d), 12L);
+    }
+
+    static void promise43WaitsOfSharedDistances() {
+        Dramwright d = new Dramwright();
+        d.read(0, Check.at(0, 0, 0, 0));
+        d.read(0, Check.at(0, 1, 0, 0));
+        d.go(1);
+        Check.same("E", d.waits('s'), 1L);
+        Check.same("A", d.waits('b'), 1L);
+        d.go(3);
+        Check.same("E for two more, then A", d.waits('s'), 3L);
+        Check.same("A", d.waits('b'), 1L + 3 + 1);
+        d.go(20);
+        Check.same("trace", Check.trace(d), "a00:0@0 a01:0@3 r00:0@4 r01:0@7");
+        Check.same("H at 4 to 6, ahead of A", d.waits('s'), 3L + 3);
+        Check.same("A", d.waits('b'), 5L);
+    }
+
+    static void promise43WaitsOfTheQueue() {
+        Dramwright d = new Dramwright();
+        d.read(0, Check.at(0, 0, 0, 0));
+        d.read(0, Check.at(1, 0, 0, 0));
+        d.go(1);
+        Check.same("the rank 1 could have been opened", d.waits('q'), 1L);
+        d.write(0, Check.at(0, 3, 0, 0), 1, 15, false);
+        d.go(1);
+        Check.same("writes are not looked at", d.waits('h'), 1L);
+        d.read(0, Check.at(0, 0, 0, 0));
+        d.go(1);
+        Check.same("nor one behind an older one for its address", d.waits('h'), 3L);
+    }
+
+    static void promise43WaitsOfRestAndRefresh() {
+        Dramwright d = new Dramwright();
+        d.policy('r', 5);
+        d.go(7);
+        d.read(0, 0);
+        d.go(2);
+        Check.same("S from the d at 5", d.waits('d'), 2L);
+        d.go(1);
+        Check.same("R", d.waits('s'), 1L);
+        Dramwright e = new Dramwright();
+        e.policy('i', 50);
+        e.read(0, 0);
+        e.finish(100);
+        Check.pass(e, (int) (400 - e.cycle()));
+        long before = e.waits('f');
+        e.read(0, 1);
+        e.go(1);
+        Check.same("p", Check.trace(e, 2), "p00@400");
+        e.go(3);
+        Check.same("32 are owed", e.waits('f') - before, 4L);
+        e.go(1);
+        Check.same("f", (char) e.command(e.commands() - 1, 't'), 'f');
+        Check.same("28 are owed, O is broken", e.waits('f') - before, 4L);
+        Dramwright m = new Dramwright();
+        m.map(1, false);
+        m.finish(1);
+        m.read(0, 0);
+        m.go(100);
+        Check.same("a new map has come", m.waits('f'), 49L);
+    }
+
+    static void promise44And45MendedAndLost() {
+        Dramwright d = new Dramwright();
+        d.flip(0, 0, 0, 0, 0);
+        d.flip(0, 0, 0, 1, 0);
+        d.flip(0, 0, 0, 1, 1);
+        for (int i = 0; i < 3; i++) {
+            d.read(0, 0);
+            d.read(0, 1);
+            d.read(0, 2);
+            d.finish(100);
+        }
+        Check.same("mended", d.mended(), 3);
+        Check.same("lost", d.lost(), 3);
+    }
+
+    static void promise46Patrolled() {
+        Dramwright d = new Dramwright();
+        d.policy('p', 20);
+        d.flip(0, 0, 0, 0, 5);
+        d.flip(0, 0, 0, 1, 5);
+        d.flip(0, 0, 0, 1, 6);
+        d.go(10);
+        Check.same("one under way", d.patrolled(), 0);
+        d.go(1);
+        Check.same("done", d.patrolled(), 1);
+        Check.same("mended", d.mended(), 1);
+        Check.same("written back at once", d.flip(0, 0, 0, 0, 5), 1);
+        d.flip(0, 0, 0, 0, 5);
+        d.go(29);
+        Check.same("one at 20, the next address", d.patrolled(), 2);
+        Check.same("lost", d.lost(), 1);
+        Check.same("not written back", d.flip(0, 0, 0, 1, 5), 0);
+        d.policy('p', 0);
+        d.go(100);
+        Check.same("none comes", d.patrolled(), 2);
+        Check.same("no request of a master", d.finish(100), 0);
+        Check.thrown("none of a master is done", ArithmeticException.class, () -> d.meanDelay());
+    }
+
+    static void promise46PatrolsWaitForEachOther() {
+        Dramwright d = new Dramwright();
+        d.policy('p', 1);
+        d.go(5);
+        Check.same("the first was issued at 4", Check.trace(d), "a00:0@0 r00:0@4");
+        Check.same("the next comes as no one waits", d.queued(false), 0);
+        d.go(1);
+        Check.same("it came", d.queued(false), 1);
+        d.go(20);
+        Check.same("columns in turn", Check.trace(d).startsWith("a00:0@0 r00:0@4 r00:1@7 r00:2@10 r00:3@13"), true);
+        Check.isTrue("waits of patrols count", d.isConsistent());
+    }
+
+    static void promise46PatrolIsForwarded() {
+        Dramwright d = new Dramwright();
+        d.write(0, 0, 1, 15, false);
+        d.policy('p', 100);
+        d.go(1);
+        Check.same("done at once", d.patrolled(), 1);
+        Check.same("without a read", d.queued(false), 0);
+    }
+
+    static void promise47HitShare() {
+        Dramwright d = new Dramwright();
+        Check.thrown("none issued", ArithmeticException.class, () -> d.hitShare());
+        d.read(0, 0);
+        Check.thrown("none issued yet", ArithmeticException.class, () -> d.hitShare());
+        d.finish(100);
+        Check.same("no hit", d.hitShare(), 0.0f);
+        d.read(0, 1);
+        d.finish(100);
+        Check.same("one of two", d.hitShare(), 0.5f);
+        d.write(0, 2, 1, 15, false);
+        d.read(0, 2);
+        d.finish(100);
+        Check.same("two of three, forwarded ones are not issued", d.hitShare(), 2.0f / 3.0f);
+        d.policy('p', 1);
+        d.go(1);
+        d.policy('p', 0);
+        d.go(50);
+        Check.same("a patrol counts", d.hitShare(), 3.0f / 4.0f);
+    }
+
+    static void promise48MeanDelay() {
+        Dramwright d = new Dramwright();
+        Check.thrown("none done", ArithmeticException.class, () -> d.meanDelay());
+        d.read(0, 0);
+        d.go(10);
+        Check.thrown("none done yet", ArithmeticException.class, () -> d.meanDelay());
+        d.go(5);
+        Check.same("10 cycles", d.meanDelay(), 10.0);
+        d.write(0, 16, 1, 15, false);
+        d.read(0, 16);
+        Check.same("0 of a forwarded one", d.meanDelay(), 5.0);
+        d.finish(50);
+        Check.same("9 of the write", d.meanDelay(), 19.0 / 3.0);
+    }
+
+    static void promise49IsConsistent() {
+        Dramwright d = new Dramwright();
+        d.policy('p', 7);
+        for (int i = 0; i < 60; i++) {
+            d.write(i % 4, i * 37 % 64, i * 0x01010101, 1 + i % 15, false);
+            d.read(i % 4, i * 11 % 64);
+            d.go(20);
+            Check.isTrue("consistent", d.isConsistent());
+        }
+        d.flip(0, 0, 0, 0, 0);
+        d.flip(0, 0, 0, 0, 1);
+        d.read(0, 0);
+        d.finish(300);
+        Check.isTrue("a bit was turned", d.isConsistent());
+    }
+}

@@ -1,0 +1,58 @@
+import java.lang.reflect.InvocationTargetException;
+import java.lang.reflect.Method;
+import java.lang.reflect.Modifier;
+import java.util.Arrays;
+import java.util.Comparator;
+
+/** Runs each static method without arguments, not private, of the test classes as one test. */
+public final class AllTests {
+    private static final Class<?>[] CLASSES = {
+        FaceTest.class, SettingsTest.class, RequestsTest.class, ChipsTest.class, FaultsTest.class,
+        AccountsTest.class, OrderTest.class, RefreshTest.class, CodesTest.class, RulesTest.class, FuzzTest.class,
+    };
+
+    private AllTests() {
+    }
+
+    public static void main(String[] args) throws IllegalAccessException {
+        int passed = 0;
+        int failed = 0;
+        for (Class<?> tests : CLASSES) {
+            Method[] methods = tests.getDeclaredMethods();
+            Arrays.sort(methods, Comparator.comparing(Method::getName));
+            for (Method method : methods) {
+                boolean isTest = Modifier.isStatic(method.getModifiers())
+                    && !Modifier.isPrivate(method.getModifiers())
+                    && !method.isSynthetic()
+                    && method.getParameterCount() == 0;
+                if (!isTest) {
+                    continue;
+                }
+                if (passes(method)) {
+                    passed++;
+                } else {
+                    failed++;
+                }
+            }
+        }
+        System.out.println(passed + " passed, " + failed + " failed");
+        if (failed > 0 || passed == 0) {
+            System.exit(1);
+        }
+    }
+
+    private static boolean passes(Method method) throws IllegalAccessException {
+        try {
+            method.setAccessible(true);
+            method.invoke(null);
+            return true;
+        } catch (InvocationTargetException e) {
+            Throwable cause = e.getCause();
+            System.out.println(method.getDeclaringClass().getName() + "." + method.getName() + ": " + cause);
+            if (!(cause instanceof AssertionError)) {
+                cause.printStackTrace(System.out);
+            }
+            return false;
+        }
+    }
+}

@@ -1,0 +1,94 @@
+import java.util.Objects;
+
+/** What the tests share: comparisons that fail with a text, and short names for addresses and traces. */
+final class Check {
+    private Check() {
+    }
+
+    /** A call that a test makes. */
+    interface Call {
+        void make();
+    }
+
+    static void same(String what, Object got, Object due) {
+        Object one = got instanceof Integer ? Long.valueOf((Integer) got) : got;
+        Object other = due instanceof Integer ? Long.valueOf((Integer) due) : due;
+        if (!Objects.equals(one, other)) {
+            throw new AssertionError(what + ": got " + got + ", due is " + due);
+        }
+    }
+
+    static void isTrue(String what, boolean holds) {
+        same(what, holds, true);
+    }
+
+    static void isFalse(String what, boolean holds) {
+        same(what, holds, false);
+    }
+
+    static void illegal(String what, Call call) {
+        thrown(what, IllegalArgumentException.class, call);
+    }
+
+    static void badState(String what, Call call) {
+        thrown(what, IllegalStateException.class, call);
+    }
+
+    static void outOfBounds(String what, Call call) {
+        thrown(what, IndexOutOfBoundsException.class, call);
+    }
+
+    static void thrown(String what, Class<?> due, Call call) {
+        Class<?> got = null;
+        try {
+            call.make();
+        } catch (RuntimeException e) {
+            got = e.getClass();
+        }
+        same(what + " throws", got, due);
+    }
+
+    /** The address that the map 0 puts at a place. */
+    static int at(int rank, int bank, int row, int column) {
+        return column | bank << 4 | rank << 6 | row << 7;
+    }
+
+    /** Lets many cycles pass. */
+    static void pass(Dramwright d, int cycles) {
+        for (int left = cycles; left > 0; left -= 150) {
+            d.go(Math.min(left, 150));
+        }
+    }
+
+    /** The commands from one on, as letter, rank, bank, number and cycle: a01:5@0 opens row 5 of bank 1 of rank 0. */
+    static String trace(Dramwright d, int from) {
+        StringBuilder text = new StringBuilder();
+        for (int i = from; i < d.commands(); i++) {
+            if (text.length() > 0) {
+                text.append(' ');
+            }
+            text.append((char) d.command(i, 't')).append(d.command(i, 'k'));
+            if (d.command(i, 'b') >= 0) {
+                text.append(d.command(i, 'b'));
+            }
+            if (d.command(i, 'r') >= 0) {
+                text.append(':').append(d.command(i, 'r'));
+            }
+            text.append('@').append(d.command(i, 'c'));
+        }
+        return text.toString();
+    }
+
+    static String trace(Dramwright d) {
+        return trace(d, 0);
+    }
+
+    /** Sums the waits of all causes. */
+    static long allWaits(Dramwright d) {
+        long sum = 0;
+        for (char cause : "fdhbsq".toCharArray()) {
+            sum += d.waits(cause);
+        }
+        return sum;
+    }
+}

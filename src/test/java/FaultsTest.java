@@ -1,0 +1,269 @@
+/** The promises 34 to 41. */
+final class FaultsTest {
+    private FaultsTest() {
+    }
+
+    private static char flagOfRead(Dramwright d, int address) {
+        int request = d.read(0, address);
+        d.finish(300);
+        return d.flagOf(request);
+    }
+
+    private static int valueOfRead(Dramwright d, int address) {
+        int request = d.read(0, address);
+        d.finish(300);
+        return d.valueOf(request);
+    }
+
+    static void promise34Stick() {
+        Dramwright d = new Dramwright();
+        d.code('n');
+        Check.same("one", d.stick(0, 0, 0, 0, 4, true), 1);
+        Check.same("two", d.stick(0, 0, 0, 0, 5, false), 2);
+        Check.same("reads as told", valueOfRead(d, 0), 16);
+        d.write(0, 0, 0x20, 15, false);
+        d.finish(100);
+        Check.same("whatever is written", valueOfRead(d, 0), 16);
+        Check.same("what is stored is another thing", d.flip(0, 0, 0, 0, 5), 0);
+        Check.illegal("it sticks", () -> d.stick(0, 0, 0, 0, 4, false));
+        Check.illegal("bit 40", () -> d.stick(0, 0, 0, 0, 40, true));
+        Check.illegal("bit -1", () -> d.stick(0, 0, 0, 0, -1, true));
+        Check.outOfBounds("rank", () -> d.stick(2, 0, 0, 0, 40, true));
+        Check.outOfBounds("bank", () -> d.stick(0, 4, 0, 0, 40, true));
+        Check.outOfBounds("row", () -> d.stick(0, 0, 34, 0, 40, true));
+        Check.outOfBounds("column", () -> d.stick(0, 0, 0, 16, 40, true));
+        Check.outOfBounds("column -1", () -> d.stick(0, 0, 0, -1, 0, true));
+        for (int i = 3; i <= 20; i++) {
+            Check.same("count", d.stick(1, 3, 33, 15, i + 19, true), i);
+        }
+        Check.badState("20 bits stick", () -> d.stick(0, 0, 1, 0, 0, true));
+        Check.illegal("listed first", () -> d.stick(0, 0, 0, 0, 4, true));
+    }
+
+    static void promise34StuckCodeBitsAreMended() {
+        Dramwright d = new Dramwright();
+        d.stick(0, 0, 0, 0, 32, true);
+        d.stick(0, 0, 0, 1, 39, true);
+        Check.same("a code bit", flagOfRead(d, 0), 'm');
+        Check.same("the word is as it was", valueOfRead(d, 0), 0);
+        Check.same("the code s has 7 bits", flagOfRead(d, 1), 'r');
+        d.code('c');
+        Check.same("the code c has 8", flagOfRead(d, 1), 'm');
+    }
+
+    static void promise35Fade() {
+        Dramwright d = new Dramwright();
+        d.code('n');
+        d.rows('c');
+        d.write(0, 0, 3, 15, false);
+        d.finish(100);
+        d.go(30);
+        int restored = d.command(0, 'c');
+        Check.same("one", d.fade(0, 0, 0, 0, 0, 100), 1);
+        Check.same("two", d.fade(0, 0, 0, 0, 1, 99), 2);
+        d.go((int) (restored + 100 - d.cycle()));
+        Check.same("100 cycles behind the last time", valueOfRead(d, 0), 1);
+        Check.same("opened then", d.command(d.commands() - 3, 'c'), restored + 100);
+        Check.illegal("it fades", () -> d.fade(0, 0, 0, 0, 0, 5));
+        Check.illegal("bit 40", () -> d.fade(0, 0, 0, 0, 40, 5));
+        Check.illegal("bit -1", () -> d.fade(0, 0, 0, 0, -1, 5));
+        Check.illegal("0 cycles", () -> d.fade(0, 0, 0, 0, 3, 0));
+        Check.illegal("10000 cycles", () -> d.fade(0, 0, 0, 0, 3, 10000));
+        Check.outOfBounds("rank", () -> d.fade(-1, 0, 0, 0, 0, 0));
+        Check.outOfBounds("bank", () -> d.fade(0, -1, 0, 0, 0, 0));
+        Check.outOfBounds("row", () -> d.fade(0, 0, -1, 0, 0, 0));
+        Check.outOfBounds("column", () -> d.fade(0, 0, 0, 16, 0, 0));
+        for (int i = 3; i <= 20; i++) {
+            Check.same("count", d.fade(1, 3, 33, 15, i, 9999), i);
+        }
+        Check.badState("20 bits fade", () -> d.fade(0, 0, 1, 0, 0, 1));
+        Check.illegal("listed first", () -> d.fade(0, 0, 0, 0, 0, 5));
+    }
+
+    static void promise35FadeTwiceAsFastInWarmth() {
+        for (int warmth = 49; warmth <= 50; warmth++) {
+            Dramwright d = new Dramwright();
+            d.code('n');
+            d.rows('c');
+            d.warmth(warmth);
+            d.eye(0, 0, 16);
+            d.write(0, 0, 2, 15, false);
+            d.finish(100);
+            int restored = d.command(0, 'c');
+            d.fade(0, 0, 0, 0, 1, 100);
+            d.go((int) (restored + 51 - d.cycle()));
+            Check.same("at " + warmth, valueOfRead(d, 0), warmth < 50 ? 2 : 0);
+        }
+    }
+
+    static void promise35RefreshRestores() {
+        Dramwright d = new Dramwright();
+        d.code('n');
+        d.rows('c');
+        d.policy('i', 50);
+        d.policy('a', 1);
+        d.write(0, Check.at(0, 0, 6, 0), 1, 15, false);
+        d.finish(100);
+        d.fade(0, 0, 6, 0, 0, 150);
+        Check.pass(d, 600);
+        Check.same("refreshed often enough", valueOfRead(d, Check.at(0, 0, 6, 0)), 1);
+        d.policy('g', 1);
+        Check.pass(d, 600);
+        Check.same("by banks, too", valueOfRead(d, Check.at(0, 0, 6, 0)), 1);
+        d.policy('a', 0);
+        d.policy('i', 2000);
+        Check.pass(d, 600);
+        Check.same("no longer", valueOfRead(d, Check.at(0, 0, 6, 0)), 0);
+    }
+
+    static void promise36Flip() {
+        Dramwright d = new Dramwright();
+        Check.same("1", d.flip(0, 1, 2, 3, 31), 1);
+        Check.same("mended", flagOfRead(d, Check.at(0, 1, 2, 3)), 'm');
+        Check.same("0", d.flip(0, 1, 2, 3, 31), 0);
+        Check.same("right", flagOfRead(d, Check.at(0, 1, 2, 3)), 'r');
+        Check.same("a code bit", d.flip(0, 1, 2, 3, 38), 1);
+        Check.same("mended", flagOfRead(d, Check.at(0, 1, 2, 3)), 'm');
+        Check.same("the last one", d.flip(0, 1, 2, 3, 39), 1);
+        Check.illegal("40", () -> d.flip(0, 0, 0, 0, 40));
+        Check.illegal("-1", () -> d.flip(0, 0, 0, 0, -1));
+        Check.outOfBounds("rank", () -> d.flip(2, 0, 0, 0, 40));
+        Check.outOfBounds("bank", () -> d.flip(0, 4, 0, 0, 0));
+        Check.outOfBounds("row", () -> d.flip(0, 0, 34, 0, 0));
+        Check.outOfBounds("column", () -> d.flip(0, 0, 0, 16, 0));
+    }
+
+    static void promise37Eye() {
+        Dramwright d = new Dramwright();
+        d.code('n');
+        Check.same("the delay", d.eye(0, 0, 7), 8);
+        Check.same("2 to 8: within", valueOfRead(d, 0), 0);
+        d.eye(0, 0, 6);
+        Check.same("2 to 7: outside", valueOfRead(d, 0), 1);
+        d.eye(0, 6, 1);
+        Check.same("8 to 8: within", valueOfRead(d, 0), 0);
+        d.eye(0, 7, 16);
+        Check.same("9 to 24: outside", valueOfRead(d, 0), 1);
+        Check.same("the other rank has its own", valueOfRead(d, Check.at(1, 0, 0, 0)), 0);
+        Dramwright s = new Dramwright();
+        s.eye(0, 7, 16);
+        Check.same("ahead of the code's look", flagOfRead(s, 1), 'm');
+        Check.same("which mends it", valueOfRead(s, 1), 0);
+        Check.outOfBounds("rank 2", () -> d.eye(2, 0, 0));
+        Check.outOfBounds("rank -1", () -> d.eye(-1, 0, 1));
+        Check.illegal("begin -1", () -> d.eye(0, -1, 1));
+        Check.illegal("begin 21", () -> d.eye(0, 21, 1));
+        Check.illegal("width 0", () -> d.eye(0, 0, 0));
+        Check.illegal("width 17", () -> d.eye(0, 0, 17));
+    }
+
+    static void promise38Train() {
+        Dramwright d = new Dramwright();
+        d.read(0, Check.at(1, 0, 0, 0));
+        d.read(0, Check.at(1, 3, 0, 0));
+        d.finish(100);
+        Check.isTrue("new", d.train(1));
+        Check.isFalse("told already", d.train(1));
+        Check.isTrue("the other one", d.train(0));
+        int before = d.commands();
+        d.go(30);
+        Check.same("rank 0 has no open bank",
+            Check.trace(d, before), "t0@13 p10@14 p13@15 t1@19");
+        Check.same("midst of 6 to 13, the lower one", d.delay(0), 9);
+        Check.isTrue("it was trained", d.train(0));
+        Check.outOfBounds("2", () -> d.train(2));
+        Check.outOfBounds("-1", () -> d.train(-1));
+    }
+
+    static void promise39Delay() {
+        int[][] cases = {{0, 1, 0, 0}, {0, 2, 0, 0}, {0, 3, 0, 1}, {20, 16, 99, 31}, {20, 5, 99, 31}, {20, 4, 99, 30}};
+        for (int[] one : cases) {
+            Dramwright d = new Dramwright();
+            d.eye(1, one[0], one[1]);
+            d.warmth(one[2]);
+            Check.same("not yet", d.delay(1), 8);
+            d.train(1);
+            d.go(1);
+            Check.same("midst", d.delay(1), one[3]);
+            Check.same("the other one", d.delay(0), 8);
+        }
+        Dramwright d = new Dramwright();
+        Check.outOfBounds("2", () -> d.delay(2));
+        Check.outOfBounds("-1", () -> d.delay(-1));
+    }
+
+    static void promise40Faults() {
+        Dramwright d = new Dramwright();
+        d.flip(0, 0, 5, 0, 0);
+        d.flip(0, 0, 5, 1, 0);
+        d.flip(0, 0, 5, 1, 1);
+        flagOfRead(d, Check.at(0, 0, 5, 0));
+        flagOfRead(d, Check.at(0, 0, 5, 0));
+        Check.same("each reading", d.faults(0, 0, 5), 2);
+        flagOfRead(d, Check.at(0, 0, 5, 1));
+        flagOfRead(d, Check.at(0, 0, 5, 2));
+        Check.same("lost ones, too, right ones not", d.faults(0, 0, 5), 3);
+        Check.same("spare rows are not used", d.place(Check.at(0, 0, 5, 0), 'r'), 5);
+        d.policy('s', 1);
+        flagOfRead(d, Check.at(0, 0, 5, 2));
+        Check.same("nothing was wrong", d.place(Check.at(0, 0, 5, 0), 'r'), 5);
+        flagOfRead(d, Check.at(0, 0, 5, 0));
+        Check.same("at least 3", d.place(Check.at(0, 0, 5, 0), 'r'), 32);
+        Check.outOfBounds("rank", () -> d.faults(2, 0, 0));
+        Check.outOfBounds("bank", () -> d.faults(0, 4, 0));
+        Check.outOfBounds("row 34", () -> d.faults(0, 0, 34));
+        Check.outOfBounds("row -1", () -> d.faults(0, 0, -1));
+    }
+
+    static void promise41Spares() {
+        Dramwright d = new Dramwright();
+        d.policy('s', 1);
+        wearOut(d, 7);
+        Check.same("the first one", d.place(Check.at(0, 0, 7, 0), 'r'), 32);
+        Check.same("one is left", d.spares(0, 0), 1);
+        wearOut(d, 7);
+        Check.same("a spare row is replaced, too", d.place(Check.at(0, 0, 7, 0), 'r'), 33);
+        Check.same("none is left", d.spares(0, 0), 0);
+        wearOut(d, 7);
+        Check.same("it stays", d.place(Check.at(0, 0, 7, 0), 'r'), 33);
+        wearOut(d, 8);
+        Check.same("it stays", d.place(Check.at(0, 0, 8, 0), 'r'), 8);
+        Check.same("another bank", d.spares(0, 1), 2);
+        Check.outOfBounds("rank", () -> d.spares(2, 0));
+        Check.outOfBounds("rank -1", () -> d.spares(-1, 0));
+        Check.outOfBounds("bank", () -> d.spares(0, 4));
+        Check.outOfBounds("bank -1", () -> d.spares(0, -1));
+    }
+
+    private static void wearOut(Dramwright d, int row) {
+        int used = d.place(Check.at(0, 0, row, 0), 'r');
+        d.flip(0, 0, used, 0, 3);
+        for (int i = 0; i < 3; i++) {
+            flagOfRead(d, Check.at(0, 0, row, 0));
+        }
+        Check.same("faults", d.faults(0, 0, used), 3);
+    }
+
+    static void promise41WordsMoveAsRead() {
+        Dramwright d = new Dramwright();
+        d.policy('s', 1);
+        d.write(0, 0, 100, 15, false);
+        d.write(0, 1, 101, 15, true);
+        d.write(0, 2, 102, 15, false);
+        d.finish(300);
+        d.flip(0, 0, 0, 0, 9);
+        d.flip(0, 0, 0, 2, 9);
+        d.flip(0, 0, 0, 2, 10);
+        int lost = valueOfRead(d, 2);
+        flagOfRead(d, 2);
+        flagOfRead(d, 2);
+        Check.same("replaced", d.place(0, 'r'), 32);
+        Check.same("mended and made anew", flagOfRead(d, 0), 'r');
+        Check.same("mended", valueOfRead(d, 0), 100);
+        Check.same("poison moves", flagOfRead(d, 1), 'p');
+        Check.same("with its word", valueOfRead(d, 1), 101);
+        Check.same("a lost word is poisoned", flagOfRead(d, 2), 'p');
+        Check.same("and as it was read", valueOfRead(d, 2), lost);
+        Check.same("moving is no reading", d.mended() * 10 + d.lost(), 3);
+    }
+}

@@ -1,0 +1,180 @@
+/** The order in which requests are looked at and served, and the policies of rows. */
+final class OrderTest {
+    private OrderTest() {
+    }
+
+    static void olderOnesGoFirst() {
+        Dramwright d = new Dramwright();
+        d.read(3, Check.at(0, 0, 0, 0));
+        d.read(0, Check.at(0, 0, 1, 0));
+        d.finish(300);
+        Check.isTrue("the older one", d.doneAt(0) < d.doneAt(1));
+    }
+
+    static void openRowsGoAheadOfPriority() {
+        Dramwright d = new Dramwright();
+        d.master(1, 3, 1);
+        d.read(0, Check.at(0, 0, 0, 0));
+        d.finish(300);
+        d.read(1, Check.at(0, 0, 1, 0));
+        d.read(0, Check.at(0, 0, 0, 1));
+        d.finish(300);
+        Check.isTrue("the open row", d.doneAt(2) < d.doneAt(1));
+    }
+
+    static void priorityGoesAheadOfQuotients() {
+        Dramwright d = new Dramwright();
+        d.read(1, Check.at(0, 3, 0, 0));
+        d.finish(300);
+        d.master(1, 1, 1);
+        d.read(0, Check.at(0, 0, 0, 0));
+        d.read(1, Check.at(0, 0, 1, 0));
+        d.finish(300);
+        Check.isTrue("the greater priority", d.doneAt(2) < d.doneAt(1));
+    }
+
+    static void quotientsAreComparedExactly() {
+        Dramwright d = new Dramwright();
+        d.master(0, 0, 9);
+        d.master(1, 0, 8);
+        for (int i = 0; i < 9; i++) {
+            d.read(0, Check.at(0, 3, 0, i));
+            d.finish(300);
+        }
+        for (int i = 0; i < 8; i++) {
+            d.read(1, Check.at(0, 3, 0, i));
+            d.finish(300);
+        }
+        d.read(1, Check.at(0, 0, 0, 0));
+        d.read(0, Check.at(0, 0, 1, 0));
+        d.finish(300);
+        Check.isTrue("9 by 9 is 8 by 8, so the older one", d.doneAt(17) < d.doneAt(18));
+        d.read(0, Check.at(0, 1, 0, 0));
+        d.read(1, Check.at(0, 1, 1, 0));
+        d.finish(300);
+        Check.isTrue("10 by 9 is less than 9 by 8", d.doneAt(19) < d.doneAt(20));
+        d.read(0, Check.at(0, 2, 0, 0));
+        d.read(1, Check.at(0, 2, 1, 0));
+        d.finish(300);
+        Check.isTrue("11 by 9 is less than 10 by 8", d.doneAt(21) < d.doneAt(22));
+        d.read(0, Check.at(1, 2, 0, 0));
+        d.finish(300);
+        d.read(0, Check.at(1, 1, 0, 0));
+        d.read(1, Check.at(1, 1, 1, 0));
+        d.finish(300);
+        Check.isTrue("13 by 9 is more than 11 by 8", d.doneAt(25) < d.doneAt(24));
+    }
+
+    static void urgentOnesGoFirst() {
+        Dramwright d = new Dramwright();
+        d.policy('b', 10);
+        d.write(0, Check.at(0, 1, 0, 0), 5, 15, false);
+        for (int i = 0; i < 8; i++) {
+            d.read(0, Check.at(0, 0, i, 0));
+        }
+        d.go(10);
+        Check.same("writes are not looked at", d.waits('h'), 10L);
+        Check.same("nothing was opened for it", d.openRow(0, 1), -1);
+        d.go(1);
+        Check.same("it waited for as long as the bound", d.openRow(0, 1), 0);
+    }
+
+    static void urgentOnesShutARowThatIsWanted() {
+        Dramwright d = new Dramwright();
+        d.policy('b', 20);
+        d.read(0, Check.at(0, 0, 0, 0));
+        d.finish(100);
+        d.read(0, Check.at(0, 0, 1, 0));
+        for (int i = 0; i < 10; i++) {
+            d.read(0, Check.at(0, 0, 0, i));
+            d.go(2);
+        }
+        Check.same("the open row is wanted", d.openRow(0, 0), 0);
+        Check.same("three are left besides", d.queued(false), 4);
+        d.go(3);
+        Check.same("one waited for as long as the bound", d.openRow(0, 0), -1);
+        d.finish(300);
+        Check.isTrue("so it went ahead of the rest", d.doneAt(1) < d.doneAt(10));
+    }
+
+    static void rowsThatAreWantedStayOpen() {
+        Dramwright d = new Dramwright();
+        d.read(0, Check.at(0, 0, 0, 0));
+        d.finish(100);
+        d.master(1, 3, 1);
+        d.read(1, Check.at(0, 0, 1, 0));
+        d.read(0, Check.at(0, 0, 0, 1));
+        d.go(1);
+        Check.same("the hit first, no p", Check.trace(d, 2), "r00:1@11");
+    }
+
+    static void sameAddressKeepsItsOrder() {
+        Dramwright d = new Dramwright();
+        d.policy('b', 10);
+        d.write(0, 0, 0x11, 1, false);
+        d.read(0, 0);
+        d.write(0, 0, 0x2200, 2, false);
+        d.read(0, 0);
+        d.finish(300);
+        Check.same("behind the first write", d.valueOf(1), 0x11);
+        Check.same("behind both", d.valueOf(3), 0x2211);
+        Check.isTrue("consistent", d.isConsistent());
+    }
+
+    static void drainingGoesOnUntilAReadWaits() {
+        Dramwright d = new Dramwright();
+        d.policy('u', 4);
+        d.policy('l', 1);
+        for (int i = 0; i < 4; i++) {
+            d.write(0, i, i, 15, false);
+        }
+        d.read(0, 100);
+        d.go(1);
+        Check.isTrue("drains", d.isDraining());
+        d.go(14);
+        Check.same("three were issued", d.queued(true), 1);
+        Check.isFalse("1 waits, and a read", d.isDraining());
+        d.finish(300);
+        Check.isTrue("the read went ahead of the last write", d.doneAt(4) < d.doneAt(3));
+    }
+
+    static void policyOLeavesRowsOpen() {
+        Dramwright d = new Dramwright();
+        d.read(0, 0);
+        d.go(150);
+        Check.same("open", d.openRow(0, 0), 0);
+    }
+
+    static void policyCShutsRowsThatNoRequestWaitsFor() {
+        Dramwright d = new Dramwright();
+        d.rows('c');
+        d.read(0, 0);
+        d.read(0, 1);
+        d.write(0, 2, 1, 15, false);
+        d.go(150);
+        Check.same("p behind the last access alone", Check.trace(d), "a00:0@0 r00:0@4 r00:1@7 w00:2@11 p00@21");
+    }
+
+    static void policyLFollowsWhatWasLearned() {
+        Dramwright d = new Dramwright();
+        d.rows('l');
+        d.read(0, 0);
+        d.go(50);
+        Check.same("3: shut", d.openRow(0, 0), -1);
+        d.read(0, 0);
+        d.go(50);
+        Check.same("2: shut", d.openRow(0, 0), -1);
+        d.read(0, 0);
+        d.go(50);
+        Check.same("1: open", d.openRow(0, 0), 0);
+    }
+
+    static void ranksInOrderAndOneCommandACycle() {
+        Dramwright d = new Dramwright();
+        d.rows('c');
+        d.read(0, Check.at(1, 0, 0, 0));
+        d.read(0, Check.at(0, 0, 0, 0));
+        d.go(100);
+        Check.same("trace", Check.trace(d), "a10:0@0 a00:0@1 r10:0@4 r00:0@7 p10@9 p00@10");
+    }
+}

@@ -1,0 +1,168 @@
+/** Refresh that is owed, put off, drawn ahead or by banks; rest; training among other things. */
+final class RefreshTest {
+    private RefreshTest() {
+    }
+
+    static void refreshIsPutOff() {
+        Dramwright d = new Dramwright();
+        d.policy('i', 50);
+        Check.pass(d, 400);
+        Check.same("28 owed", d.owed(0), 28);
+        Check.same("nothing yet", d.commands(), 0);
+        d.go(2);
+        Check.same("32", Check.trace(d), "f0@400 f1@401");
+        Check.same("4 less", d.owed(0) + d.owed(1), 56);
+        Check.pass(d, 60);
+        Check.same("again", Check.trace(d, 2), "f0@450 f1@451");
+    }
+
+    static void refreshShutsBanksFirst() {
+        Dramwright d = new Dramwright();
+        d.policy('i', 50);
+        Check.pass(d, 395);
+        d.read(0, Check.at(0, 2, 0, 0));
+        d.read(0, Check.at(0, 0, 0, 0));
+        d.read(0, Check.at(0, 0, 1, 0));
+        d.go(40);
+        Check.same("nothing else of this rank is issued",
+            Check.trace(d), "a02:0@395 a00:0@397 r02:0@399 f1@400 p02@404 p00@406 f0@410 a00:0@430 r00:0@434");
+    }
+
+    static void refreshByBanks() {
+        Dramwright d = new Dramwright();
+        d.policy('i', 50);
+        d.policy('g', 1);
+        Check.pass(d, 402);
+        Check.same("one is enough", Check.trace(d), "g00@400 g10@401");
+        Check.same("1 less", d.owed(0), 31);
+        Check.pass(d, 60);
+        Check.same("the turn goes on, rank 0 first", Check.trace(d, 2),
+            "g01@450 g02@451 g03@452 g00@453 g11@454 g12@455 g13@456 g10@457");
+    }
+
+    static void refreshByBanksShutsTheBankWhoseTurnItIs() {
+        Dramwright d = new Dramwright();
+        d.policy('i', 50);
+        d.policy('g', 1);
+        d.read(0, Check.at(0, 0, 0, 0));
+        d.read(0, Check.at(0, 1, 0, 0));
+        Check.pass(d, 410);
+        Check.same("the other bank stays open", Check.trace(d, 4), "p00@400 g10@401 g00@404");
+        Check.same("open", d.openRow(0, 1), 0);
+    }
+
+    static void refreshDrawnAhead() {
+        Dramwright d = new Dramwright();
+        d.policy('a', 1);
+        Check.pass(d, 199);
+        Check.same("down to -32", d.owed(0), -32);
+        Check.same("both", d.owed(1), -32);
+        Check.same("8 each, O between", d.commands(), 16);
+        Check.same("the first ones", Check.trace(d).startsWith("f0@0 f1@1 f0@20 f1@21"), true);
+    }
+
+    static void refreshIsNotDrawnAheadWhileARequestWaits() {
+        Dramwright d = new Dramwright();
+        d.policy('a', 1);
+        d.read(0, 0);
+        d.go(5);
+        Check.same("the other rank alone", Check.trace(d), "a00:0@0 f1@1 r00:0@4");
+        d.go(10);
+        Check.same("then this one, behind its p", Check.trace(d, 3), "p00@9 f0@13");
+    }
+
+    static void refreshCountsOpeningsFromZero() {
+        Dramwright d = new Dramwright();
+        d.read(0, 0);
+        d.read(0, Check.at(1, 2, 5, 0));
+        d.read(0, Check.at(1, 0, 5, 0));
+        d.finish(100);
+        Check.same("counted", d.opened(0, 0, 0) + d.opened(1, 2, 5) + d.opened(1, 0, 5), 3);
+        d.policy('a', 1);
+        d.go(5);
+        d.policy('g', 1);
+        d.go(20);
+        Check.same("f of the rank, or g of the bank", d.opened(0, 0, 0) + d.opened(1, 0, 5), 0);
+    }
+
+    static void restAndWaking() {
+        Dramwright d = new Dramwright();
+        d.policy('r', 10);
+        d.rows('c');
+        d.go(20);
+        Check.same("trace", Check.trace(d), "d0@10 d1@11");
+        d.read(0, Check.at(1, 0, 0, 0));
+        d.go(60);
+        Check.same("rank 1 alone wakes, and rests 10 cycles behind its last command",
+            Check.trace(d, 2), "x1@20 a10:0@23 r10:0@27 p10@32 d1@42");
+        d.train(0);
+        d.go(30);
+        Check.same("training wakes, too", Check.trace(d, 7), "x0@80 t0@83 d0@103");
+    }
+
+    static void owingWakes() {
+        Dramwright d = new Dramwright();
+        d.policy('r', 10);
+        Check.pass(d, 205);
+        Check.same("4 owed", Check.trace(d), "d0@10 d1@11 x0@200 x1@201");
+    }
+
+    static void openBanksKeepARankAwake() {
+        Dramwright d = new Dramwright();
+        d.policy('r', 3);
+        d.read(0, 0);
+        d.go(100);
+        Check.isFalse("open", d.rests(0));
+        Check.isTrue("shut", d.rests(1));
+    }
+
+    static void guardedRowsGoAheadOfRequests() {
+        Dramwright d = new Dramwright();
+        d.policy('h', 2);
+        d.read(0, Check.at(0, 0, 5, 0));
+        d.finish(100);
+        d.read(0, Check.at(0, 0, 20, 0));
+        d.finish(100);
+        int before = d.commands();
+        d.read(0, Check.at(0, 0, 5, 0));
+        d.read(0, Check.at(0, 0, 25, 0));
+        d.finish(300);
+        String trace = Check.trace(d, before);
+        Check.isTrue("4, then 6, then 25: " + trace,
+            trace.indexOf("a00:4") < trace.indexOf("a00:6") && trace.indexOf("a00:6") < trace.indexOf("a00:25")
+                && trace.indexOf("a00:4") > 0);
+    }
+
+    static void guardingIsDoneByAnyOpening() {
+        Dramwright d = new Dramwright();
+        d.policy('h', 2);
+        d.read(0, Check.at(0, 0, 5, 0));
+        d.finish(100);
+        d.read(0, Check.at(0, 0, 20, 0));
+        d.finish(100);
+        d.policy('i', 50);
+        d.read(0, Check.at(0, 0, 5, 0));
+        d.go(5);
+        Check.same("both", d.guarded(), 2);
+        d.go(150);
+        Check.same("none", d.guarded(), 0);
+    }
+
+    static void trainingComesBehindRequests() {
+        Dramwright d = new Dramwright();
+        d.train(0);
+        d.read(0, 0);
+        d.go(40);
+        Check.same("trace", Check.trace(d), "a00:0@0 r00:0@4 p00@9 t0@13");
+    }
+
+    static void refreshOfARankIsNotHinderedByTheOther() {
+        Dramwright d = new Dramwright();
+        d.policy('i', 50);
+        Check.pass(d, 400);
+        d.read(0, 0);
+        d.read(0, Check.at(1, 0, 0, 0));
+        d.go(30);
+        Check.same("trace", Check.trace(d), "f0@400 f1@401 a00:0@420 a10:0@421 r00:0@424 r10:0@427");
+    }
+}
