@@ -1704,11 +1704,11 @@ public final class Dramwright {
         }
 
         private void endRequests() {
-            for (int i = 0; i < queue.underWay.size(); i++) {
+            // From the last one on, so that a removal moves none that is still to be looked at.
+            for (int i = queue.underWay.size() - 1; i >= 0; i--) {
                 Request request = queue.underWay.get(i);
                 if (request.endsAt <= now) {
                     queue.underWay.remove(i);
-                    i--;
                     endRequest(request);
                 }
             }

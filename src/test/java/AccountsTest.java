@@ -93,6 +93,76 @@ final class AccountsTest {
         Check.same("A", d.waits('b'), 5L);
     }
 
+    static void promise43EachSharedDistanceAlone() {
+        Dramwright d = new Dramwright();
+        d.distance('D', 9);
+        d.distance('A', 99);
+        twoReads(d, Check.at(0, 0, 0, 0), Check.at(0, 2, 0, 0), 9);
+        Check.same("D", d.waits('s') * 1000 + d.waits('b'), 9009L);
+        Dramwright g = new Dramwright();
+        g.distance('G', 30);
+        twoReads(g, Check.at(0, 0, 0, 0), Check.at(0, 2, 0, 0), 34);
+        Check.same("G behind the r at 4, ahead of A", g.waits('s'), 30L + 2);
+        Check.same("A of both", g.waits('b'), 4L + 2);
+        Dramwright q = new Dramwright();
+        q.distance('Q', 9);
+        twoReads(q, Check.at(0, 0, 0, 0), Check.at(1, 0, 0, 0), 14);
+        Check.same("Q behind the r at 4", q.waits('s'), 10L);
+        Dramwright j = new Dramwright();
+        j.distance('J', 40);
+        j.write(0, 0, 1, 15, false);
+        j.finish(100);
+        j.read(0, 1);
+        j.go(30);
+        Check.same("J", j.waits('s'), 30L);
+    }
+
+    private static void twoReads(Dramwright d, int one, int other, int cycles) {
+        d.read(0, one);
+        d.read(0, other);
+        d.go(cycles);
+    }
+
+    static void promise43FourOpeningsAndRefreshAreShared() {
+        Dramwright f = new Dramwright();
+        f.distance('F', 99);
+        for (int bank = 0; bank < 4; bank++) {
+            f.read(0, Check.at(0, bank, 0, 0));
+        }
+        f.finish(300);
+        f.read(0, Check.at(0, 0, 1, 0));
+        long before = f.waits('s');
+        int cycle = (int) f.cycle();
+        f.finish(300);
+        Check.same("B of the p before it, then F until 99, ahead of A",
+            f.waits('s') - before, 99L - cycle);
+        Check.same("opened then", f.command(f.commands() - 2, 'c'), 99);
+        Dramwright o = new Dramwright();
+        o.policy('a', 1);
+        o.go(1);
+        o.read(0, 0);
+        o.go(19);
+        Check.same("O", o.waits('s'), 19L);
+    }
+
+    static void promise43OtherDistancesAreOfTheBank() {
+        Dramwright d = new Dramwright();
+        d.distance('C', 50);
+        d.read(0, Check.at(0, 0, 0, 0));
+        d.finish(300);
+        d.read(0, Check.at(0, 0, 1, 0));
+        long before = d.waits('b');
+        d.go(30);
+        Check.same("C", d.waits('b') - before, 30L);
+        Dramwright p = new Dramwright();
+        p.policy('a', 1);
+        p.policy('g', 1);
+        p.go(1);
+        p.read(0, 0);
+        p.go(9);
+        Check.same("P", p.waits('b'), 9L);
+    }
+
     static void promise43WaitsOfTheQueue() {
         Dramwright d = new Dramwright();
         d.read(0, Check.at(0, 0, 0, 0));
@@ -244,10 +314,27 @@ final class AccountsTest {
             d.go(20);
             Check.isTrue("consistent", d.isConsistent());
         }
-        d.flip(0, 0, 0, 0, 0);
-        d.flip(0, 0, 0, 0, 1);
-        d.read(0, 0);
-        d.finish(300);
-        Check.isTrue("a bit was turned", d.isConsistent());
+    }
+
+    static void promise49WhatMakesOtherWords() {
+        for (int what = 0; what < 5; what++) {
+            Dramwright d = new Dramwright();
+            d.code('n');
+            d.write(0, 0, 1, 15, false);
+            d.finish(100);
+            switch (what) {
+                case 0: d.stick(0, 0, 0, 0, 0, false); break;
+                case 1: d.fade(0, 0, 0, 0, 0, 1); break;
+                case 2: d.flip(0, 0, 0, 0, 0); break;
+                case 3: d.eye(0, 20, 1); break;
+                default: d.warmth(99); break;
+            }
+            d.read(0, Check.at(0, 0, 1, 0));
+            d.finish(100);
+            d.read(0, 0);
+            d.finish(100);
+            Check.same("another word", d.valueOf(2), 0);
+            Check.isTrue("but something was told", d.isConsistent());
+        }
     }
 }

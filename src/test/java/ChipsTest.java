@@ -257,6 +257,12 @@ final class ChipsTest {
         Check.same("empty again", d.judged(), 0);
         Check.same("nothing is open", d.judge('a', 0, 0, 1), '-');
         Check.same("no distance from the trace before", d.judge('a', 0, 1, 3), '-');
+        d.judged();
+        d.judge('d', 0, 0, 1);
+        d.judge('d', 1, 0, 1);
+        Check.same("two rest", d.judged(), 2);
+        Check.same("none rests", d.judge('a', 0, 0, 1), '-');
+        Check.same("none rests", d.judge('a', 1, 0, 1), '-');
     }
 
     static void promise33IsLawful() {

@@ -156,6 +156,9 @@ final class CodesTest {
         Check.same("as it is", readOf(d), "r57");
         d.flip(0, 0, 0, 0, 35);
         Check.same("no code", readOf(d), "r57");
+        for (int bit = 0; bit < 8; bit++) {
+            Check.same("none is made", stored(d, 32 + bit), bit == 3 ? 1 : 0);
+        }
         Check.same("none mended", d.mended() + d.lost(), 0);
     }
 

@@ -51,6 +51,27 @@ final class FaultsTest {
         Check.same("the code c has 8", flagOfRead(d, 1), 'm');
     }
 
+    static void promise34BitsStickAlone() {
+        Dramwright d = new Dramwright();
+        d.code('n');
+        d.write(0, 0, -1, 15, false);
+        d.finish(100);
+        d.stick(0, 0, 0, 0, 5, false);
+        Check.same("none beside it", valueOfRead(d, 0), ~32);
+        for (int bit = 32; bit < 39; bit++) {
+            for (int stored = 0; stored < 2; stored++) {
+                Dramwright s = new Dramwright();
+                for (int other = 32; other < 39 && stored == 1; other++) {
+                    s.flip(0, 0, 0, 0, other);
+                }
+                s.stick(0, 0, 0, 0, bit, stored == 0);
+                int code = stored == 0 ? 1 << bit - 32 : 127 & ~(1 << bit - 32);
+                char due = Integer.bitCount(code) % 2 == 0 || (code & 63) > 38 ? 'l' : 'm';
+                Check.same("code " + code, flagOfRead(s, 0), due);
+            }
+        }
+    }
+
     static void promise35Fade() {
         Dramwright d = new Dramwright();
         d.code('n');
@@ -80,6 +101,69 @@ final class FaultsTest {
         Check.illegal("listed first", () -> d.fade(0, 0, 0, 0, 0, 5));
     }
 
+    static void promise35FadesWhereItIsTold() {
+        Dramwright d = new Dramwright();
+        d.code('n');
+        int address = Check.at(1, 2, 3, 4);
+        d.write(0, address, -1, 15, false);
+        d.write(0, address + 1, -1, 15, false);
+        d.finish(100);
+        d.fade(1, 2, 3, 4, 31, 1);
+        d.fade(1, 2, 3, 4, 32, 1);
+        d.fade(1, 2, 3, 5, 31, 9999);
+        d.flip(1, 2, 3, 4, 32);
+        Check.illegal("it fades", () -> d.fade(1, 2, 3, 5, 31, 1));
+        d.read(0, Check.at(1, 2, 9, 4));
+        d.finish(100);
+        Check.same("its bit", valueOfRead(d, address), 0x7FFFFFFF);
+        Check.same("not the other word's", valueOfRead(d, address + 1), -1);
+        Check.same("a code bit, too", d.flip(1, 2, 3, 4, 32), 1);
+    }
+
+    static void promise35RestoringIsOfTheRowAlone() {
+        Dramwright d = new Dramwright();
+        d.code('n');
+        d.rows('c');
+        int[] lines = {Check.at(0, 1, 5, 0), Check.at(0, 1, 6, 0), Check.at(0, 2, 5, 0), Check.at(1, 1, 5, 0)};
+        for (int address : lines) {
+            d.write(0, address, 3, 15, false);
+        }
+        d.finish(300);
+        for (int address : lines) {
+            d.fade(d.place(address, 'k'), d.place(address, 'b'), d.place(address, 'r'), 0, 0, 150);
+        }
+        d.read(0, lines[0]);
+        Check.pass(d, 120);
+        d.read(0, lines[0]);
+        Check.pass(d, 120);
+        Check.same("opened often enough", valueOfRead(d, lines[0]), 3);
+        Check.same("a neighbour", valueOfRead(d, lines[1]), 2);
+        Check.same("another bank", valueOfRead(d, lines[2]), 2);
+        Check.same("another rank", valueOfRead(d, lines[3]), 2);
+    }
+
+    static void promise35FadingCodeBits() {
+        Dramwright d = new Dramwright();
+        d.rows('c');
+        d.write(0, 0, 1, 15, false);
+        Check.pass(d, 50);
+        for (int bit = 32; bit < 39; bit += 3) {
+            d.flip(0, 0, 0, 0, bit);
+        }
+        StringBuilder before = new StringBuilder();
+        for (int bit = 30; bit < 40; bit++) {
+            before.append(1 - d.flip(0, 0, 0, 0, bit));
+            d.flip(0, 0, 0, 0, bit);
+        }
+        Check.same("the code 3 and 6 changed by 9 and 6", before.toString(), "0001010000");
+        d.fade(0, 0, 0, 0, 33, 1);
+        d.read(0, 0);
+        Check.pass(d, 50);
+        Check.same("it faded", d.flip(0, 0, 0, 0, 33), 1);
+        Check.same("the one above stays", d.flip(0, 0, 0, 0, 34), 1);
+        Check.same("and the one above that", d.flip(0, 0, 0, 0, 35), 0);
+    }
+
     static void promise35FadeTwiceAsFastInWarmth() {
         for (int warmth = 49; warmth <= 50; warmth++) {
             Dramwright d = new Dramwright();
@@ -91,7 +175,11 @@ final class FaultsTest {
             d.finish(100);
             int restored = d.command(0, 'c');
             d.fade(0, 0, 0, 0, 1, 100);
-            d.go((int) (restored + 51 - d.cycle()));
+            d.go((int) (restored + 50 - d.cycle()));
+            Check.same("twice 50 is not more than 100", valueOfRead(d, 0), 2);
+            d.finish(300);
+            d.go(1);
+            d.go((int) (restored + 50 + 51 - d.cycle()));
             Check.same("at " + warmth, valueOfRead(d, 0), warmth < 50 ? 2 : 0);
         }
     }
@@ -170,6 +258,7 @@ final class FaultsTest {
         Check.same("rank 0 has no open bank",
             Check.trace(d, before), "t0@13 p10@14 p13@15 t1@19");
         Check.same("midst of 6 to 13, the lower one", d.delay(0), 9);
+        Check.same("the same eye at first", d.delay(1), 9);
         Check.isTrue("it was trained", d.train(0));
         Check.outOfBounds("2", () -> d.train(2));
         Check.outOfBounds("-1", () -> d.train(-1));
@@ -242,6 +331,41 @@ final class FaultsTest {
             flagOfRead(d, Check.at(0, 0, row, 0));
         }
         Check.same("faults", d.faults(0, 0, used), 3);
+    }
+
+    static void promise41OtherBanksKeepTheirRows() {
+        for (int rank = 0; rank < 2; rank++) {
+            for (int bank = 0; bank < 4; bank++) {
+                Dramwright d = new Dramwright();
+                d.policy('s', 1);
+                d.flip(rank, bank, 0, 0, 3);
+                for (int i = 0; i < 3; i++) {
+                    flagOfRead(d, Check.at(rank, bank, 0, 0));
+                }
+                for (int other = 0; other < 8; other++) {
+                    int due = other == rank * 4 + bank ? 32 : 0;
+                    Check.same("row 0", d.place(Check.at(other / 4, other % 4, 0, 0), 'r'), due);
+                    Check.same("row 1", d.place(Check.at(other / 4, other % 4, 1, 0), 'r'), 1);
+                }
+            }
+        }
+    }
+
+    static void promise41WaitingRequestsMeanTheSpareRow() {
+        Dramwright d = new Dramwright();
+        d.policy('s', 1);
+        for (int column = 0; column < 3; column++) {
+            d.flip(0, 0, 4, column, 3);
+            d.read(0, Check.at(0, 0, 4, column));
+        }
+        d.read(0, Check.at(0, 0, 4, 3));
+        d.read(0, Check.at(0, 0, 4, 4));
+        d.read(0, Check.at(0, 0, 9, 3));
+        d.read(0, Check.at(0, 1, 4, 3));
+        d.read(0, Check.at(1, 0, 4, 3));
+        d.finish(300);
+        Check.same("trace", Check.trace(d), "a00:4@0 a10:4@1 a01:4@3 r00:0@4 r00:1@7 r00:2@10 r01:3@13 p00@14"
+            + " r10:3@16 a00:32@18 r00:3@22 r00:4@25 p00@28 a00:9@32 r00:3@36");
     }
 
     static void promise41WordsMoveAsRead() {

@@ -108,6 +108,62 @@ final class OrderTest {
         Check.same("the hit first, no p", Check.trace(d, 2), "r00:1@11");
     }
 
+    /** The row 0 of the bank 0 is open and could be shut at any time, but an access must wait for H. */
+    private static Dramwright withAnOpenRow() {
+        Dramwright d = new Dramwright();
+        d.distance('C', 1);
+        d.distance('K', 1);
+        d.distance('H', 40);
+        d.read(0, Check.at(0, 0, 0, 0));
+        d.finish(100);
+        return d;
+    }
+
+    static void aRowIsHeldForARequestThatCannotYetBeIssued() {
+        Dramwright d = withAnOpenRow();
+        d.read(0, Check.at(0, 0, 1, 0));
+        d.read(0, Check.at(0, 0, 0, 1));
+        d.go(40);
+        Check.same("r at 44, then p", Check.trace(d, 2), "r00:1@44 p00@45 a00:1@49");
+    }
+
+    static void aRowIsNotHeldForRequestsElsewhere() {
+        int[] elsewhere = {Check.at(0, 1, 0, 0), Check.at(1, 0, 0, 0), Check.at(0, 0, 2, 0)};
+        for (int other : elsewhere) {
+            Dramwright d = withAnOpenRow();
+            d.read(0, Check.at(0, 0, 1, 0));
+            d.read(0, other);
+            d.go(1);
+            Check.same("p at once", Check.trace(d, 2), "p00@11");
+        }
+    }
+
+    static void aRowIsNotHeldForRequestsThatAreNotLookedAt() {
+        Dramwright d = withAnOpenRow();
+        d.read(0, Check.at(0, 0, 1, 0));
+        d.write(0, Check.at(0, 0, 0, 1), 1, 15, false);
+        d.go(1);
+        Check.same("writes are not looked at", Check.trace(d, 2), "p00@11");
+    }
+
+    static void policyCLooksAtRequestsForTheRowAlone() {
+        int[] elsewhere = {Check.at(0, 1, 0, 0), Check.at(1, 0, 0, 0), Check.at(0, 0, 1, 0)};
+        for (int other : elsewhere) {
+            Dramwright d = withAnOpenRow();
+            d.rows('c');
+            d.write(0, other, 1, 15, false);
+            d.read(0, Check.at(1, 3, 0, 0));
+            d.go(2);
+            Check.same("p behind the a of the read", Check.trace(d, 2), "a13:0@11 p00@12");
+        }
+        Dramwright d = withAnOpenRow();
+        d.rows('c');
+        d.write(0, Check.at(0, 0, 0, 9), 1, 15, false);
+        d.read(0, Check.at(1, 3, 0, 0));
+        d.go(2);
+        Check.same("a write waits for the row, looked at or not", Check.trace(d, 2), "a13:0@11");
+    }
+
     static void sameAddressKeepsItsOrder() {
         Dramwright d = new Dramwright();
         d.policy('b', 10);

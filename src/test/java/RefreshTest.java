@@ -133,6 +133,94 @@ final class RefreshTest {
                 && trace.indexOf("a00:4") > 0);
     }
 
+    /** Opens rows of the bank 2 of the rank 0 in turn, with a limit of 2. */
+    private static Dramwright openInTurn(int... rows) {
+        Dramwright d = new Dramwright();
+        d.policy('h', 2);
+        for (int row : rows) {
+            d.read(0, Check.at(0, 2, row, 0));
+            d.finish(100);
+        }
+        return d;
+    }
+
+    static void guardingGoesThroughTheRowZero() {
+        Dramwright d = openInTurn(1, 20);
+        d.read(0, Check.at(0, 2, 1, 0));
+        int before = d.commands();
+        d.go(60);
+        Check.same("0, then 2", Check.trace(d, before),
+            "p02@26 a02:1@30 r02:0@34 p02@39 a02:0@43 p02@52 a02:2@56");
+        Check.same("none is left", d.guarded(), 0);
+    }
+
+    static void noRowIsGuardedTwiceAtOnce() {
+        Dramwright d = openInTurn(9, 11, 10);
+        d.read(0, Check.at(0, 2, 25, 0));
+        d.finish(100);
+        d.read(0, Check.at(0, 2, 10, 0));
+        int before = d.commands();
+        for (int cycle = 0; cycle < 100 && d.openRow(0, 2) != 11; cycle++) {
+            d.go(1);
+        }
+        Check.same("9 tells 8 and 10, 11 tells 12 alone", d.guarded(), 3);
+        d.go(140);
+        String trace = Check.trace(d, before);
+        int last = -1;
+        for (String opening : new String[] {"a02:10@", "a02:9@", "a02:11@", "a02:8@", "a02:10@", "a02:12@"}) {
+            int at = trace.indexOf(opening, last + 1);
+            Check.isTrue(opening + " in " + trace, at > last);
+            last = at;
+        }
+    }
+
+    static void rowsOfAClosedRankAreNotGuarded() {
+        Dramwright d = openInTurn(5, 20);
+        d.policy('i', 50);
+        d.policy('g', 1);
+        Check.pass(d, (int) (385 - d.cycle()));
+        int before = d.commands();
+        d.read(0, Check.at(0, 2, 5, 0));
+        d.go(11);
+        d.read(0, Check.at(0, 0, 0, 0));
+        d.go(20);
+        Check.same("nothing else of this rank is issued until it owes less", Check.trace(d, before),
+            "p02@385 a02:5@389 r02:0@393 a00:0@396 p02@398 g10@400 p00@405 g00@409 a02:4@410");
+    }
+
+    static void rowsToBeGuardedKeepARankAwake() {
+        Dramwright d = new Dramwright();
+        d.policy('h', 2);
+        d.policy('r', 1);
+        d.distance('F', 99);
+        d.rows('c');
+        int[] openings = {Check.at(0, 2, 5, 0), Check.at(0, 0, 20, 0), Check.at(0, 2, 5, 0)};
+        for (int address : openings) {
+            d.read(0, address);
+            d.finish(100);
+            d.go(9);
+        }
+        d.go(60);
+        Check.same("6 waits for F from the a at 0, and meanwhile the rank does not rest", Check.trace(d),
+            "a02:5@0 d1@1 r02:0@4 p02@9 d0@13 x0@20 a00:20@23 r00:0@27 p00@32 d0@36"
+            + " x0@43 a02:5@46 r02:0@50 p02@55 a02:4@59 p02@68 a02:6@99 p02@108 d0@112");
+    }
+
+    static void requestsThatAreNotLookedAtHinderRefreshAndRest() {
+        Dramwright d = new Dramwright();
+        d.policy('a', 1);
+        d.write(0, Check.at(0, 0, 0, 0), 1, 15, false);
+        d.read(0, Check.at(1, 0, 0, 0));
+        d.go(4);
+        Check.same("the write waits for rank 0", Check.trace(d), "a10:0@0");
+        Dramwright r = new Dramwright();
+        r.policy('r', 2);
+        r.write(0, Check.at(0, 0, 0, 0), 1, 15, false);
+        r.read(0, Check.at(1, 0, 0, 0));
+        r.go(4);
+        Check.same("no rest", Check.trace(r), "a10:0@0");
+    }
+
     static void guardingIsDoneByAnyOpening() {
         Dramwright d = new Dramwright();
         d.policy('h', 2);
