@@ -1728,17 +1728,20 @@ public final class Dramwright {
         }
 
         private void oweMore() {
-            int interval = settings.numbers[INTERVAL];
-            if (now > 0 && interval > 0 && now % interval == 0) {
+            if (isAtMultiple(settings.numbers[INTERVAL])) {
                 for (int rank = 0; rank < RANKS; rank++) {
                     chips.owes[rank] += OWED_A_REFRESH;
                 }
             }
         }
 
+        /** Tells whether so many cycles have passed once more; as the cycle 0 begins, none have. */
+        private boolean isAtMultiple(int cycles) {
+            return cycles > 0 && now > 0 && now % cycles == 0;
+        }
+
         private void sendPatrol() {
-            int every = settings.numbers[PATROL];
-            if (every <= 0 || now % every != 0 || places.hasNewMap || queue.hasPatrolWaiting()) {
+            if (!isAtMultiple(settings.numbers[PATROL]) || places.hasNewMap || queue.hasPatrolWaiting()) {
                 return;
             }
             bringRead(queue.takePatrol(), MASTERS, patrolAddress);

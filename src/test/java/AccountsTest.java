@@ -229,6 +229,8 @@ final class AccountsTest {
         d.flip(0, 0, 0, 0, 5);
         d.flip(0, 0, 0, 1, 5);
         d.flip(0, 0, 0, 1, 6);
+        d.go(20);
+        Check.same("none before 20", d.commands() + d.queued(false), 0);
         d.go(10);
         Check.same("one under way", d.patrolled(), 0);
         d.go(1);
@@ -237,7 +239,7 @@ final class AccountsTest {
         Check.same("written back at once", d.flip(0, 0, 0, 0, 5), 1);
         d.flip(0, 0, 0, 0, 5);
         d.go(29);
-        Check.same("one at 20, the next address", d.patrolled(), 2);
+        Check.same("one at 40, the next address", d.patrolled(), 2);
         Check.same("lost", d.lost(), 1);
         Check.same("not written back", d.flip(0, 0, 0, 1, 5), 0);
         d.policy('p', 0);
@@ -250,23 +252,44 @@ final class AccountsTest {
     static void promise46PatrolsWaitForEachOther() {
         Dramwright d = new Dramwright();
         d.policy('p', 1);
-        d.go(5);
-        Check.same("the first was issued at 4", Check.trace(d), "a00:0@0 r00:0@4");
+        d.go(6);
+        Check.same("the first was issued at 5", Check.trace(d), "a00:0@1 r00:0@5");
         Check.same("the next comes as no one waits", d.queued(false), 0);
         d.go(1);
         Check.same("it came", d.queued(false), 1);
         d.go(20);
-        Check.same("columns in turn", Check.trace(d).startsWith("a00:0@0 r00:0@4 r00:1@7 r00:2@10 r00:3@13"), true);
+        Check.same("columns in turn", Check.trace(d).startsWith("a00:0@1 r00:0@5 r00:1@8 r00:2@11 r00:3@14"), true);
         Check.isTrue("waits of patrols count", d.isConsistent());
     }
 
     static void promise46PatrolIsForwarded() {
         Dramwright d = new Dramwright();
         d.write(0, 0, 1, 15, false);
-        d.policy('p', 100);
-        d.go(1);
+        d.policy('p', 1);
+        d.go(2);
         Check.same("done at once", d.patrolled(), 1);
         Check.same("without a read", d.queued(false), 0);
+    }
+
+    static void promise46NoPatrolInTheCycle0() {
+        for (int every = 1; every <= 500; every++) {
+            Dramwright d = new Dramwright();
+            d.policy('p', every);
+            Check.same("no command in the cycle 0", d.go(1), 0);
+            Check.same("none waits", d.queued(false), 0);
+            Check.same("none was done", d.patrolled(), 0);
+            for (int left = every - 1; left > 0; left -= Math.min(left, 150)) {
+                Check.same("none before it is due", d.go(Math.min(left, 150)), 0);
+            }
+            Check.same("none waits", d.queued(false), 0);
+            d.go(1);
+            Check.same("it came when so many cycles had passed", d.queued(false), 1);
+        }
+        Dramwright d = new Dramwright();
+        d.policy('p', 2);
+        d.read(0, 64);
+        Check.same("a request of a master is issued in the cycle 0", d.go(1), 1);
+        Check.same("alone", d.queued(false), 1);
     }
 
     static void promise47HitShare() {

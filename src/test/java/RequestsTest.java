@@ -25,7 +25,7 @@ final class RequestsTest {
         Dramwright d = new Dramwright();
         d.distance('A', 99);
         d.policy('p', 1);
-        d.go(1);
+        d.go(2);
         Check.same("the patrol waits", d.queued(false), 1);
         for (int i = 0; i < 8; i++) {
             d.read(0, 100 + i);
@@ -276,8 +276,9 @@ final class RequestsTest {
         d.write(0, 1, 1, 15, false);
         Check.same("reads", d.queued(false), 2);
         Check.same("writes", d.queued(true), 1);
-        d.policy('p', 50);
-        d.go(1);
+        d.policy('p', 1);
+        d.go(2);
+        d.policy('p', 0);
         Check.same("with the patrol", d.queued(false), 3);
         d.finish(300);
         Check.same("under way is not waiting", d.queued(false) + d.queued(true), 0);

@@ -164,7 +164,7 @@ final class SettingsTest {
     static void promise6PatrolsWaitForTheMap() {
         Dramwright d = new Dramwright();
         d.policy('p', 1);
-        d.go(1);
+        d.go(2);
         Check.same("the patrol's request counts", d.map(1, false), 1);
         d.finish(300);
         Check.same("none came", d.patrolled(), 1);
