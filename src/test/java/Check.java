@@ -38,14 +38,17 @@ final class Check {
         thrown(what, IndexOutOfBoundsException.class, call);
     }
 
+    /** The exception must be thrown by the class itself, not by the machine or the library in it. */
     static void thrown(String what, Class<?> due, Call call) {
-        Class<?> got = null;
+        RuntimeException got = null;
         try {
             call.make();
         } catch (RuntimeException e) {
-            got = e.getClass();
+            got = e;
         }
-        same(what + " throws", got, due);
+        same(what + " throws", got == null ? null : got.getClass(), due);
+        same(what + " is thrown by", got.getStackTrace()[0].getClassName(), "Dramwright");
+        same(what + " has no text of the machine", got.getMessage(), null);
     }
 
     /** The address that the map 0 puts at a place. */

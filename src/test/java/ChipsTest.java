@@ -164,6 +164,32 @@ final class ChipsTest {
         Check.same("2", d.commands(), 2);
     }
 
+    static void promise30CommandOfALongRun() {
+        Dramwright d = new Dramwright();
+        d.rows('c');
+        d.policy('i', 2000);
+        for (int batch = 0; batch < 25; batch++) {
+            for (int row = 0; row < 8; row++) {
+                d.read(0, Check.at(batch % 2, batch % 4, row, batch % 16));
+            }
+            d.finish(300);
+            d.go(30);
+        }
+        Check.same("24 of each batch", d.commands(), 600);
+        int last = -1;
+        for (int i = 0; i < 600; i += 5) {
+            int batch = i / 24;
+            char letter = "arp".charAt(i % 3);
+            int number = letter == 'a' ? i % 24 / 3 : letter == 'r' ? batch % 16 : -1;
+            Check.same("letter of " + i, d.command(i, 't'), (int) letter);
+            Check.same("bank of " + i, d.command(i, 'k') * 10 + d.command(i, 'b'), batch % 2 * 10 + batch % 4);
+            Check.same("number of " + i, d.command(i, 'r'), number);
+            Check.isTrue("later than the one before", d.command(i, 'c') > last);
+            last = d.command(i, 'c');
+        }
+        Check.isTrue("lawful", d.isLawful());
+    }
+
     static void promise30Command() {
         Dramwright d = new Dramwright();
         d.write(0, Check.at(1, 3, 21, 13), 1, 15, false);

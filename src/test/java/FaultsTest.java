@@ -72,6 +72,20 @@ final class FaultsTest {
         }
     }
 
+    static void promise34CodeBitsStickAtZero() {
+        Dramwright d = new Dramwright();
+        d.write(0, 0, 1, 15, false);
+        d.finish(100);
+        d.stick(0, 0, 0, 0, 32, false);
+        Check.same("one code bit of 0, 1 and 6", flagOfRead(d, 0), 'm');
+        Check.same("no data bit", valueOfRead(d, 0), 1);
+        d.stick(0, 0, 0, 0, 33, false);
+        Check.same("two of them", flagOfRead(d, 0), 'l');
+        Check.same("the data are as they are", valueOfRead(d, 0), 1);
+        Check.same("the first one is stored", d.flip(0, 0, 0, 0, 32), 0);
+        Check.same("the second one is stored", d.flip(0, 0, 0, 0, 33), 0);
+    }
+
     static void promise35Fade() {
         Dramwright d = new Dramwright();
         d.code('n');
@@ -140,6 +154,65 @@ final class FaultsTest {
         Check.same("a neighbour", valueOfRead(d, lines[1]), 2);
         Check.same("another bank", valueOfRead(d, lines[2]), 2);
         Check.same("another rank", valueOfRead(d, lines[3]), 2);
+    }
+
+    static void promise35OtherRowsAreNotRestored() {
+        Dramwright d = new Dramwright();
+        d.rows('c');
+        int[][] lines = {{0, 1, 4}, {0, 1, 6}, {0, 1, 7}, {0, 0, 5}, {0, 2, 5}, {1, 1, 5}};
+        for (int[] line : lines) {
+            d.flip(line[0], line[1], line[2], 0, 1);
+            d.fade(line[0], line[1], line[2], 0, 1, 5);
+        }
+        d.flip(0, 1, 5, 0, 1);
+        d.fade(0, 1, 5, 0, 1, 5);
+        Check.pass(d, 100);
+        d.read(0, Check.at(0, 1, 5, 3));
+        d.finish(100);
+        Check.same("the row that was opened", d.flip(0, 1, 5, 0, 1), 1);
+        for (int[] line : lines) {
+            Check.same("another one", d.flip(line[0], line[1], line[2], 0, 1), 0);
+        }
+    }
+
+    static void promise35AnFRestoresAllRowsOfItsRank() {
+        int[][] lines = {{0, 0, 0}, {0, 0, 33}, {0, 1, 6}, {0, 3, 0}, {0, 3, 31}, {0, 3, 33}};
+        Dramwright d = new Dramwright();
+        for (int[] line : lines) {
+            for (int rank = 0; rank < 2; rank++) {
+                d.flip(rank, line[1], line[2], 15, 31);
+                d.fade(rank, line[1], line[2], 15, 31, 50);
+            }
+        }
+        d.go(51);
+        d.policy('a', 1);
+        d.go(1);
+        Check.same("f of the rank 0", Check.trace(d), "f0@51");
+        for (int[] line : lines) {
+            Check.same("rank 0 faded", d.flip(0, line[1], line[2], 15, 31), 1);
+            Check.same("rank 1 did not", d.flip(1, line[1], line[2], 15, 31), 0);
+        }
+    }
+
+    static void promise35AGRestoresAllRowsOfItsBank() {
+        Dramwright d = new Dramwright();
+        int[] rows = {0, 17, 33};
+        for (int row : rows) {
+            for (int bank = 0; bank < 4; bank++) {
+                d.flip(0, bank, row, 0, 0);
+                d.fade(0, bank, row, 0, 0, 50);
+            }
+        }
+        d.go(51);
+        d.policy('a', 1);
+        d.policy('g', 1);
+        d.go(2);
+        Check.same("g of the banks 0 and 1", Check.trace(d), "g00@51 g01@52");
+        for (int row : rows) {
+            for (int bank = 0; bank < 4; bank++) {
+                Check.same("bank " + bank, d.flip(0, bank, row, 0, 0), bank < 2 ? 1 : 0);
+            }
+        }
     }
 
     static void promise35FadingCodeBits() {
@@ -349,6 +422,19 @@ final class FaultsTest {
                 }
             }
         }
+    }
+
+    static void promise41TheSecondSpareRowTakesNoMoreThanItsWords() {
+        Dramwright d = new Dramwright();
+        d.policy('s', 1);
+        d.write(0, Check.at(0, 0, 8, 0), 8, 15, false);
+        d.write(0, Check.at(0, 1, 0, 0), 10, 15, false);
+        d.finish(300);
+        wearOut(d, 7);
+        wearOut(d, 7);
+        Check.same("both are used", d.spares(0, 0), 0);
+        Check.same("the row behind the one replaced", valueOfRead(d, Check.at(0, 0, 8, 0)), 8);
+        Check.same("the first row of the next bank", valueOfRead(d, Check.at(0, 1, 0, 0)), 10);
     }
 
     static void promise41WaitingRequestsMeanTheSpareRow() {

@@ -177,6 +177,78 @@ final class OrderTest {
         Check.isTrue("consistent", d.isConsistent());
     }
 
+    static void drainingBeginsAtTheUpperMarkOfAtFirst6() {
+        Dramwright d = new Dramwright();
+        for (int i = 0; i < 5; i++) {
+            d.write(0, Check.at(0, 0, 0, i), i, 15, false);
+        }
+        d.read(0, Check.at(1, 0, 0, 0));
+        d.go(1);
+        Check.isFalse("5 are too few", d.isDraining());
+        Check.same("the read is looked at", Check.trace(d), "a10:0@0");
+        d.write(0, Check.at(0, 0, 0, 5), 5, 15, false);
+        d.go(1);
+        Check.isTrue("6 are enough", d.isDraining());
+        Check.same("writes are looked at", Check.trace(d, 1), "a00:0@1");
+        for (int i = 0; i < 30 && d.isDraining(); i++) {
+            d.go(1);
+        }
+        Check.same("until 2 wait, as the cycle begins", d.queued(true), 2);
+        Check.same("the read waited for it", d.state(5), 'w');
+    }
+
+    static void bothMarksAreLookedAtTheBeginningFirst() {
+        Dramwright d = new Dramwright();
+        d.policy('u', 2);
+        d.policy('l', 5);
+        d.write(0, Check.at(0, 0, 0, 0), 1, 15, false);
+        d.write(0, Check.at(0, 0, 0, 1), 1, 15, false);
+        d.go(1);
+        Check.isTrue("as no read waits", d.isDraining());
+        d.read(0, Check.at(1, 0, 0, 0));
+        d.go(1);
+        Check.isFalse("begun and ended at once", d.isDraining());
+        Check.same("the read is looked at", Check.trace(d), "a00:0@0 a10:0@1");
+    }
+
+    static void allUrgentOnesAreLookedAt() {
+        Dramwright d = new Dramwright();
+        d.distance('A', 30);
+        d.policy('b', 10);
+        for (int i = 0; i < 8; i++) {
+            d.write(0, Check.at(0, 0, i, 0), i, 15, false);
+        }
+        for (int i = 0; i < 7; i++) {
+            d.read(0, Check.at(0, 0, 8 + i, 0));
+        }
+        d.master(1, 3, 1);
+        d.read(1, Check.at(0, 1, 30, 0));
+        d.go(20);
+        Check.same("16 wait", d.queued(true) + d.queued(false), 16);
+        Check.same("the youngest of all goes first by its priority",
+            Check.trace(d), "a00:0@0 a01:30@10 p00@11 a00:0@15");
+    }
+
+    static void aPatrolIsNotUrgentForTheOneBefore() {
+        Dramwright d = new Dramwright();
+        d.distance('A', 30);
+        d.policy('b', 20);
+        d.policy('p', 1);
+        d.rows('c');
+        d.go(2);
+        d.policy('p', 0);
+        Check.same("a patrol waits", d.queued(false), 1);
+        d.go(80);
+        Check.same("it was urgent in the end", d.patrolled(), 1);
+        d.master(0, 3, 1);
+        d.read(0, Check.at(0, 0, 5, 0));
+        d.policy('p', 1);
+        int before = d.commands();
+        d.go(1);
+        Check.same("the next one came", d.queued(false), 2);
+        Check.same("the greater priority goes first", Check.trace(d, before), "a00:5@82");
+    }
+
     static void drainingGoesOnUntilAReadWaits() {
         Dramwright d = new Dramwright();
         d.policy('u', 4);

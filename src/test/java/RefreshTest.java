@@ -85,6 +85,51 @@ final class RefreshTest {
         Check.same("f of the rank, or g of the bank", d.opened(0, 0, 0) + d.opened(1, 0, 5), 0);
     }
 
+    static void anFBeginsAllCountsOfItsRank() {
+        Dramwright d = new Dramwright();
+        for (int bank = 0; bank < 4; bank++) {
+            d.read(0, Check.at(0, bank, 31, 0));
+            d.read(0, Check.at(1, bank, 31, 0));
+        }
+        d.finish(300);
+        d.policy('a', 1);
+        int before = d.commands();
+        for (int i = 0; i < 50 && d.owed(0) == 0; i++) {
+            Check.same("counted till then", d.opened(0, 3, 31), 1);
+            d.go(1);
+        }
+        Check.isTrue("f " + Check.trace(d, before), Check.trace(d, before).indexOf("f0") > 0);
+        for (int bank = 0; bank < 4; bank++) {
+            Check.same("bank " + bank, d.opened(0, bank, 31), 0);
+            Check.same("rank 1 has its own", d.opened(1, bank, 31), 1);
+        }
+    }
+
+    static void aGBeginsAllCountsOfItsBank() {
+        Dramwright d = new Dramwright();
+        for (int bank = 0; bank < 4; bank++) {
+            d.read(0, Check.at(0, bank, 31, 0));
+        }
+        d.finish(300);
+        d.policy('a', 1);
+        d.policy('g', 1);
+        for (int i = 0; i < 50 && d.owed(0) > -2; i++) {
+            d.go(1);
+        }
+        Check.same("g of the banks 0 and 1", d.opened(0, 0, 31) + d.opened(0, 1, 31), 0);
+        Check.same("the others go on", d.opened(0, 2, 31) + d.opened(0, 3, 31), 2);
+    }
+
+    static void aRankThatOwes4DoesNotRest() {
+        Dramwright d = new Dramwright();
+        d.policy('i', 50);
+        d.policy('r', 60);
+        d.go(40);
+        d.go(60);
+        Check.same("4 owed from 50 on", d.owed(0), 4);
+        Check.same("no d", d.commands(), 0);
+    }
+
     static void restAndWaking() {
         Dramwright d = new Dramwright();
         d.policy('r', 10);

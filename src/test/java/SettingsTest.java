@@ -187,6 +187,22 @@ final class SettingsTest {
         placeIs(d, 4095, 1, 3 ^ 3, 31, 15);
     }
 
+    static void promise7PlaceOfEachBit() {
+        String[] parts = {"ccccbbkrrrrr", "bbcccckrrrrr", "ccccrrrrrbbk", "kbbccccrrrrr"};
+        for (int map = 0; map < 4; map++) {
+            Dramwright d = new Dramwright();
+            moveTo(d, map, false);
+            placeIs(d, 0, 0, 0, 0, 0);
+            for (int bit = 0; bit < 12; bit++) {
+                char part = parts[map].charAt(bit);
+                int value = 1 << bit - parts[map].indexOf(part);
+                for (char other : "kbrc".toCharArray()) {
+                    Check.same("map " + map + " bit " + bit, d.place(1 << bit, other), other == part ? value : 0);
+                }
+            }
+        }
+    }
+
     private static void moveTo(Dramwright d, int map, boolean mixes) {
         d.map(map, mixes);
         Check.same("a cycle is enough", d.finish(10), 1);
