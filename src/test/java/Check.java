@@ -51,6 +51,20 @@ final class Check {
         same(what + " has no text of the machine", got.getMessage(), null);
     }
 
+    /** A question whose answer may be an exception. */
+    interface Question {
+        Object ask();
+    }
+
+    /** The answer, or the name of the exception that was thrown instead. */
+    static Object answer(Question question) {
+        try {
+            return question.ask();
+        } catch (RuntimeException e) {
+            return "throws." + e.getClass().getSimpleName();
+        }
+    }
+
     /** The address that the map 0 puts at a place. */
     static int at(int rank, int bank, int row, int column) {
         return column | bank << 4 | rank << 6 | row << 7;
