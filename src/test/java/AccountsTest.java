@@ -60,18 +60,15 @@ final class AccountsTest {
         Check.illegal("capital", () -> d.waits('F'));
         d.read(0, 0);
         d.read(1, 300);
-        d.write(1, 300, 5, 15, false);
-        d.finish(300);
+        Check.finishedWrite(d, 1, 300, 5);
         Check.same("all together", Check.allWaits(d), (long) d.waited(0) + d.waited(1) + d.waited(2));
     }
 
     static void promise43WaitsOfOneBank() {
         Dramwright d = new Dramwright();
-        d.read(0, 0);
-        d.finish(100);
+        Check.finishedRead(d, 0, 0);
         Check.same("A", d.waits('b'), 4L);
-        d.read(0, Check.at(0, 0, 1, 0));
-        d.finish(100);
+        Check.finishedRead(d, 0, Check.at(0, 0, 1, 0));
         Check.same("p at 11, a at 15, r at 19", Check.trace(d), "a00:0@0 r00:0@4 p00@11 a00:1@15 r00:0@19");
         Check.same("B and A", d.waits('b'), 4L + 8);
         Check.same("no others", Check.allWaits(d), 12L);
@@ -110,8 +107,7 @@ final class AccountsTest {
         Check.same("Q behind the r at 4", q.waits('s'), 10L);
         Dramwright j = new Dramwright();
         j.distance('J', 40);
-        j.write(0, 0, 1, 15, false);
-        j.finish(100);
+        Check.finishedWrite(j, 0, 0, 1);
         j.read(0, 1);
         j.go(30);
         Check.same("J", j.waits('s'), 30L);
@@ -148,8 +144,7 @@ final class AccountsTest {
     static void promise43OtherDistancesAreOfTheBank() {
         Dramwright d = new Dramwright();
         d.distance('C', 50);
-        d.read(0, Check.at(0, 0, 0, 0));
-        d.finish(300);
+        Check.finishedRead(d, 0, Check.at(0, 0, 0, 0));
         d.read(0, Check.at(0, 0, 1, 0));
         long before = d.waits('b');
         d.go(30);
@@ -188,8 +183,7 @@ final class AccountsTest {
         Check.same("R", d.waits('s'), 1L);
         Dramwright e = new Dramwright();
         e.policy('i', 50);
-        e.read(0, 0);
-        e.finish(100);
+        Check.finishedRead(e, 0, 0);
         Check.pass(e, (int) (400 - e.cycle()));
         long before = e.waits('f');
         e.read(0, 1);
@@ -216,8 +210,7 @@ final class AccountsTest {
         for (int i = 0; i < 3; i++) {
             d.read(0, 0);
             d.read(0, 1);
-            d.read(0, 2);
-            d.finish(100);
+            Check.finishedRead(d, 0, 2);
         }
         Check.same("mended", d.mended(), 3);
         Check.same("lost", d.lost(), 3);
@@ -299,12 +292,10 @@ final class AccountsTest {
         Check.thrown("none issued yet", ArithmeticException.class, () -> d.hitShare());
         d.finish(100);
         Check.same("no hit", d.hitShare(), 0.0f);
-        d.read(0, 1);
-        d.finish(100);
+        Check.finishedRead(d, 0, 1);
         Check.same("one of two", d.hitShare(), 0.5f);
         d.write(0, 2, 1, 15, false);
-        d.read(0, 2);
-        d.finish(100);
+        Check.finishedRead(d, 0, 2);
         Check.same("two of three, forwarded ones are not issued", d.hitShare(), 2.0f / 3.0f);
         d.policy('p', 1);
         d.go(1);
@@ -343,8 +334,7 @@ final class AccountsTest {
         for (int what = 0; what < 5; what++) {
             Dramwright d = new Dramwright();
             d.code('n');
-            d.write(0, 0, 1, 15, false);
-            d.finish(100);
+            Check.finishedWrite(d, 0, 0, 1);
             switch (what) {
                 case 0: d.stick(0, 0, 0, 0, 0, false); break;
                 case 1: d.fade(0, 0, 0, 0, 0, 1); break;
@@ -352,10 +342,8 @@ final class AccountsTest {
                 case 3: d.eye(0, 20, 1); break;
                 default: d.warmth(99); break;
             }
-            d.read(0, Check.at(0, 0, 1, 0));
-            d.finish(100);
-            d.read(0, 0);
-            d.finish(100);
+            Check.finishedRead(d, 0, Check.at(0, 0, 1, 0));
+            Check.finishedRead(d, 0, 0);
             Check.same("another word", d.valueOf(2), 0);
             Check.isTrue("but something was told", d.isConsistent());
         }

@@ -2,6 +2,9 @@ import java.util.Objects;
 
 /** What the tests share: comparisons that fail with a text, and short names for addresses and traces. */
 final class Check {
+    /** Numbers that no argument may have. */
+    static final int[] FAR = {Integer.MIN_VALUE, -1000, 1000000, Integer.MAX_VALUE};
+
     private Check() {
     }
 
@@ -68,6 +71,42 @@ final class Check {
     /** The address that the map 0 puts at a place. */
     static int at(int rank, int bank, int row, int column) {
         return column | bank << 4 | rank << 6 | row << 7;
+    }
+
+    /** Brings a read, lets all requests be done, and tells its number. */
+    static int finishedRead(Dramwright d, int master, int address) {
+        int request = d.read(master, address);
+        d.finish(300);
+        return request;
+    }
+
+    /** The word that a read of the master 0 reads. */
+    static int wordAt(Dramwright d, int address) {
+        return d.valueOf(finishedRead(d, 0, address));
+    }
+
+    /** How a read of the master 0 reads its word. */
+    static char flagAt(Dramwright d, int address) {
+        return d.flagOf(finishedRead(d, 0, address));
+    }
+
+    /** Brings a write of a whole word without poison, lets all requests be done, and tells its number. */
+    static int finishedWrite(Dramwright d, int master, int address, int value) {
+        int request = d.write(master, address, value, 15, false);
+        d.finish(300);
+        return request;
+    }
+
+    /** Brings writes to the first words, of their numbers. */
+    static void bringWrites(Dramwright d, int count) {
+        for (int i = 0; i < count; i++) {
+            d.write(0, i, i, 15, false);
+        }
+    }
+
+    /** Lets cycles pass until one is next. */
+    static void passTill(Dramwright d, int cycle) {
+        pass(d, (int) (cycle - d.cycle()));
     }
 
     /** Lets many cycles pass. */

@@ -50,8 +50,7 @@ final class ChipsTest {
         d.rows('c');
         int[] due = {3, 2, 1, 2, 3, 2};
         for (int i = 0; i < rows.length; i++) {
-            d.read(0, Check.at(0, 1, rows[i], 0));
-            d.finish(100);
+            Check.finishedRead(d, 0, Check.at(0, 1, rows[i], 0));
             d.go(30);
             Check.same("shut again", d.openRow(0, 1), -1);
             Check.same("behind " + i, d.learned(0, 1), due[i]);
@@ -67,14 +66,12 @@ final class ChipsTest {
         Dramwright d = new Dramwright();
         d.rows('c');
         for (int i = 0; i < 6; i++) {
-            d.read(0, 0);
-            d.finish(100);
+            Check.finishedRead(d, 0, 0);
             d.go(30);
         }
         Check.same("not below 0", d.learned(0, 0), 0);
         for (int i = 1; i < 6; i++) {
-            d.read(0, Check.at(0, 0, i, 0));
-            d.finish(100);
+            Check.finishedRead(d, 0, Check.at(0, 0, i, 0));
             d.go(30);
         }
         Check.same("not above 3", d.learned(0, 0), 3);
@@ -83,10 +80,8 @@ final class ChipsTest {
     static void promise27Opened() {
         Dramwright d = new Dramwright();
         d.read(0, Check.at(0, 0, 4, 0));
-        d.read(0, Check.at(0, 0, 9, 0));
-        d.finish(300);
-        d.read(0, Check.at(0, 0, 4, 0));
-        d.finish(300);
+        Check.finishedRead(d, 0, Check.at(0, 0, 9, 0));
+        Check.finishedRead(d, 0, Check.at(0, 0, 4, 0));
         Check.same("row 4", d.opened(0, 0, 4), 2);
         Check.same("row 9", d.opened(0, 0, 9), 1);
         Check.same("row 3", d.opened(0, 0, 3), 0);
@@ -114,8 +109,7 @@ final class ChipsTest {
     }
 
     private static void openOnce(Dramwright d, int row) {
-        d.read(0, Check.at(0, 0, row, 0));
-        d.finish(100);
+        Check.finishedRead(d, 0, Check.at(0, 0, row, 0));
         d.go(40);
     }
 
@@ -159,8 +153,7 @@ final class ChipsTest {
     static void promise29Commands() {
         Dramwright d = new Dramwright();
         Check.same("0", d.commands(), 0);
-        d.read(0, 0);
-        d.finish(50);
+        Check.finishedRead(d, 0, 0);
         Check.same("2", d.commands(), 2);
     }
 
@@ -298,8 +291,7 @@ final class ChipsTest {
         for (int i = 0; i < 30; i++) {
             d.slow(i % 2 == 0);
             d.read(i % 4, i * 389 % 4096);
-            d.write(i % 4, i * 911 % 4096, i, 15, false);
-            d.finish(300);
+            Check.finishedWrite(d, i % 4, i * 911 % 4096, i);
             d.rows('c');
             d.go(50);
             Check.isTrue("lawful by the distances that held", d.isLawful());

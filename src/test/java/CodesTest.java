@@ -17,14 +17,12 @@ final class CodesTest {
     private static Dramwright with(char code, int word) {
         Dramwright d = new Dramwright();
         d.code(code);
-        d.write(0, 0, word, 15, false);
-        d.finish(100);
+        Check.finishedWrite(d, 0, 0, word);
         return d;
     }
 
     private static String readOf(Dramwright d) {
-        int request = d.read(0, 0);
-        d.finish(100);
+        int request = Check.finishedRead(d, 0, 0);
         return d.flagOf(request) + Integer.toHexString(d.valueOf(request));
     }
 
@@ -170,8 +168,7 @@ final class CodesTest {
         d.map(0, false);
         d.finish(10);
         Check.same("mended as it was moved", readOf(d), "r77");
-        int request = d.read(0, Check.at(0, 0, 5, 0));
-        d.finish(300);
+        int request = Check.finishedRead(d, 0, Check.at(0, 0, 5, 0));
         Check.same("a lost one is poisoned", d.flagOf(request), 'p');
         Check.same("as it was read", d.valueOf(request), 6);
         Check.same("moving is no reading", d.mended() + d.lost() + d.faults(0, 0, 5), 0);

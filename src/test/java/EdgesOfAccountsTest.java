@@ -21,8 +21,7 @@ final class EdgesOfAccountsTest {
 
     static void energyInTheCycleOfPAndAtRest() {
         Dramwright d = new Dramwright();
-        d.read(0, 0);
-        d.finish(50);
+        Check.finishedRead(d, 0, 0);
         d.rows('c');
         long before = d.energy();
         d.go(1);
@@ -93,8 +92,7 @@ final class EdgesOfAccountsTest {
     static void waitsForRefreshFrom32Owed() {
         Dramwright d = new Dramwright();
         d.policy('i', 50);
-        d.read(0, 0);
-        d.finish(50);
+        Check.finishedRead(d, 0, 0);
         Check.pass(d, (int) (351 - d.cycle()));
         Check.same("28 are owed", d.owed(0), 28);
         d.read(0, 1);
@@ -241,15 +239,12 @@ final class EdgesOfAccountsTest {
         d.go(1);
         Check.same("counted with it", d.mended(), 1);
         d.finish(50);
-        d.read(0, 1);
-        d.finish(50);
+        Check.finishedRead(d, 0, 1);
         Check.same("one lost", d.mended() * 10 + d.lost(), 11);
-        d.read(0, 0);
-        d.finish(50);
+        Check.finishedRead(d, 0, 0);
         Check.same("the same word again, for a read of a master writes nothing back", d.mended(), 2);
         d.write(0, 0, 1, 15, false);
-        d.read(0, 0);
-        d.finish(50);
+        Check.finishedRead(d, 0, 0);
         Check.same("a forwarded one reads nothing", d.mended() * 10 + d.lost(), 21);
     }
 
@@ -333,8 +328,7 @@ final class EdgesOfAccountsTest {
         d.flip(0, 0, 0, 1, 31);
         Check.same("a lost one is left", d.flip(0, 0, 0, 2, 31), 0);
         Check.same("a code bit", d.flip(0, 0, 0, 3, 38), 1);
-        int read = d.read(0, 1);
-        d.finish(50);
+        int read = Check.finishedRead(d, 0, 1);
         Check.same("the poison stays", d.flagOf(read), 'p');
     }
 
@@ -344,8 +338,7 @@ final class EdgesOfAccountsTest {
             e.rows('c');
             e.master(1, 0, share);
             for (int i = 0; i < 2; i++) {
-                e.read(1, Check.at(0, 3, 0, 0));
-                e.finish(100);
+                Check.finishedRead(e, 1, Check.at(0, 3, 0, 0));
                 e.go(20);
             }
             e.policy('p', 1);
@@ -365,8 +358,7 @@ final class EdgesOfAccountsTest {
         d.distance('E', 9);
         d.read(0, Check.at(0, 1, 0, 0));
         d.go(2);
-        d.read(2, Check.at(0, 0, 9, 0));
-        d.finish(100);
+        Check.finishedRead(d, 2, Check.at(0, 0, 9, 0));
         Check.same("the patrol is older, but its priority is less", Check.trace(d).substring(0, 30), "a01:0@0 r01:0@4 a00:9@9 r00:0@");
     }
 
@@ -396,17 +388,14 @@ final class EdgesOfAccountsTest {
         Dramwright d = new Dramwright();
         d.read(0, 0);
         d.go(1);
-        d.read(0, 1);
-        d.finish(100);
+        Check.finishedRead(d, 0, 1);
         Check.same("opened for the first one, open for the second one", d.hitShare(), 0.5f);
         d.read(0, Check.at(0, 0, 1, 0));
         d.go(1);
-        d.read(0, 2);
-        d.finish(100);
+        Check.finishedRead(d, 0, 2);
         Check.same("shut already", d.hitShare(), 0.25f);
         for (int i = 0; i < 3; i++) {
-            d.read(0, Check.at(0, 0, 0, i));
-            d.finish(100);
+            Check.finishedRead(d, 0, Check.at(0, 0, 0, i));
         }
         Check.same("1 of 7 and 3 more, as floats", d.hitShare(), (float) 4 / (float) 7);
     }
@@ -436,8 +425,7 @@ final class EdgesOfAccountsTest {
         d.go(1);
         Check.same("from 5 to 15", d.meanDelay(), 10.0);
         d.read(0, 1);
-        d.read(0, 2);
-        d.finish(100);
+        Check.finishedRead(d, 0, 2);
         Check.same("10, 6 and 9", d.meanDelay(), 25.0 / 3.0);
     }
 

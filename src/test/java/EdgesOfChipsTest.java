@@ -1,7 +1,5 @@
 /** The boundary cases of the promises 23 to 33, each one on both sides. */
 final class EdgesOfChipsTest {
-    private static final int[] FAR = {Integer.MIN_VALUE, -1, Integer.MAX_VALUE};
-
     private EdgesOfChipsTest() {
     }
 
@@ -15,7 +13,7 @@ final class EdgesOfChipsTest {
         for (int number = 0; number <= last; number++) {
             call.make(new Dramwright(), number);
         }
-        for (int number : FAR) {
+        for (int number : Check.FAR) {
             Check.outOfBounds(what + " " + number, () -> call.make(new Dramwright(), number));
         }
         Twins.outOfBounds(what + " " + (last + 1), Twins::busy, d -> call.make(d, last + 1));
@@ -88,12 +86,10 @@ final class EdgesOfChipsTest {
         d.policy('s', 1);
         d.stick(0, 0, 9, 0, 0, true);
         for (int i = 0; i < 3; i++) {
-            d.read(0, Check.at(0, 0, 9, 0));
-            d.finish(100);
+            Check.finishedRead(d, 0, Check.at(0, 0, 9, 0));
         }
         Check.same("the row that was replaced is still open", d.openRow(0, 0), 9);
-        d.read(0, Check.at(0, 0, 9, 0));
-        d.finish(100);
+        Check.finishedRead(d, 0, Check.at(0, 0, 9, 0));
         Check.same("the spare row", d.openRow(0, 0), 32);
     }
 
@@ -116,8 +112,7 @@ final class EdgesOfChipsTest {
         int[] due = {3, 2, 1, 0, 0, 1, 2, 3, 3, 2, 3};
         Check.same("at first", d.learned(0, 0), 2);
         for (int i = 0; i < rows.length; i++) {
-            d.read(0, Check.at(0, 0, rows[i], 0));
-            d.finish(100);
+            Check.finishedRead(d, 0, Check.at(0, 0, rows[i], 0));
             d.go(20);
             Check.same("behind " + i, d.learned(0, 0), due[i]);
         }
@@ -128,8 +123,7 @@ final class EdgesOfChipsTest {
         d.rows('c');
         int[] banks = {0, 1, 0, 1, 0, 1};
         for (int bank : banks) {
-            d.read(0, Check.at(0, bank, 6 + bank, 0));
-            d.finish(100);
+            Check.finishedRead(d, 0, Check.at(0, bank, 6 + bank, 0));
             d.go(20);
         }
         Check.same("the same row of each bank three times", d.learned(0, 0) * 10 + d.learned(0, 1), 11);
@@ -157,8 +151,7 @@ final class EdgesOfChipsTest {
         Dramwright d = new Dramwright();
         d.policy('h', 2);
         d.rows('c');
-        d.read(0, Check.at(0, 0, 5, 0));
-        d.finish(100);
+        Check.finishedRead(d, 0, Check.at(0, 0, 5, 0));
         d.go(50);
         Check.same("none", d.guarded(), 0);
         d.read(0, Check.at(0, 0, 5, 0));
@@ -185,7 +178,7 @@ final class EdgesOfChipsTest {
         d.go(4);
         Check.same("the last one", (char) d.command(1, 't'), 'r');
         Check.outOfBounds("none behind it", () -> d.command(2, 't'));
-        for (int far : FAR) {
+        for (int far : Check.FAR) {
             Check.outOfBounds("far " + far, () -> d.command(far, 't'));
         }
         Twins.outOfBounds("-1", Twins::busy, e -> e.command(-1, 'k'));
@@ -220,10 +213,8 @@ final class EdgesOfChipsTest {
     static void commandOfEachLetter() {
         Dramwright d = new Dramwright();
         d.rows('c');
-        d.write(0, Check.at(1, 3, 31, 15), 1, 15, false);
-        d.finish(100);
-        d.read(0, Check.at(1, 3, 31, 15));
-        d.finish(100);
+        Check.finishedWrite(d, 0, Check.at(1, 3, 31, 15), 1);
+        Check.finishedRead(d, 0, Check.at(1, 3, 31, 15));
         d.train(1);
         d.go(60);
         d.policy('a', 1);
@@ -254,8 +245,7 @@ final class EdgesOfChipsTest {
         Check.pass(d, 150 * 500 + 60);
         int cycle = (int) d.cycle();
         int before = d.commands();
-        d.read(0, 0);
-        d.finish(300);
+        Check.finishedRead(d, 0, 0);
         Check.same("far from 0", d.command(find(d, 'r', before), 'c'), cycle + 4);
     }
 
@@ -298,7 +288,7 @@ final class EdgesOfChipsTest {
         Twins.illegal("0", Twins::busy, e -> e.judge('a', 0, 0, 0));
         Twins.illegal("1000", Twins::busy, e -> e.judge('a', 0, 0, 1000));
         Twins.illegal("-1", Twins::busy, e -> e.judge('a', 0, 0, -1));
-        for (int far : FAR) {
+        for (int far : Check.FAR) {
             Check.illegal("far " + far, () -> d.judge('a', 0, 0, far));
         }
         Check.same("none was put there", d.judged(), 2);
@@ -448,15 +438,13 @@ final class EdgesOfChipsTest {
         Dramwright d = new Dramwright();
         d.rows('c');
         d.slow(true);
-        d.read(0, 0);
-        d.finish(50);
+        Check.finishedRead(d, 0, 0);
         d.go(20);
         Check.same("half of them", Check.trace(d), "a00:0@0 r00:0@2 p00@5");
         Check.isTrue("lawful, too", d.isLawful());
         d.slow(false);
         Check.isTrue("even if others hold now", d.isLawful());
-        d.read(0, 0);
-        d.finish(50);
+        Check.finishedRead(d, 0, 0);
         d.slow(d.openRow(0, 0) >= 0);
         Check.isTrue("and behind the next ones", d.isLawful());
     }

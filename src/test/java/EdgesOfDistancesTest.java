@@ -259,6 +259,17 @@ final class EdgesOfDistancesTest {
         isFree('P', "g02", "a00", "a03", "g03", "g01", "a12", "f10", "d10", "t10");
     }
 
+    static void distancePIsToAnythingOfTheBank() {
+        for (String next : new String[] {"r02", "w02", "p02"}) {
+            Dramwright d = with('P', 99, true);
+            judge(d, "g02");
+            Check.same("half of it, rounded up", d.judge('a', 0, 2, 50), '-');
+            d.slow(false);
+            Check.same(next + " with the fast clock", judge(d, next, 48), 'P');
+            Check.same(next + " 99 behind the g", judge(d, next, 49), '-');
+        }
+    }
+
     static void distanceR() {
         keepsEach('R', "d00 x00", "a00", "a03", "g01", "f00", "t00", "d00");
         isFree('R', "d00 x00", "a10", "f10", "d10");
@@ -289,8 +300,7 @@ final class EdgesOfDistancesTest {
     static void withTheFastClockAgainAllCountWhole() {
         Dramwright d = with('A', 9, true);
         d.slow(false);
-        d.read(0, 0);
-        d.finish(300);
+        Check.finishedRead(d, 0, 0);
         Check.same("A 9", Check.trace(d), "a00:0@0 r00:0@9");
     }
 
@@ -302,10 +312,8 @@ final class EdgesOfDistancesTest {
                 d.distance('A', a);
                 d.distance('B', b);
                 d.distance('C', 99);
-                d.read(0, 0);
-                d.finish(300);
-                d.read(0, 128);
-                d.finish(300);
+                Check.finishedRead(d, 0, 0);
+                Check.finishedRead(d, 0, 128);
                 int shut = Math.max(99, a + 7);
                 Check.same("A " + a + " B " + b, Check.trace(d), "a00:0@0 r00:0@" + a + " p00@" + shut + " a00:1@"
                     + (shut + b) + " r00:0@" + (shut + b + a));

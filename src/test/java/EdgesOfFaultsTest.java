@@ -1,20 +1,6 @@
 /** The boundary cases of the promises 34 to 41 and of the Terms "Faults" and "Codes", each one on both sides. */
 final class EdgesOfFaultsTest {
-    private static final int[] FAR = {Integer.MIN_VALUE, -1000, 1000000, Integer.MAX_VALUE};
-
     private EdgesOfFaultsTest() {
-    }
-
-    private static char flagOfRead(Dramwright d, int address) {
-        int request = d.read(0, address);
-        d.finish(300);
-        return d.flagOf(request);
-    }
-
-    private static int valueOfRead(Dramwright d, int address) {
-        int request = d.read(0, address);
-        d.finish(300);
-        return d.valueOf(request);
     }
 
     /** A call for a bit. */
@@ -46,7 +32,7 @@ final class EdgesOfFaultsTest {
         for (int[] at : wrong) {
             Twins.outOfBounds("place", Twins::busy, d -> call.make(d, at[0], at[1], at[2], at[3], at[4]));
         }
-        for (int far : FAR) {
+        for (int far : Check.FAR) {
             Check.outOfBounds("rank", () -> call.make(new Dramwright(), far, 0, 0, 0, 0));
             Check.outOfBounds("bank", () -> call.make(new Dramwright(), 0, far, 0, 0, 0));
             Check.outOfBounds("row", () -> call.make(new Dramwright(), 0, 0, far, 0, 0));
@@ -129,7 +115,7 @@ final class EdgesOfFaultsTest {
         Check.same("9999 is taken", d.fade(0, 0, 0, 0, 1, 9999), 2);
         Twins.illegal("0", Twins::busy, e -> e.fade(0, 0, 0, 0, 0, 0));
         Twins.illegal("10000", Twins::busy, e -> e.fade(0, 0, 0, 0, 0, 10000));
-        for (int far : FAR) {
+        for (int far : Check.FAR) {
             Check.illegal("far " + far, () -> d.fade(0, 0, 0, 0, 2, far));
         }
     }
@@ -159,10 +145,9 @@ final class EdgesOfFaultsTest {
                 d.code('n');
                 d.stick(0, 0, 0, 0, bit, one == 1);
                 for (int word : new int[] {0, -1}) {
-                    d.write(0, 0, word, 15, false);
-                    d.finish(100);
+                    Check.finishedWrite(d, 0, 0, word);
                     int due = one == 1 ? word | 1 << bit : word & ~(1 << bit);
-                    Check.same("bit " + bit + " at " + one, valueOfRead(d, 0), due);
+                    Check.same("bit " + bit + " at " + one, Check.wordAt(d, 0), due);
                 }
             }
         }
@@ -173,15 +158,15 @@ final class EdgesOfFaultsTest {
             Dramwright d = new Dramwright();
             d.code('c');
             d.stick(0, 0, 0, 0, bit, true);
-            Check.same("bit " + bit + " of the code c", flagOfRead(d, 0), 'm');
-            Check.same("the data are as they are", valueOfRead(d, 0), 0);
+            Check.same("bit " + bit + " of the code c", Check.flagAt(d, 0), 'm');
+            Check.same("the data are as they are", Check.wordAt(d, 0), 0);
             Dramwright s = new Dramwright();
             s.stick(0, 0, 0, 0, bit, true);
-            Check.same("bit " + bit + " of the code s, which has 7", flagOfRead(s, 0), bit < 39 ? 'm' : 'r');
+            Check.same("bit " + bit + " of the code s, which has 7", Check.flagAt(s, 0), bit < 39 ? 'm' : 'r');
             Dramwright n = new Dramwright();
             n.code('n');
             n.stick(0, 0, 0, 0, bit, true);
-            Check.same("none is looked at", flagOfRead(n, 0), 'r');
+            Check.same("none is looked at", Check.flagAt(n, 0), 'r');
         }
     }
 
@@ -192,8 +177,7 @@ final class EdgesOfFaultsTest {
                 place++;
             } while (Integer.bitCount(place) == 1);
             Dramwright d = new Dramwright();
-            d.write(0, 0, 0x5A5A5A5A, 15, false);
-            d.finish(50);
+            Check.finishedWrite(d, 0, 0, 0x5A5A5A5A);
             for (int k = 0; k < 6; k++) {
                 if ((place >> k & 1) == 1) {
                     d.flip(0, 0, 0, 0, 32 + k);
@@ -203,11 +187,11 @@ final class EdgesOfFaultsTest {
             if (isEven) {
                 d.flip(0, 0, 0, 0, 38);
             }
-            Check.same("z is " + place + ", odd", flagOfRead(d, 0), 'm');
-            Check.same("the bit of that place", valueOfRead(d, 0), 0x5A5A5A5A ^ 1 << bit);
+            Check.same("z is " + place + ", odd", Check.flagAt(d, 0), 'm');
+            Check.same("the bit of that place", Check.wordAt(d, 0), 0x5A5A5A5A ^ 1 << bit);
             d.flip(0, 0, 0, 0, 38);
-            Check.same("z is " + place + ", even", flagOfRead(d, 0), 'l');
-            Check.same("as it is", valueOfRead(d, 0), 0x5A5A5A5A);
+            Check.same("z is " + place + ", even", Check.flagAt(d, 0), 'l');
+            Check.same("as it is", Check.wordAt(d, 0), 0x5A5A5A5A);
         }
         Check.same("the last place", place, 38);
     }
@@ -215,11 +199,10 @@ final class EdgesOfFaultsTest {
     static void codeSMendsACodeBitIfZIs0OrAPowerOf2() {
         for (int k = 0; k < 7; k++) {
             Dramwright d = new Dramwright();
-            d.write(0, 0, 0x13579BDF, 15, false);
-            d.finish(50);
+            Check.finishedWrite(d, 0, 0, 0x13579BDF);
             d.flip(0, 0, 0, 0, 32 + k);
-            Check.same("code bit " + k, flagOfRead(d, 0), 'm');
-            Check.same("the data stay", valueOfRead(d, 0), 0x13579BDF);
+            Check.same("code bit " + k, Check.flagAt(d, 0), 'm');
+            Check.same("the data stay", Check.wordAt(d, 0), 0x13579BDF);
         }
     }
 
@@ -234,10 +217,10 @@ final class EdgesOfFaultsTest {
             if (Integer.bitCount(z) % 2 == 0) {
                 d.flip(0, 0, 0, 0, 38);
             }
-            Check.same("z is " + z + ", odd", flagOfRead(d, 0), 'l');
-            Check.same("as it is", valueOfRead(d, 0), 0);
+            Check.same("z is " + z + ", odd", Check.flagAt(d, 0), 'l');
+            Check.same("as it is", Check.wordAt(d, 0), 0);
             d.flip(0, 0, 0, 0, 38);
-            Check.same("z is " + z + ", even", flagOfRead(d, 0), 'l');
+            Check.same("z is " + z + ", even", Check.flagAt(d, 0), 'l');
         }
     }
 
@@ -269,8 +252,7 @@ final class EdgesOfFaultsTest {
                 }
                 char due = u == 0 && v == 0 ? 'r' : u == 0 || v == 0 || digit >= 0 ? 'm' : 'l';
                 int word = u != 0 && v != 0 && digit >= 0 ? u << 4 * digit : 0;
-                int request = d.read(0, 0);
-                d.finish(100);
+                int request = Check.finishedRead(d, 0, 0);
                 Check.same("u " + u + " v " + v, d.flagOf(request), due);
                 Check.same("u " + u + " v " + v, d.valueOf(request), word);
                 turnCode(d, u | v << 4);
@@ -301,11 +283,10 @@ final class EdgesOfFaultsTest {
         Dramwright d = new Dramwright();
         d.code('n');
         d.fade(0, 0, 0, 0, 0, 1);
-        d.write(0, 0, 1, 15, false);
-        d.finish(100);
-        Check.same("written behind the a", valueOfRead(d, 0), 1);
+        Check.finishedWrite(d, 0, 0, 1);
+        Check.same("written behind the a", Check.wordAt(d, 0), 1);
         d.go(100);
-        Check.same("the row is open, and not restored anew", valueOfRead(d, 0), 1);
+        Check.same("the row is open, and not restored anew", Check.wordAt(d, 0), 1);
     }
 
     static void eyeTakesRanks0And1() {
@@ -321,7 +302,7 @@ final class EdgesOfFaultsTest {
         Check.same("20", new Dramwright().eye(0, 20, 8), 8);
         Twins.illegal("-1", Twins::busy, d -> d.eye(1, -1, 8));
         Twins.illegal("21", Twins::busy, d -> d.eye(1, 21, 8));
-        for (int far : FAR) {
+        for (int far : Check.FAR) {
             Check.illegal("far " + far, () -> new Dramwright().eye(0, far, 8));
         }
     }
@@ -331,8 +312,30 @@ final class EdgesOfFaultsTest {
         Check.same("16", new Dramwright().eye(0, 4, 16), 8);
         Twins.illegal("0", Twins::busy, d -> d.eye(1, 4, 0));
         Twins.illegal("17", Twins::busy, d -> d.eye(1, 4, 17));
-        for (int far : FAR) {
+        for (int far : Check.FAR) {
             Check.illegal("far " + far, () -> new Dramwright().eye(0, 4, far));
+        }
+    }
+
+    static void eyeBeginsAtFirstAt4AndIs8Wide() {
+        for (int rank = 0; rank < 2; rank++) {
+            int address = Check.at(rank, 0, 0, 0);
+            Dramwright d = new Dramwright();
+            d.code('n');
+            d.warmth(99);
+            d.train(rank);
+            d.go(1);
+            Check.same("13 to 20", d.delay(rank), 16);
+            d.warmth(50);
+            Check.same("9 to 16", Check.wordAt(d, address), 0);
+            d.warmth(49);
+            Check.same("8 to 15", Check.wordAt(d, address), 1);
+            Dramwright e = new Dramwright();
+            e.code('n');
+            e.warmth(49);
+            Check.same("8 to 15", Check.wordAt(e, address), 0);
+            e.warmth(50);
+            Check.same("9 to 16", Check.wordAt(e, address), 1);
         }
     }
 
@@ -343,8 +346,8 @@ final class EdgesOfFaultsTest {
                 d.code('n');
                 d.eye(0, begin, width);
                 boolean isWithin = 8 >= begin + 2 && 8 <= begin + 2 + width - 1;
-                Check.same("8 in " + (begin + 2) + " and " + width, valueOfRead(d, 0), isWithin ? 0 : 1);
-                Check.same("the other rank", valueOfRead(d, Check.at(1, 0, 0, 0)), 0);
+                Check.same("8 in " + (begin + 2) + " and " + width, Check.wordAt(d, 0), isWithin ? 0 : 1);
+                Check.same("the other rank", Check.wordAt(d, Check.at(1, 0, 0, 0)), 0);
             }
         }
     }
@@ -356,28 +359,27 @@ final class EdgesOfFaultsTest {
             d.eye(0, 3, 2);
             d.warmth(warmth);
             boolean isWithin = warmth / 10 == 4 || warmth / 10 == 5;
-            Check.same("3 and " + warmth + " by 10, 2 wide", valueOfRead(d, 0), isWithin ? 0 : 1);
+            Check.same("3 and " + warmth + " by 10, 2 wide", Check.wordAt(d, 0), isWithin ? 0 : 1);
         }
     }
 
     static void outsideTheEyeTheLowestDataBitIsReadTheOtherWayRoundAheadOfTheCode() {
         Dramwright d = new Dramwright();
-        d.write(0, 0, 6, 15, false);
-        d.finish(100);
+        Check.finishedWrite(d, 0, 0, 6);
         d.eye(0, 20, 1);
-        Check.same("mended", flagOfRead(d, 0), 'm');
-        Check.same("to what was written", valueOfRead(d, 0), 6);
+        Check.same("mended", Check.flagAt(d, 0), 'm');
+        Check.same("to what was written", Check.wordAt(d, 0), 6);
         d.flip(0, 0, 0, 0, 5);
-        Check.same("two bits are wrong", flagOfRead(d, 0), 'l');
+        Check.same("two bits are wrong", Check.flagAt(d, 0), 'l');
         d.flip(0, 0, 0, 0, 0);
-        Check.same("the lowest one is turned and turned again, one is wrong", flagOfRead(d, 0), 'm');
+        Check.same("the lowest one is turned and turned again, one is wrong", Check.flagAt(d, 0), 'm');
         d.flip(0, 0, 0, 0, 5);
-        Check.same("none is", flagOfRead(d, 0), 'r');
+        Check.same("none is", Check.flagAt(d, 0), 'r');
         Dramwright s = new Dramwright();
         s.code('n');
         s.eye(0, 20, 1);
         s.stick(0, 0, 0, 0, 0, true);
-        Check.same("a bit that sticks at 1, too", valueOfRead(s, 0), 0);
+        Check.same("a bit that sticks at 1, too", Check.wordAt(s, 0), 0);
     }
 
     static void trainSetsTheDelayToTheMidstWithin0To31() {
@@ -421,7 +423,7 @@ final class EdgesOfFaultsTest {
         d.go(1);
         Check.same("36 is above 31", d.delay(0), 31);
         d.code('n');
-        Check.same("31 is within 29 to 44", valueOfRead(d, 0), 0);
+        Check.same("31 is within 29 to 44", Check.wordAt(d, 0), 0);
     }
 
     static void faultsCountsFrom0EachReading() {
@@ -429,9 +431,9 @@ final class EdgesOfFaultsTest {
         d.stick(1, 2, 31, 0, 0, true);
         Check.same("none", d.faults(1, 2, 31), 0);
         for (int i = 1; i <= 6; i++) {
-            flagOfRead(d, Check.at(1, 2, 31, 0));
+            Check.flagAt(d, Check.at(1, 2, 31, 0));
             Check.same("each one", d.faults(1, 2, 31), i);
-            Check.same("right ones do not count", flagOfRead(d, Check.at(1, 2, 31, 1)), 'r');
+            Check.same("right ones do not count", Check.flagAt(d, Check.at(1, 2, 31, 1)), 'r');
         }
         Check.same("others", d.faults(1, 2, 30) + d.faults(1, 2, 32) + d.faults(1, 3, 31) + d.faults(0, 2, 31), 0);
     }
@@ -441,10 +443,10 @@ final class EdgesOfFaultsTest {
         d.policy('s', 1);
         d.stick(0, 0, 8, 0, 0, true);
         int address = Check.at(0, 0, 8, 0);
-        flagOfRead(d, address);
-        flagOfRead(d, address);
+        Check.flagAt(d, address);
+        Check.flagAt(d, address);
         Check.same("2 are too few", d.place(address, 'r') * 10 + d.spares(0, 0), 82);
-        flagOfRead(d, address);
+        Check.flagAt(d, address);
         Check.same("this one counted, 3 are enough", d.place(address, 'r') * 10 + d.spares(0, 0), 321);
         Check.same("the spare row begins at 0", d.faults(0, 0, 32), 0);
         Check.same("the row that was replaced keeps its count", d.faults(0, 0, 8), 3);
@@ -455,17 +457,17 @@ final class EdgesOfFaultsTest {
         d.stick(0, 0, 8, 0, 0, true);
         int address = Check.at(0, 0, 8, 0);
         for (int i = 0; i < 5; i++) {
-            flagOfRead(d, address);
+            Check.flagAt(d, address);
         }
         d.policy('s', 1);
-        flagOfRead(d, address + 1);
+        Check.flagAt(d, address + 1);
         Check.same("a word that is right replaces nothing", d.place(address, 'r'), 8);
-        flagOfRead(d, address);
+        Check.flagAt(d, address);
         Check.same("the sixth does", d.place(address, 'r'), 32);
         d.policy('s', 0);
         d.stick(0, 0, 32, 0, 0, true);
         for (int i = 0; i < 5; i++) {
-            flagOfRead(d, address);
+            Check.flagAt(d, address);
         }
         Check.same("not used any more", d.place(address, 'r') * 10 + d.spares(0, 0), 321);
     }
@@ -479,7 +481,7 @@ final class EdgesOfFaultsTest {
             Check.same("left", d.spares(1, 1), 2 - Math.min(2, i));
             d.stick(1, 1, rows[i], 0, 0, true);
             for (int k = 0; k < 4; k++) {
-                flagOfRead(d, Check.at(1, 1, rows[i], 0));
+                Check.flagAt(d, Check.at(1, 1, rows[i], 0));
             }
             Check.same("row " + rows[i], d.place(Check.at(1, 1, rows[i], 0), 'r'), due[i]);
         }
@@ -502,12 +504,11 @@ final class EdgesOfFaultsTest {
         d.flip(0, 0, 8, 7, 12);
         d.flip(0, 0, 8, 15, 31);
         for (int i = 0; i < 3; i++) {
-            flagOfRead(d, Check.at(0, 0, 8, 2));
+            Check.flagAt(d, Check.at(0, 0, 8, 2));
         }
         Check.same("replaced", d.place(Check.at(0, 0, 8, 0), 'r'), 32);
         for (int column = 0; column < 16; column++) {
-            int request = d.read(0, Check.at(0, 0, 8, column));
-            d.finish(100);
+            int request = Check.finishedRead(d, 0, Check.at(0, 0, 8, column));
             boolean isPoisoned = column == 3 || column == 7;
             int due = column == 3 ? 0x103 ^ 0x3000 : 0x100 + column;
             Check.same("flag of " + column, d.flagOf(request), isPoisoned ? 'p' : 'r');

@@ -93,9 +93,7 @@ final class EdgesOfOrderTest {
     static void drainingBeginsAboveTheUpperMark() {
         Dramwright d = new Dramwright();
         d.policy('u', 8);
-        for (int i = 0; i < 7; i++) {
-            d.write(0, i, i, 15, false);
-        }
+        Check.bringWrites(d, 7);
         d.go(1);
         Check.isFalse("7 of 8", d.isDraining());
         d.policy('u', 3);
@@ -108,9 +106,7 @@ final class EdgesOfOrderTest {
             Dramwright d = new Dramwright();
             d.policy('u', 8);
             d.policy('l', mark);
-            for (int i = 0; i < 8; i++) {
-                d.write(0, i, i, 15, false);
-            }
+            Check.bringWrites(d, 8);
             d.read(0, Check.at(1, 0, 0, 0));
             for (int i = 0; i < 100 && d.queued(true) > mark; i++) {
                 d.go(1);
@@ -127,9 +123,7 @@ final class EdgesOfOrderTest {
     static void drainingGoesOnBelowTheLowerMarkWhileNoReadWaits() {
         Dramwright d = new Dramwright();
         d.policy('u', 3);
-        for (int i = 0; i < 3; i++) {
-            d.write(0, i, i, 15, false);
-        }
+        Check.bringWrites(d, 3);
         d.finish(100);
         Check.same("none waits", d.queued(true), 0);
         d.go(50);
@@ -144,9 +138,7 @@ final class EdgesOfOrderTest {
         d.policy('u', 4);
         d.policy('l', 4);
         d.read(0, Check.at(1, 0, 0, 0));
-        for (int i = 0; i < 4; i++) {
-            d.write(0, i, i, 15, false);
-        }
+        Check.bringWrites(d, 4);
         d.go(1);
         Check.isFalse("begun by 4, ended by 4", d.isDraining());
         Check.same("the read is looked at", d.openRow(1, 0), 0);
@@ -210,16 +202,37 @@ final class EdgesOfOrderTest {
         Check.same("looked at", d.openRow(0, 0), 3);
     }
 
+    static void all17ThatCanWaitAreLookedAtIfAllAreUrgent() {
+        Dramwright d = new Dramwright();
+        d.distance('A', 99);
+        d.policy('b', 10);
+        d.policy('p', 1);
+        d.master(3, 3, 1);
+        d.go(2);
+        for (int i = 0; i < 8; i++) {
+            d.write(0, Check.at(0, 0, 1 + i, 0), 1, 15, false);
+        }
+        for (int i = 0; i < 7; i++) {
+            d.read(0, Check.at(0, 0, 9 + i, 0));
+        }
+        d.read(3, Check.at(0, 1, 30, 0));
+        Check.same("as many as can wait", d.queued(true) * 10 + d.queued(false), 89);
+        d.go(10);
+        Check.same("writes are drained, and none is urgent", Check.trace(d), "a00:0@1 p00@10");
+        long before = d.waits('h');
+        d.go(1);
+        Check.same("all are looked at", d.waits('h') - before, 0L);
+        Check.same("the youngest of all, for its priority", Check.trace(d, 2), "a01:30@12");
+    }
+
     static void urgentOnesGoAheadOfOpenRows() {
         Dramwright d = new Dramwright();
         d.policy('b', 10);
         d.distance('H', 8);
         d.distance('C', 1);
         d.distance('K', 1);
-        d.read(0, Check.at(0, 0, 0, 0));
-        d.finish(100);
-        d.read(0, Check.at(0, 1, 3, 0));
-        d.finish(100);
+        Check.finishedRead(d, 0, Check.at(0, 0, 0, 0));
+        Check.finishedRead(d, 0, Check.at(0, 1, 3, 0));
         int before = d.commands();
         d.write(0, Check.at(0, 1, 5, 0), 1, 15, false);
         for (int i = 0; i < 8; i++) {
@@ -234,8 +247,7 @@ final class EdgesOfOrderTest {
     static void openRowsGoAheadOfPriorities() {
         Dramwright d = new Dramwright();
         d.master(1, 3, 1);
-        d.read(0, Check.at(0, 0, 0, 0));
-        d.finish(100);
+        Check.finishedRead(d, 0, Check.at(0, 0, 0, 0));
         d.read(1, Check.at(1, 0, 0, 0));
         d.read(0, Check.at(0, 0, 0, 1));
         d.go(2);
@@ -264,12 +276,10 @@ final class EdgesOfOrderTest {
             d.master(1, 0, one[1]);
             d.master(2, 0, one[3]);
             for (int i = 0; i < one[0]; i++) {
-                d.read(1, Check.at(0, 3, 0, 0));
-                d.finish(100);
+                Check.finishedRead(d, 1, Check.at(0, 3, 0, 0));
             }
             for (int i = 0; i < one[2]; i++) {
-                d.write(2, Check.at(0, 3, 0, 0), 1, 15, false);
-                d.finish(100);
+                Check.finishedWrite(d, 2, Check.at(0, 3, 0, 0), 1);
             }
             d.read(1, Check.at(1, 0, 0, 0));
             d.read(2, Check.at(1, 1, 0, 0));
@@ -285,8 +295,7 @@ final class EdgesOfOrderTest {
             d.read(1, 0);
         }
         d.finish(100);
-        d.read(2, Check.at(0, 3, 0, 0));
-        d.finish(100);
+        Check.finishedRead(d, 2, Check.at(0, 3, 0, 0));
         d.read(2, Check.at(1, 0, 0, 0));
         d.read(1, Check.at(1, 1, 0, 0));
         d.go(1);
@@ -306,8 +315,7 @@ final class EdgesOfOrderTest {
         d.distance('H', 40);
         d.distance('C', 1);
         d.distance('K', 1);
-        d.read(0, Check.at(0, 0, 0, 0));
-        d.finish(100);
+        Check.finishedRead(d, 0, Check.at(0, 0, 0, 0));
         d.read(0, Check.at(0, 0, 1, 0));
         d.read(0, Check.at(0, 0, 0, 1));
         d.go(30);
@@ -315,8 +323,7 @@ final class EdgesOfOrderTest {
         Dramwright e = new Dramwright();
         e.distance('C', 1);
         e.distance('K', 1);
-        e.read(0, Check.at(0, 0, 0, 0));
-        e.finish(100);
+        Check.finishedRead(e, 0, Check.at(0, 0, 0, 0));
         e.read(0, Check.at(0, 0, 1, 0));
         e.go(1);
         Check.same("none is", e.openRow(0, 0), -1);
@@ -328,8 +335,7 @@ final class EdgesOfOrderTest {
         d.distance('H', 60);
         d.distance('C', 1);
         d.distance('K', 1);
-        d.read(0, Check.at(0, 0, 0, 0));
-        d.finish(100);
+        Check.finishedRead(d, 0, Check.at(0, 0, 0, 0));
         d.read(0, Check.at(0, 0, 1, 0));
         d.read(0, Check.at(0, 0, 0, 1));
         d.go(20);
@@ -350,13 +356,11 @@ final class EdgesOfOrderTest {
 
     static void aPartialWriteKeepsTheOtherBytesAsTheyAreReadMended() {
         Dramwright d = new Dramwright();
-        d.write(0, 0, 0x11223344, 15, false);
-        d.finish(100);
+        Check.finishedWrite(d, 0, 0, 0x11223344);
         d.flip(0, 0, 0, 0, 31);
         d.write(0, 0, 0xAABBCCDD, 1, false);
         d.finish(100);
-        int read = d.read(0, 0);
-        d.finish(100);
+        int read = Check.finishedRead(d, 0, 0);
         Check.same("mended and written", Integer.toHexString(d.valueOf(read)) + d.flagOf(read), "112233ddr");
         Check.same("the bit is stored mended", d.flip(0, 0, 0, 0, 31), 1);
     }
@@ -373,8 +377,7 @@ final class EdgesOfOrderTest {
                 }
                 d.write(0, 0, 0xAABBCCDD, mask, false);
                 d.finish(100);
-                int read = d.read(0, 0);
-                d.finish(100);
+                int read = Check.finishedRead(d, 0, 0);
                 char due = what == 0 || mask == 15 ? 'r' : 'p';
                 Check.same("what " + what + " mask " + mask, d.flagOf(read), due);
             }

@@ -33,8 +33,7 @@ final class EdgesOfPlacesTest {
         }
         Dramwright d = new Dramwright();
         d.read(0, 0);
-        d.read(0, 4095);
-        d.finish(100);
+        Check.finishedRead(d, 0, 4095);
         Check.same("read as 0, right", "" + d.flagOf(0) + d.flagOf(1) + (d.valueOf(0) | d.valueOf(1)), "rr0");
     }
 
@@ -194,8 +193,7 @@ final class EdgesOfPlacesTest {
             d.write(0, 0, 0x100, 15, false);
             d.write(0, 1, 0x101, 15, true);
             d.write(0, 2, 0x102, 15, false);
-            d.write(0, address, 0x103, 15, false);
-            d.finish(300);
+            Check.finishedWrite(d, 0, address, 0x103);
             d.flip(0, 0, 0, 0, 17);
             d.flip(0, 0, 0, 2, 17);
             d.flip(0, 0, 0, 2, 18);
@@ -205,8 +203,7 @@ final class EdgesOfPlacesTest {
             int[] words = {0x100, 0x101, 0x102 ^ 3 << 17, 0x103};
             String flags = "rppr";
             for (int i = 0; i < 4; i++) {
-                int read = d.read(0, at[i]);
-                d.finish(300);
+                int read = Check.finishedRead(d, 0, at[i]);
                 Check.same("word " + i + " by the map " + map, d.valueOf(read), words[i]);
                 Check.same("flag " + i + " by the map " + map, d.flagOf(read), flags.charAt(i));
             }
@@ -219,15 +216,13 @@ final class EdgesOfPlacesTest {
         int[] addresses = new int[48];
         for (int i = 0; i < addresses.length; i++) {
             addresses[i] = i * 87 % 4096;
-            d.write(0, addresses[i], 1000 + i, 15, false);
-            d.finish(300);
+            Check.finishedWrite(d, 0, addresses[i], 1000 + i);
         }
         for (int map = 3; map >= 0; map--) {
             d.map(map, map % 2 == 1);
             d.finish(300);
             for (int i = 0; i < addresses.length; i++) {
-                int read = d.read(i % 4, addresses[i]);
-                d.finish(300);
+                int read = Check.finishedRead(d, i % 4, addresses[i]);
                 Check.same("word " + i + " by the map " + map, d.valueOf(read), 1000 + i);
             }
         }
@@ -238,24 +233,20 @@ final class EdgesOfPlacesTest {
         Dramwright d = new Dramwright();
         d.policy('s', 1);
         int address = Check.at(0, 0, 4, 0);
-        d.write(0, address, 44, 15, false);
-        d.finish(300);
+        Check.finishedWrite(d, 0, address, 44);
         d.stick(0, 0, 4, 1, 0, true);
         for (int i = 0; i < 3; i++) {
-            d.read(0, address + 1);
-            d.finish(300);
+            Check.finishedRead(d, 0, address + 1);
         }
         Check.same("replaced", d.place(address, 'r'), 32);
         d.map(1, false);
         d.finish(300);
-        int read = d.read(0, address);
-        d.finish(300);
+        int read = Check.finishedRead(d, 0, address);
         Check.same("moved out of the spare row", d.valueOf(read), 44);
         d.map(0, false);
         d.finish(300);
         Check.same("the same spare row again", d.place(address, 'r'), 32);
-        read = d.read(0, address);
-        d.finish(300);
+        read = Check.finishedRead(d, 0, address);
         Check.same("and back into it", d.valueOf(read), 44);
     }
 }

@@ -3,17 +3,13 @@ final class EdgesOfRefreshTest {
     private EdgesOfRefreshTest() {
     }
 
-    private static void passTill(Dramwright d, int cycle) {
-        Check.pass(d, (int) (cycle - d.cycle()));
-    }
-
     /** Brings a rank to owe as much as told, above 0, with an interval of 50 and by banks. */
     private static Dramwright owing(int owed) {
         Dramwright d = new Dramwright();
         d.policy('i', 50);
         d.policy('g', 1);
         int multiples = (owed + 3) / 4;
-        passTill(d, 50 * multiples + 1);
+        Check.passTill(d, 50 * multiples + 1);
         d.policy('i', 2000);
         d.policy('a', 1);
         while (d.owed(0) > owed) {
@@ -31,7 +27,7 @@ final class EdgesOfRefreshTest {
             d.go(1);
             Check.same("not the cycle 0", d.owed(0) + d.owed(1), 0);
             for (int times = 1; times <= 3; times++) {
-                passTill(d, interval * times);
+                Check.passTill(d, interval * times);
                 Check.same("not the cycle before", d.owed(0) * 100 + d.owed(1), 404 * (times - 1));
                 d.go(1);
                 Check.same("the multiple", d.owed(0) * 100 + d.owed(1), 404 * times);
@@ -41,7 +37,7 @@ final class EdgesOfRefreshTest {
 
     static void theIntervalIs200AtFirst() {
         Dramwright d = new Dramwright();
-        passTill(d, 200);
+        Check.passTill(d, 200);
         Check.same("the cycles 0 to 199", d.owed(0), 0);
         d.go(1);
         Check.same("the cycle 200", d.owed(0), 4);
@@ -62,11 +58,18 @@ final class EdgesOfRefreshTest {
         Check.same("g", g.owed(0), -1);
     }
 
-    static void theTurnGoesFromTheBank0ToTheNextOneWithEachG() {
+    /** A new object that refreshes a bank in each cycle as far as it may be drawn ahead. */
+    private static Dramwright drawingAheadByBanks() {
         Dramwright d = new Dramwright();
         d.policy('a', 1);
         d.policy('g', 1);
         d.distance('P', 1);
+        d.policy('i', 2000);
+        return d;
+    }
+
+    static void theTurnGoesFromTheBank0ToTheNextOneWithEachG() {
+        Dramwright d = drawingAheadByBanks();
         d.go(64);
         Check.same("32 of each rank", d.owed(0) + d.owed(1), -64);
         for (int i = 0; i < 32; i++) {
@@ -93,13 +96,13 @@ final class EdgesOfRefreshTest {
         Dramwright d = new Dramwright();
         d.policy('i', 50);
         d.policy('g', 1);
-        passTill(d, 400);
+        Check.passTill(d, 400);
         Check.same("28 are not", d.commands() * 100 + d.owed(0), 28);
         d.go(1);
         Check.same("32 are, 31 are left", d.commands() * 100 + d.owed(0), 131);
-        passTill(d, 450);
+        Check.passTill(d, 450);
         Check.same("31 are not", d.commands() * 100 + d.owed(0), 231);
-        passTill(d, 500);
+        Check.passTill(d, 500);
         Check.same("35, 34, 33 and 32 are, of each rank", d.commands() * 100 + d.owed(0), 1031);
     }
 
@@ -107,7 +110,7 @@ final class EdgesOfRefreshTest {
         Dramwright d = new Dramwright();
         d.policy('i', 50);
         d.policy('g', 1);
-        passTill(d, 402);
+        Check.passTill(d, 402);
         Check.same("both owe 31", d.owed(0) * 100 + d.owed(1), 3131);
         d.read(0, Check.at(0, 3, 0, 0));
         d.go(1);
@@ -119,10 +122,10 @@ final class EdgesOfRefreshTest {
         d.policy('i', 50);
         d.distance('C', 40);
         d.rows('c');
-        passTill(d, 380);
+        Check.passTill(d, 380);
         d.read(0, Check.at(0, 1, 3, 0));
         d.read(0, Check.at(0, 2, 3, 0));
-        passTill(d, 399);
+        Check.passTill(d, 399);
         int before = d.commands();
         d.read(0, Check.at(0, 2, 3, 1));
         d.go(1);
@@ -138,11 +141,7 @@ final class EdgesOfRefreshTest {
     }
 
     static void refreshIsDrawnAheadToMinus32() {
-        Dramwright d = new Dramwright();
-        d.policy('a', 1);
-        d.policy('g', 1);
-        d.distance('P', 1);
-        d.policy('i', 2000);
+        Dramwright d = drawingAheadByBanks();
         d.go(31);
         Check.same("-31 is more than -32", d.owed(0), -31);
         d.go(1);
@@ -152,11 +151,7 @@ final class EdgesOfRefreshTest {
     }
 
     static void anFIsDrawnAheadFromMinus31() {
-        Dramwright d = new Dramwright();
-        d.policy('a', 1);
-        d.policy('g', 1);
-        d.distance('P', 1);
-        d.policy('i', 2000);
+        Dramwright d = drawingAheadByBanks();
         d.go(31);
         d.policy('g', 0);
         d.go(50);
@@ -181,7 +176,7 @@ final class EdgesOfRefreshTest {
 
     static void refreshIsNotDrawnAheadUnlessTold() {
         Dramwright d = new Dramwright();
-        passTill(d, 250);
+        Check.passTill(d, 250);
         Check.same("4 are owed, none was drawn ahead", d.owed(0) * 10 + d.commands(), 40);
         d.policy('a', 1);
         d.go(1);
@@ -192,8 +187,7 @@ final class EdgesOfRefreshTest {
     private static void open(Dramwright d, int... rows) {
         d.rows('c');
         for (int row : rows) {
-            d.read(0, Check.at(0, 0, row, 0));
-            d.finish(150);
+            Check.finishedRead(d, 0, Check.at(0, 0, row, 0));
             d.go(20);
         }
     }
@@ -318,6 +312,21 @@ final class EdgesOfRefreshTest {
         }
     }
 
+    static void aNeighbourThatIsTheFirstToBeGuardedIsNotToldAgain() {
+        Dramwright d = new Dramwright();
+        d.policy('h', 2);
+        open(d, 0, 1, 2);
+        d.read(0, Check.at(0, 0, 1, 0));
+        int[][] due = {{1, 2}, {0, 2}, {2, 2}, {1, 1}, {3, 0}};
+        for (int[] one : due) {
+            for (int i = 0; i < 30 && d.openRow(0, 0) != one[0]; i++) {
+                d.go(1);
+            }
+            Check.same("this one is open", d.openRow(0, 0), one[0]);
+            Check.same("1 tells 0 and 2; 0 tells 1; 2 tells 3 alone", d.guarded(), one[1]);
+        }
+    }
+
     static void countsBeginAt0WithAnFOfTheRankOrAGOfTheBank() {
         Dramwright d = replaced(1);
         d.policy('h', 200);
@@ -335,9 +344,9 @@ final class EdgesOfRefreshTest {
         Dramwright d = new Dramwright();
         d.policy('h', 2);
         d.policy('i', 50);
-        passTill(d, 340);
+        Check.passTill(d, 340);
         open(d, 9);
-        passTill(d, 398);
+        Check.passTill(d, 398);
         int before = d.commands();
         d.read(0, Check.at(0, 0, 9, 0));
         d.go(1);
@@ -353,8 +362,7 @@ final class EdgesOfRefreshTest {
         d.rows('c');
         int[] rows = {9, 20};
         for (int row : rows) {
-            d.read(0, Check.at(0, 2, row, 0));
-            d.finish(100);
+            Check.finishedRead(d, 0, Check.at(0, 2, row, 0));
             d.go(20);
         }
         d.read(0, Check.at(0, 2, 20, 0));
@@ -370,8 +378,7 @@ final class EdgesOfRefreshTest {
         d.policy('h', 2);
         d.policy('b', 10);
         d.rows('c');
-        d.read(0, Check.at(0, 0, 9, 0));
-        d.finish(100);
+        Check.finishedRead(d, 0, Check.at(0, 0, 9, 0));
         d.go(20);
         d.read(0, Check.at(0, 0, 9, 0));
         d.go(1);
@@ -388,7 +395,7 @@ final class EdgesOfRefreshTest {
             Dramwright d = new Dramwright();
             d.policy('r', rest);
             d.policy('i', 2000);
-            passTill(d, rest);
+            Check.passTill(d, rest);
             Check.same("none in the cycles till " + (rest - 1), d.commands(), 0);
             d.go(1);
             Check.same("from the cycle 0 on at first", Check.trace(d), "d0@" + rest);
@@ -398,7 +405,7 @@ final class EdgesOfRefreshTest {
     static void aRankDoesNotRestAt0() {
         Dramwright d = new Dramwright();
         d.policy('i', 2000);
-        passTill(d, 1500);
+        Check.passTill(d, 1500);
         Check.same("no d", d.commands(), 0);
         Check.isFalse("no rest", d.rests(0) || d.rests(1));
     }
@@ -411,7 +418,7 @@ final class EdgesOfRefreshTest {
             d.read(0, 0);
             d.go(10);
             Check.same("p at 9", d.command(d.commands() - 1, 'c') == 9 || d.command(d.commands() - 2, 'c') == 9, true);
-            passTill(d, 9 + rest);
+            Check.passTill(d, 9 + rest);
             Check.isFalse("not yet", d.rests(0));
             d.go(1);
             Check.isTrue("as many cycles behind the p", d.rests(0));
@@ -456,14 +463,14 @@ final class EdgesOfRefreshTest {
         d.go(1);
         d.policy('a', 0);
         d.policy('r', 11);
-        passTill(d, 200);
+        Check.passTill(d, 200);
         Check.same("ahead by 1, the other one is not", d.owed(0) * 10 + d.owed(1), -10);
         Check.isTrue("both rest", d.rests(0) && d.rests(1));
         d.go(30);
         Check.same("3 let it rest, 4 do not", d.owed(0) * 10 + d.owed(1), 34);
         Check.isTrue("3", d.rests(0));
         Check.isFalse("4", d.rests(1));
-        passTill(d, 400);
+        Check.passTill(d, 400);
         d.go(1);
         Check.isFalse("7", d.rests(0));
     }
@@ -510,14 +517,12 @@ final class EdgesOfRefreshTest {
         int[] due = {3, 2, 1};
         for (int i = 0; i < 3; i++) {
             Check.same("shut till now", d.openRow(0, 0), -1);
-            d.read(0, 0);
-            d.finish(100);
+            Check.finishedRead(d, 0, 0);
             d.go(20);
             Check.same("learned", d.learned(0, 0), due[i]);
         }
         Check.same("1 leaves it open", d.openRow(0, 0), 0);
-        d.read(0, 128);
-        d.finish(100);
+        Check.finishedRead(d, 0, 128);
         d.go(20);
         Check.same("another row: 2", d.learned(0, 0), 2);
         Check.same("told to be shut", d.openRow(0, 0), -1);

@@ -2,8 +2,6 @@ import java.util.NoSuchElementException;
 
 /** The boundary cases of the promises 11 to 22: each one on both sides, and each refused call in vain. */
 final class EdgesOfRequestsTest {
-    private static final int[] FAR = {Integer.MIN_VALUE, -1000, 1000000, Integer.MAX_VALUE};
-
     private EdgesOfRequestsTest() {
     }
 
@@ -41,7 +39,7 @@ final class EdgesOfRequestsTest {
         }
         Twins.outOfBounds("-1", Twins::busy, e -> e.read(-1, 0));
         Twins.outOfBounds("4, the master of patrols", Twins::busy, e -> e.read(4, 0));
-        for (int far : FAR) {
+        for (int far : Check.FAR) {
             Check.outOfBounds("far " + far, () -> d.read(far, 0));
         }
         Check.same("no number was lost", d.read(0, 9), 4);
@@ -53,7 +51,7 @@ final class EdgesOfRequestsTest {
         d.read(0, 4095);
         Twins.outOfBounds("-1", Twins::busy, e -> e.read(0, -1));
         Twins.outOfBounds("4096", Twins::busy, e -> e.read(0, 4096));
-        for (int far : FAR) {
+        for (int far : Check.FAR) {
             Check.outOfBounds("far " + far, () -> d.read(0, far));
         }
         d.finish(300);
@@ -153,7 +151,7 @@ final class EdgesOfRequestsTest {
         }
         Twins.outOfBounds("-1", Twins::busy, e -> e.write(-1, 0, 1, 15, false));
         Twins.outOfBounds("4, the master of patrols", Twins::busy, e -> e.write(4, 0, 1, 15, false));
-        for (int far : FAR) {
+        for (int far : Check.FAR) {
             Check.outOfBounds("far " + far, () -> d.write(far, 0, 1, 15, false));
         }
     }
@@ -161,15 +159,13 @@ final class EdgesOfRequestsTest {
     static void writeTakesTheAddresses0To4095() {
         Dramwright d = new Dramwright();
         d.write(0, 0, 11, 15, false);
-        d.write(0, 4095, 22, 15, false);
-        d.finish(300);
+        Check.finishedWrite(d, 0, 4095, 22);
         int first = d.read(0, 0);
-        int last = d.read(0, 4095);
-        d.finish(300);
+        int last = Check.finishedRead(d, 0, 4095);
         Check.same("both", d.valueOf(first) * 100 + d.valueOf(last), 1122);
         Twins.outOfBounds("-1", Twins::busy, e -> e.write(0, -1, 1, 15, false));
         Twins.outOfBounds("4096", Twins::busy, e -> e.write(0, 4096, 1, 15, false));
-        for (int far : FAR) {
+        for (int far : Check.FAR) {
             Check.outOfBounds("far " + far, () -> d.write(0, far, 1, 15, false));
         }
     }
@@ -177,12 +173,10 @@ final class EdgesOfRequestsTest {
     static void writeTakesMasks1To15() {
         for (int mask = 1; mask <= 15; mask++) {
             Dramwright d = new Dramwright();
-            d.write(0, 7, 0x11223344, 15, false);
-            d.finish(100);
+            Check.finishedWrite(d, 0, 7, 0x11223344);
             Check.same("taken", d.write(0, 7, 0xAABBCCDD, mask, false), 1);
             d.finish(100);
-            int read = d.read(0, 7);
-            d.finish(100);
+            int read = Check.finishedRead(d, 0, 7);
             int due = (mask & 1) == 1 ? 0xDD : 0x44;
             due |= ((mask & 2) == 2 ? 0xCC : 0x33) << 8;
             due |= ((mask & 4) == 4 ? 0xBB : 0x22) << 16;
@@ -192,7 +186,7 @@ final class EdgesOfRequestsTest {
         Twins.illegal("0", Twins::busy, e -> e.write(0, 0, 1, 0, false));
         Twins.illegal("16", Twins::busy, e -> e.write(0, 0, 1, 16, false));
         Twins.illegal("-1", Twins::busy, e -> e.write(0, 0, 1, -1, true));
-        for (int far : FAR) {
+        for (int far : Check.FAR) {
             Check.illegal("far " + far, () -> new Dramwright().write(0, 0, 1, far, false));
         }
     }
@@ -203,10 +197,8 @@ final class EdgesOfRequestsTest {
             for (char code : "nsc".toCharArray()) {
                 Dramwright d = new Dramwright();
                 d.code(code);
-                d.write(0, 7, value, 15, false);
-                d.finish(100);
-                int read = d.read(0, 7);
-                d.finish(100);
+                Check.finishedWrite(d, 0, 7, value);
+                int read = Check.finishedRead(d, 0, 7);
                 Check.same("value by " + code, d.valueOf(read), value);
                 Check.same("flag by " + code, d.flagOf(read), 'r');
             }
@@ -254,11 +246,9 @@ final class EdgesOfRequestsTest {
     static void aRefusedWriteBringsNoPoison() {
         Twins.badState("nothing is said to be changed", EdgesOfRequestsTest::withEightWrites, e -> e.write(0, 0, 9, 15, true));
         Dramwright d = new Dramwright();
-        d.write(0, 0, 3, 15, false);
-        d.finish(50);
+        Check.finishedWrite(d, 0, 0, 3);
         Check.illegal("refused", () -> d.write(0, 0, 9, 0, true));
-        int read = d.read(0, 0);
-        d.finish(50);
+        int read = Check.finishedRead(d, 0, 0);
         Check.same("value", d.valueOf(read), 3);
         Check.same("flag", d.flagOf(read), 'r');
         Check.isTrue("the plain word is the one before", d.isConsistent());
@@ -273,7 +263,7 @@ final class EdgesOfRequestsTest {
         Twins.illegal("0", Twins::busy, e -> e.go(0));
         Twins.illegal("151", Twins::busy, e -> e.go(151));
         Twins.illegal("-1", Twins::busy, e -> e.go(-1));
-        for (int far : FAR) {
+        for (int far : Check.FAR) {
             Check.illegal("far " + far, () -> d.go(far));
         }
         Check.same("no cycle passed", d.cycle(), 151L);
@@ -301,7 +291,7 @@ final class EdgesOfRequestsTest {
         Twins.illegal("0", Twins::busy, e -> e.finish(0));
         Twins.illegal("301", Twins::busy, e -> e.finish(301));
         Twins.illegal("-1", Twins::busy, e -> e.finish(-1));
-        for (int far : FAR) {
+        for (int far : Check.FAR) {
             Check.illegal("far " + far, () -> d.finish(far));
         }
         Check.same("no cycle passed", d.cycle(), 301L);
@@ -420,13 +410,11 @@ final class EdgesOfRequestsTest {
         for (int data : new int[] {1, 2, 99}) {
             Dramwright d = new Dramwright();
             d.distance('N', data);
-            d.read(0, 0);
-            d.finish(300);
+            Check.finishedRead(d, 0, 0);
             Check.same("N " + data, d.doneAt(0), 8L + data);
             Dramwright w = new Dramwright();
             w.distance('N', data);
-            w.write(0, 0, 1, 15, false);
-            w.finish(300);
+            Check.finishedWrite(w, 0, 0, 1);
             Check.same("N " + data, w.doneAt(0), 7L + data);
         }
     }

@@ -1,7 +1,5 @@
 /** The boundary cases of the promises 1 to 10: each one on both sides, and each refused call in vain. */
 final class EdgesOfSettingsTest {
-    private static final int[] FAR = {Integer.MIN_VALUE, -1000, 1000000, Integer.MAX_VALUE};
-
     private EdgesOfSettingsTest() {
     }
 
@@ -41,7 +39,7 @@ final class EdgesOfSettingsTest {
             Check.same(which + " 99 is taken", d.distance(which, 2), 99);
             Check.illegal(which + " 0", () -> d.distance(letter, 0));
             Check.illegal(which + " 100", () -> d.distance(letter, 100));
-            for (int far : FAR) {
+            for (int far : Check.FAR) {
                 Check.illegal(which + " " + far, () -> d.distance(letter, far));
             }
             Check.same(which + " stayed", d.distance(which, 5), 2);
@@ -58,7 +56,7 @@ final class EdgesOfSettingsTest {
         Twins.illegal("-1", Twins::fresh, e -> e.distance('Q', -1));
         Twins.illegal("10", Twins::fresh, e -> e.distance('Q', 10));
         Twins.illegal("99", Twins::fresh, e -> e.distance('Q', 99));
-        for (int far : FAR) {
+        for (int far : Check.FAR) {
             Check.illegal("far " + far, () -> d.distance('Q', far));
         }
     }
@@ -98,7 +96,7 @@ final class EdgesOfSettingsTest {
         Twins.illegal(which + " above", Twins::fresh, e -> e.policy(which, most + 1));
         Twins.illegal(which + " below, in the midst of things", Twins::busy, e -> e.policy(which, least - 1));
         Twins.illegal(which + " above, in the midst of things", Twins::busy, e -> e.policy(which, most + 1));
-        for (int far : FAR) {
+        for (int far : Check.FAR) {
             Check.illegal(which + " " + far, () -> d.policy(which, far));
         }
         Check.same(which + " stayed", d.policy(which, first), first);
@@ -157,7 +155,7 @@ final class EdgesOfSettingsTest {
         }
         Twins.outOfBounds("-1", Twins::busy, d -> d.master(-1, 0, 1));
         Twins.outOfBounds("4, the master of patrols", Twins::busy, d -> d.master(4, 0, 1));
-        for (int far : FAR) {
+        for (int far : Check.FAR) {
             Check.outOfBounds("far " + far, () -> new Dramwright().master(far, 0, 1));
         }
     }
@@ -169,7 +167,7 @@ final class EdgesOfSettingsTest {
         Check.same("3 is taken", d.master(2, 1, 4), 34);
         Twins.illegal("-1", Twins::busy, e -> e.master(2, -1, 4));
         Twins.illegal("4", Twins::busy, e -> e.master(2, 4, 4));
-        for (int far : FAR) {
+        for (int far : Check.FAR) {
             Check.illegal("far " + far, () -> d.master(2, far, 4));
         }
         Check.same("it stayed", d.master(2, 0, 1), 14);
@@ -182,7 +180,7 @@ final class EdgesOfSettingsTest {
         Check.same("9 is taken", d.master(3, 2, 5), 29);
         Twins.illegal("0", Twins::busy, e -> e.master(3, 2, 0));
         Twins.illegal("10", Twins::busy, e -> e.master(3, 2, 10));
-        for (int far : FAR) {
+        for (int far : Check.FAR) {
             Check.illegal("far " + far, () -> d.master(3, 2, far));
         }
         Check.same("it stayed", d.master(3, 0, 1), 25);
@@ -200,7 +198,7 @@ final class EdgesOfSettingsTest {
         }
         Twins.illegal("-1", Twins::busy, d -> d.map(-1, false));
         Twins.illegal("4", Twins::busy, d -> d.map(4, true));
-        for (int far : FAR) {
+        for (int far : Check.FAR) {
             Check.illegal("far " + far, () -> new Dramwright().map(far, false));
         }
     }
@@ -252,7 +250,7 @@ final class EdgesOfSettingsTest {
         Check.same("the last one", d.place(4095, 'r') * 100 + d.place(4095, 'c'), 3115);
         Twins.outOfBounds("-1", Twins::busy, e -> e.place(-1, 'k'));
         Twins.outOfBounds("4096", Twins::busy, e -> e.place(4096, 'k'));
-        for (int far : FAR) {
+        for (int far : Check.FAR) {
             Check.outOfBounds("far " + far, () -> d.place(far, 'r'));
         }
     }
@@ -273,12 +271,10 @@ final class EdgesOfSettingsTest {
         d.stick(1, 3, 31, 0, 0, true);
         int address = Check.at(1, 3, 31, 0);
         for (int i = 0; i < 2; i++) {
-            d.read(0, address);
-            d.finish(300);
+            Check.finishedRead(d, 0, address);
         }
         Check.same("two were mended", d.place(address, 'r'), 31);
-        d.read(0, address);
-        d.finish(300);
+        Check.finishedRead(d, 0, address);
         Check.same("three were", d.place(address, 'r'), 32);
         for (int column = 0; column < 16; column++) {
             Check.same("the whole row", d.place(address + column, 'r'), 32);
@@ -370,16 +366,14 @@ final class EdgesOfSettingsTest {
     static void slowIsRefusedWhileABankIsOpen() {
         for (int bankAt = 0; bankAt < 8; bankAt++) {
             Dramwright d = new Dramwright();
-            d.read(0, Check.at(bankAt / 4, bankAt % 4, 1, 0));
-            d.finish(50);
+            Check.finishedRead(d, 0, Check.at(bankAt / 4, bankAt % 4, 1, 0));
             Check.badState("the bank " + bankAt + " is open", () -> d.slow(true));
             d.rows('c');
             d.go(1);
             Check.isFalse("it was shut in this cycle", d.slow(true));
         }
         Twins.badState("a bank is open", d -> {
-            d.read(0, 0);
-            d.finish(50);
+            Check.finishedRead(d, 0, 0);
         }, d -> d.slow(true));
     }
 
@@ -402,7 +396,7 @@ final class EdgesOfSettingsTest {
         Check.same("99 is taken", d.warmth(7), 99);
         Twins.illegal("-1", Twins::busy, e -> e.warmth(-1));
         Twins.illegal("100", Twins::busy, e -> e.warmth(100));
-        for (int far : FAR) {
+        for (int far : Check.FAR) {
             Check.illegal("far " + far, () -> d.warmth(far));
         }
         Check.same("it stayed", d.warmth(20), 7);

@@ -3,27 +3,14 @@ final class FaultsTest {
     private FaultsTest() {
     }
 
-    private static char flagOfRead(Dramwright d, int address) {
-        int request = d.read(0, address);
-        d.finish(300);
-        return d.flagOf(request);
-    }
-
-    private static int valueOfRead(Dramwright d, int address) {
-        int request = d.read(0, address);
-        d.finish(300);
-        return d.valueOf(request);
-    }
-
     static void promise34Stick() {
         Dramwright d = new Dramwright();
         d.code('n');
         Check.same("one", d.stick(0, 0, 0, 0, 4, true), 1);
         Check.same("two", d.stick(0, 0, 0, 0, 5, false), 2);
-        Check.same("reads as told", valueOfRead(d, 0), 16);
-        d.write(0, 0, 0x20, 15, false);
-        d.finish(100);
-        Check.same("whatever is written", valueOfRead(d, 0), 16);
+        Check.same("reads as told", Check.wordAt(d, 0), 16);
+        Check.finishedWrite(d, 0, 0, 0x20);
+        Check.same("whatever is written", Check.wordAt(d, 0), 16);
         Check.same("what is stored is another thing", d.flip(0, 0, 0, 0, 5), 0);
         Check.illegal("it sticks", () -> d.stick(0, 0, 0, 0, 4, false));
         Check.illegal("bit 40", () -> d.stick(0, 0, 0, 0, 40, true));
@@ -44,20 +31,19 @@ final class FaultsTest {
         Dramwright d = new Dramwright();
         d.stick(0, 0, 0, 0, 32, true);
         d.stick(0, 0, 0, 1, 39, true);
-        Check.same("a code bit", flagOfRead(d, 0), 'm');
-        Check.same("the word is as it was", valueOfRead(d, 0), 0);
-        Check.same("the code s has 7 bits", flagOfRead(d, 1), 'r');
+        Check.same("a code bit", Check.flagAt(d, 0), 'm');
+        Check.same("the word is as it was", Check.wordAt(d, 0), 0);
+        Check.same("the code s has 7 bits", Check.flagAt(d, 1), 'r');
         d.code('c');
-        Check.same("the code c has 8", flagOfRead(d, 1), 'm');
+        Check.same("the code c has 8", Check.flagAt(d, 1), 'm');
     }
 
     static void promise34BitsStickAlone() {
         Dramwright d = new Dramwright();
         d.code('n');
-        d.write(0, 0, -1, 15, false);
-        d.finish(100);
+        Check.finishedWrite(d, 0, 0, -1);
         d.stick(0, 0, 0, 0, 5, false);
-        Check.same("none beside it", valueOfRead(d, 0), ~32);
+        Check.same("none beside it", Check.wordAt(d, 0), ~32);
         for (int bit = 32; bit < 39; bit++) {
             for (int stored = 0; stored < 2; stored++) {
                 Dramwright s = new Dramwright();
@@ -67,21 +53,20 @@ final class FaultsTest {
                 s.stick(0, 0, 0, 0, bit, stored == 0);
                 int code = stored == 0 ? 1 << bit - 32 : 127 & ~(1 << bit - 32);
                 char due = Integer.bitCount(code) % 2 == 0 || (code & 63) > 38 ? 'l' : 'm';
-                Check.same("code " + code, flagOfRead(s, 0), due);
+                Check.same("code " + code, Check.flagAt(s, 0), due);
             }
         }
     }
 
     static void promise34CodeBitsStickAtZero() {
         Dramwright d = new Dramwright();
-        d.write(0, 0, 1, 15, false);
-        d.finish(100);
+        Check.finishedWrite(d, 0, 0, 1);
         d.stick(0, 0, 0, 0, 32, false);
-        Check.same("one code bit of 0, 1 and 6", flagOfRead(d, 0), 'm');
-        Check.same("no data bit", valueOfRead(d, 0), 1);
+        Check.same("one code bit of 0, 1 and 6", Check.flagAt(d, 0), 'm');
+        Check.same("no data bit", Check.wordAt(d, 0), 1);
         d.stick(0, 0, 0, 0, 33, false);
-        Check.same("two of them", flagOfRead(d, 0), 'l');
-        Check.same("the data are as they are", valueOfRead(d, 0), 1);
+        Check.same("two of them", Check.flagAt(d, 0), 'l');
+        Check.same("the data are as they are", Check.wordAt(d, 0), 1);
         Check.same("the first one is stored", d.flip(0, 0, 0, 0, 32), 0);
         Check.same("the second one is stored", d.flip(0, 0, 0, 0, 33), 0);
     }
@@ -90,14 +75,13 @@ final class FaultsTest {
         Dramwright d = new Dramwright();
         d.code('n');
         d.rows('c');
-        d.write(0, 0, 3, 15, false);
-        d.finish(100);
+        Check.finishedWrite(d, 0, 0, 3);
         d.go(30);
         int restored = d.command(0, 'c');
         Check.same("one", d.fade(0, 0, 0, 0, 0, 100), 1);
         Check.same("two", d.fade(0, 0, 0, 0, 1, 99), 2);
         d.go((int) (restored + 100 - d.cycle()));
-        Check.same("100 cycles behind the last time", valueOfRead(d, 0), 1);
+        Check.same("100 cycles behind the last time", Check.wordAt(d, 0), 1);
         Check.same("opened then", d.command(d.commands() - 3, 'c'), restored + 100);
         Check.illegal("it fades", () -> d.fade(0, 0, 0, 0, 0, 5));
         Check.illegal("bit 40", () -> d.fade(0, 0, 0, 0, 40, 5));
@@ -120,17 +104,15 @@ final class FaultsTest {
         d.code('n');
         int address = Check.at(1, 2, 3, 4);
         d.write(0, address, -1, 15, false);
-        d.write(0, address + 1, -1, 15, false);
-        d.finish(100);
+        Check.finishedWrite(d, 0, address + 1, -1);
         d.fade(1, 2, 3, 4, 31, 1);
         d.fade(1, 2, 3, 4, 32, 1);
         d.fade(1, 2, 3, 5, 31, 9999);
         d.flip(1, 2, 3, 4, 32);
         Check.illegal("it fades", () -> d.fade(1, 2, 3, 5, 31, 1));
-        d.read(0, Check.at(1, 2, 9, 4));
-        d.finish(100);
-        Check.same("its bit", valueOfRead(d, address), 0x7FFFFFFF);
-        Check.same("not the other word's", valueOfRead(d, address + 1), -1);
+        Check.finishedRead(d, 0, Check.at(1, 2, 9, 4));
+        Check.same("its bit", Check.wordAt(d, address), 0x7FFFFFFF);
+        Check.same("not the other word's", Check.wordAt(d, address + 1), -1);
         Check.same("a code bit, too", d.flip(1, 2, 3, 4, 32), 1);
     }
 
@@ -150,10 +132,10 @@ final class FaultsTest {
         Check.pass(d, 120);
         d.read(0, lines[0]);
         Check.pass(d, 120);
-        Check.same("opened often enough", valueOfRead(d, lines[0]), 3);
-        Check.same("a neighbour", valueOfRead(d, lines[1]), 2);
-        Check.same("another bank", valueOfRead(d, lines[2]), 2);
-        Check.same("another rank", valueOfRead(d, lines[3]), 2);
+        Check.same("opened often enough", Check.wordAt(d, lines[0]), 3);
+        Check.same("a neighbour", Check.wordAt(d, lines[1]), 2);
+        Check.same("another bank", Check.wordAt(d, lines[2]), 2);
+        Check.same("another rank", Check.wordAt(d, lines[3]), 2);
     }
 
     static void promise35OtherRowsAreNotRestored() {
@@ -167,8 +149,7 @@ final class FaultsTest {
         d.flip(0, 1, 5, 0, 1);
         d.fade(0, 1, 5, 0, 1, 5);
         Check.pass(d, 100);
-        d.read(0, Check.at(0, 1, 5, 3));
-        d.finish(100);
+        Check.finishedRead(d, 0, Check.at(0, 1, 5, 3));
         Check.same("the row that was opened", d.flip(0, 1, 5, 0, 1), 1);
         for (int[] line : lines) {
             Check.same("another one", d.flip(line[0], line[1], line[2], 0, 1), 0);
@@ -244,16 +225,15 @@ final class FaultsTest {
             d.rows('c');
             d.warmth(warmth);
             d.eye(0, 0, 16);
-            d.write(0, 0, 2, 15, false);
-            d.finish(100);
+            Check.finishedWrite(d, 0, 0, 2);
             int restored = d.command(0, 'c');
             d.fade(0, 0, 0, 0, 1, 100);
             d.go((int) (restored + 50 - d.cycle()));
-            Check.same("twice 50 is not more than 100", valueOfRead(d, 0), 2);
+            Check.same("twice 50 is not more than 100", Check.wordAt(d, 0), 2);
             d.finish(300);
             d.go(1);
             d.go((int) (restored + 50 + 51 - d.cycle()));
-            Check.same("at " + warmth, valueOfRead(d, 0), warmth < 50 ? 2 : 0);
+            Check.same("at " + warmth, Check.wordAt(d, 0), warmth < 50 ? 2 : 0);
         }
     }
 
@@ -263,28 +243,27 @@ final class FaultsTest {
         d.rows('c');
         d.policy('i', 50);
         d.policy('a', 1);
-        d.write(0, Check.at(0, 0, 6, 0), 1, 15, false);
-        d.finish(100);
+        Check.finishedWrite(d, 0, Check.at(0, 0, 6, 0), 1);
         d.fade(0, 0, 6, 0, 0, 150);
         Check.pass(d, 600);
-        Check.same("refreshed often enough", valueOfRead(d, Check.at(0, 0, 6, 0)), 1);
+        Check.same("refreshed often enough", Check.wordAt(d, Check.at(0, 0, 6, 0)), 1);
         d.policy('g', 1);
         Check.pass(d, 600);
-        Check.same("by banks, too", valueOfRead(d, Check.at(0, 0, 6, 0)), 1);
+        Check.same("by banks, too", Check.wordAt(d, Check.at(0, 0, 6, 0)), 1);
         d.policy('a', 0);
         d.policy('i', 2000);
         Check.pass(d, 600);
-        Check.same("no longer", valueOfRead(d, Check.at(0, 0, 6, 0)), 0);
+        Check.same("no longer", Check.wordAt(d, Check.at(0, 0, 6, 0)), 0);
     }
 
     static void promise36Flip() {
         Dramwright d = new Dramwright();
         Check.same("1", d.flip(0, 1, 2, 3, 31), 1);
-        Check.same("mended", flagOfRead(d, Check.at(0, 1, 2, 3)), 'm');
+        Check.same("mended", Check.flagAt(d, Check.at(0, 1, 2, 3)), 'm');
         Check.same("0", d.flip(0, 1, 2, 3, 31), 0);
-        Check.same("right", flagOfRead(d, Check.at(0, 1, 2, 3)), 'r');
+        Check.same("right", Check.flagAt(d, Check.at(0, 1, 2, 3)), 'r');
         Check.same("a code bit", d.flip(0, 1, 2, 3, 38), 1);
-        Check.same("mended", flagOfRead(d, Check.at(0, 1, 2, 3)), 'm');
+        Check.same("mended", Check.flagAt(d, Check.at(0, 1, 2, 3)), 'm');
         Check.same("the last one", d.flip(0, 1, 2, 3, 39), 1);
         Check.illegal("40", () -> d.flip(0, 0, 0, 0, 40));
         Check.illegal("-1", () -> d.flip(0, 0, 0, 0, -1));
@@ -298,18 +277,18 @@ final class FaultsTest {
         Dramwright d = new Dramwright();
         d.code('n');
         Check.same("the delay", d.eye(0, 0, 7), 8);
-        Check.same("2 to 8: within", valueOfRead(d, 0), 0);
+        Check.same("2 to 8: within", Check.wordAt(d, 0), 0);
         d.eye(0, 0, 6);
-        Check.same("2 to 7: outside", valueOfRead(d, 0), 1);
+        Check.same("2 to 7: outside", Check.wordAt(d, 0), 1);
         d.eye(0, 6, 1);
-        Check.same("8 to 8: within", valueOfRead(d, 0), 0);
+        Check.same("8 to 8: within", Check.wordAt(d, 0), 0);
         d.eye(0, 7, 16);
-        Check.same("9 to 24: outside", valueOfRead(d, 0), 1);
-        Check.same("the other rank has its own", valueOfRead(d, Check.at(1, 0, 0, 0)), 0);
+        Check.same("9 to 24: outside", Check.wordAt(d, 0), 1);
+        Check.same("the other rank has its own", Check.wordAt(d, Check.at(1, 0, 0, 0)), 0);
         Dramwright s = new Dramwright();
         s.eye(0, 7, 16);
-        Check.same("ahead of the code's look", flagOfRead(s, 1), 'm');
-        Check.same("which mends it", valueOfRead(s, 1), 0);
+        Check.same("ahead of the code's look", Check.flagAt(s, 1), 'm');
+        Check.same("which mends it", Check.wordAt(s, 1), 0);
         Check.outOfBounds("rank 2", () -> d.eye(2, 0, 0));
         Check.outOfBounds("rank -1", () -> d.eye(-1, 0, 1));
         Check.illegal("begin -1", () -> d.eye(0, -1, 1));
@@ -321,8 +300,7 @@ final class FaultsTest {
     static void promise38Train() {
         Dramwright d = new Dramwright();
         d.read(0, Check.at(1, 0, 0, 0));
-        d.read(0, Check.at(1, 3, 0, 0));
-        d.finish(100);
+        Check.finishedRead(d, 0, Check.at(1, 3, 0, 0));
         Check.isTrue("new", d.train(1));
         Check.isFalse("told already", d.train(1));
         Check.isTrue("the other one", d.train(0));
@@ -359,17 +337,17 @@ final class FaultsTest {
         d.flip(0, 0, 5, 0, 0);
         d.flip(0, 0, 5, 1, 0);
         d.flip(0, 0, 5, 1, 1);
-        flagOfRead(d, Check.at(0, 0, 5, 0));
-        flagOfRead(d, Check.at(0, 0, 5, 0));
+        Check.flagAt(d, Check.at(0, 0, 5, 0));
+        Check.flagAt(d, Check.at(0, 0, 5, 0));
         Check.same("each reading", d.faults(0, 0, 5), 2);
-        flagOfRead(d, Check.at(0, 0, 5, 1));
-        flagOfRead(d, Check.at(0, 0, 5, 2));
+        Check.flagAt(d, Check.at(0, 0, 5, 1));
+        Check.flagAt(d, Check.at(0, 0, 5, 2));
         Check.same("lost ones, too, right ones not", d.faults(0, 0, 5), 3);
         Check.same("spare rows are not used", d.place(Check.at(0, 0, 5, 0), 'r'), 5);
         d.policy('s', 1);
-        flagOfRead(d, Check.at(0, 0, 5, 2));
+        Check.flagAt(d, Check.at(0, 0, 5, 2));
         Check.same("nothing was wrong", d.place(Check.at(0, 0, 5, 0), 'r'), 5);
-        flagOfRead(d, Check.at(0, 0, 5, 0));
+        Check.flagAt(d, Check.at(0, 0, 5, 0));
         Check.same("at least 3", d.place(Check.at(0, 0, 5, 0), 'r'), 32);
         Check.outOfBounds("rank", () -> d.faults(2, 0, 0));
         Check.outOfBounds("bank", () -> d.faults(0, 4, 0));
@@ -401,7 +379,7 @@ final class FaultsTest {
         int used = d.place(Check.at(0, 0, row, 0), 'r');
         d.flip(0, 0, used, 0, 3);
         for (int i = 0; i < 3; i++) {
-            flagOfRead(d, Check.at(0, 0, row, 0));
+            Check.flagAt(d, Check.at(0, 0, row, 0));
         }
         Check.same("faults", d.faults(0, 0, used), 3);
     }
@@ -413,7 +391,7 @@ final class FaultsTest {
                 d.policy('s', 1);
                 d.flip(rank, bank, 0, 0, 3);
                 for (int i = 0; i < 3; i++) {
-                    flagOfRead(d, Check.at(rank, bank, 0, 0));
+                    Check.flagAt(d, Check.at(rank, bank, 0, 0));
                 }
                 for (int other = 0; other < 8; other++) {
                     int due = other == rank * 4 + bank ? 32 : 0;
@@ -428,13 +406,12 @@ final class FaultsTest {
         Dramwright d = new Dramwright();
         d.policy('s', 1);
         d.write(0, Check.at(0, 0, 8, 0), 8, 15, false);
-        d.write(0, Check.at(0, 1, 0, 0), 10, 15, false);
-        d.finish(300);
+        Check.finishedWrite(d, 0, Check.at(0, 1, 0, 0), 10);
         wearOut(d, 7);
         wearOut(d, 7);
         Check.same("both are used", d.spares(0, 0), 0);
-        Check.same("the row behind the one replaced", valueOfRead(d, Check.at(0, 0, 8, 0)), 8);
-        Check.same("the first row of the next bank", valueOfRead(d, Check.at(0, 1, 0, 0)), 10);
+        Check.same("the row behind the one replaced", Check.wordAt(d, Check.at(0, 0, 8, 0)), 8);
+        Check.same("the first row of the next bank", Check.wordAt(d, Check.at(0, 1, 0, 0)), 10);
     }
 
     static void promise41WaitingRequestsMeanTheSpareRow() {
@@ -448,8 +425,7 @@ final class FaultsTest {
         d.read(0, Check.at(0, 0, 4, 4));
         d.read(0, Check.at(0, 0, 9, 3));
         d.read(0, Check.at(0, 1, 4, 3));
-        d.read(0, Check.at(1, 0, 4, 3));
-        d.finish(300);
+        Check.finishedRead(d, 0, Check.at(1, 0, 4, 3));
         Check.same("trace", Check.trace(d), "a00:4@0 a10:4@1 a01:4@3 r00:0@4 r00:1@7 r00:2@10 r01:3@13 p00@14"
             + " r10:3@16 a00:32@18 r00:3@22 r00:4@25 p00@28 a00:9@32 r00:3@36");
     }
@@ -459,21 +435,20 @@ final class FaultsTest {
         d.policy('s', 1);
         d.write(0, 0, 100, 15, false);
         d.write(0, 1, 101, 15, true);
-        d.write(0, 2, 102, 15, false);
-        d.finish(300);
+        Check.finishedWrite(d, 0, 2, 102);
         d.flip(0, 0, 0, 0, 9);
         d.flip(0, 0, 0, 2, 9);
         d.flip(0, 0, 0, 2, 10);
-        int lost = valueOfRead(d, 2);
-        flagOfRead(d, 2);
-        flagOfRead(d, 2);
+        int lost = Check.wordAt(d, 2);
+        Check.flagAt(d, 2);
+        Check.flagAt(d, 2);
         Check.same("replaced", d.place(0, 'r'), 32);
-        Check.same("mended and made anew", flagOfRead(d, 0), 'r');
-        Check.same("mended", valueOfRead(d, 0), 100);
-        Check.same("poison moves", flagOfRead(d, 1), 'p');
-        Check.same("with its word", valueOfRead(d, 1), 101);
-        Check.same("a lost word is poisoned", flagOfRead(d, 2), 'p');
-        Check.same("and as it was read", valueOfRead(d, 2), lost);
+        Check.same("mended and made anew", Check.flagAt(d, 0), 'r');
+        Check.same("mended", Check.wordAt(d, 0), 100);
+        Check.same("poison moves", Check.flagAt(d, 1), 'p');
+        Check.same("with its word", Check.wordAt(d, 1), 101);
+        Check.same("a lost word is poisoned", Check.flagAt(d, 2), 'p');
+        Check.same("and as it was read", Check.wordAt(d, 2), lost);
         Check.same("moving is no reading", d.mended() * 10 + d.lost(), 3);
     }
 }

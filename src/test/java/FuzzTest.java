@@ -29,6 +29,30 @@ final class FuzzTest {
         }
     }
 
+    /** One object gets all calls, the other one those alone that were not refused. */
+    static void refusedCallsChangeNothing() {
+        for (int seed = 0; seed < 150; seed++) {
+            Random random = new Random(seed);
+            Dramwright all = new Dramwright();
+            Dramwright taken = new Dramwright();
+            int refused = 0;
+            for (int i = 0; i < CALLS - 10; i++) {
+                int which = random.nextInt(60);
+                long seedOfCall = random.nextLong();
+                try {
+                    call(all, new Random(seedOfCall), which);
+                } catch (RuntimeException e) {
+                    refused++;
+                    continue;
+                }
+                call(taken, new Random(seedOfCall), which);
+            }
+            Check.isTrue("some were refused, seed " + seed, refused > 20);
+            Check.same("what is seen, seed " + seed, Twins.seen(all), Twins.seen(taken));
+            Check.same("what comes of it, seed " + seed, Twins.aftermath(all), Twins.aftermath(taken));
+        }
+    }
+
     private static void thrownByTheClass(int seed, RuntimeException e) {
         Check.same("no text of the machine, seed " + seed, e.getMessage(), null);
         Check.same("seed " + seed, e.getStackTrace()[0].getClassName(), "Dramwright");

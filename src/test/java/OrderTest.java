@@ -6,30 +6,25 @@ final class OrderTest {
     static void olderOnesGoFirst() {
         Dramwright d = new Dramwright();
         d.read(3, Check.at(0, 0, 0, 0));
-        d.read(0, Check.at(0, 0, 1, 0));
-        d.finish(300);
+        Check.finishedRead(d, 0, Check.at(0, 0, 1, 0));
         Check.isTrue("the older one", d.doneAt(0) < d.doneAt(1));
     }
 
     static void openRowsGoAheadOfPriority() {
         Dramwright d = new Dramwright();
         d.master(1, 3, 1);
-        d.read(0, Check.at(0, 0, 0, 0));
-        d.finish(300);
+        Check.finishedRead(d, 0, Check.at(0, 0, 0, 0));
         d.read(1, Check.at(0, 0, 1, 0));
-        d.read(0, Check.at(0, 0, 0, 1));
-        d.finish(300);
+        Check.finishedRead(d, 0, Check.at(0, 0, 0, 1));
         Check.isTrue("the open row", d.doneAt(2) < d.doneAt(1));
     }
 
     static void priorityGoesAheadOfQuotients() {
         Dramwright d = new Dramwright();
-        d.read(1, Check.at(0, 3, 0, 0));
-        d.finish(300);
+        Check.finishedRead(d, 1, Check.at(0, 3, 0, 0));
         d.master(1, 1, 1);
         d.read(0, Check.at(0, 0, 0, 0));
-        d.read(1, Check.at(0, 0, 1, 0));
-        d.finish(300);
+        Check.finishedRead(d, 1, Check.at(0, 0, 1, 0));
         Check.isTrue("the greater priority", d.doneAt(2) < d.doneAt(1));
     }
 
@@ -38,30 +33,23 @@ final class OrderTest {
         d.master(0, 0, 9);
         d.master(1, 0, 8);
         for (int i = 0; i < 9; i++) {
-            d.read(0, Check.at(0, 3, 0, i));
-            d.finish(300);
+            Check.finishedRead(d, 0, Check.at(0, 3, 0, i));
         }
         for (int i = 0; i < 8; i++) {
-            d.read(1, Check.at(0, 3, 0, i));
-            d.finish(300);
+            Check.finishedRead(d, 1, Check.at(0, 3, 0, i));
         }
         d.read(1, Check.at(0, 0, 0, 0));
-        d.read(0, Check.at(0, 0, 1, 0));
-        d.finish(300);
+        Check.finishedRead(d, 0, Check.at(0, 0, 1, 0));
         Check.isTrue("9 by 9 is 8 by 8, so the older one", d.doneAt(17) < d.doneAt(18));
         d.read(0, Check.at(0, 1, 0, 0));
-        d.read(1, Check.at(0, 1, 1, 0));
-        d.finish(300);
+        Check.finishedRead(d, 1, Check.at(0, 1, 1, 0));
         Check.isTrue("10 by 9 is less than 9 by 8", d.doneAt(19) < d.doneAt(20));
         d.read(0, Check.at(0, 2, 0, 0));
-        d.read(1, Check.at(0, 2, 1, 0));
-        d.finish(300);
+        Check.finishedRead(d, 1, Check.at(0, 2, 1, 0));
         Check.isTrue("11 by 9 is less than 10 by 8", d.doneAt(21) < d.doneAt(22));
-        d.read(0, Check.at(1, 2, 0, 0));
-        d.finish(300);
+        Check.finishedRead(d, 0, Check.at(1, 2, 0, 0));
         d.read(0, Check.at(1, 1, 0, 0));
-        d.read(1, Check.at(1, 1, 1, 0));
-        d.finish(300);
+        Check.finishedRead(d, 1, Check.at(1, 1, 1, 0));
         Check.isTrue("13 by 9 is more than 11 by 8", d.doneAt(25) < d.doneAt(24));
     }
 
@@ -82,8 +70,7 @@ final class OrderTest {
     static void urgentOnesShutARowThatIsWanted() {
         Dramwright d = new Dramwright();
         d.policy('b', 20);
-        d.read(0, Check.at(0, 0, 0, 0));
-        d.finish(100);
+        Check.finishedRead(d, 0, Check.at(0, 0, 0, 0));
         d.read(0, Check.at(0, 0, 1, 0));
         for (int i = 0; i < 10; i++) {
             d.read(0, Check.at(0, 0, 0, i));
@@ -99,8 +86,7 @@ final class OrderTest {
 
     static void rowsThatAreWantedStayOpen() {
         Dramwright d = new Dramwright();
-        d.read(0, Check.at(0, 0, 0, 0));
-        d.finish(100);
+        Check.finishedRead(d, 0, Check.at(0, 0, 0, 0));
         d.master(1, 3, 1);
         d.read(1, Check.at(0, 0, 1, 0));
         d.read(0, Check.at(0, 0, 0, 1));
@@ -114,8 +100,7 @@ final class OrderTest {
         d.distance('C', 1);
         d.distance('K', 1);
         d.distance('H', 40);
-        d.read(0, Check.at(0, 0, 0, 0));
-        d.finish(100);
+        Check.finishedRead(d, 0, Check.at(0, 0, 0, 0));
         return d;
     }
 
@@ -170,8 +155,7 @@ final class OrderTest {
         d.write(0, 0, 0x11, 1, false);
         d.read(0, 0);
         d.write(0, 0, 0x2200, 2, false);
-        d.read(0, 0);
-        d.finish(300);
+        Check.finishedRead(d, 0, 0);
         Check.same("behind the first write", d.valueOf(1), 0x11);
         Check.same("behind both", d.valueOf(3), 0x2211);
         Check.isTrue("consistent", d.isConsistent());

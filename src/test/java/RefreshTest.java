@@ -75,8 +75,7 @@ final class RefreshTest {
         Dramwright d = new Dramwright();
         d.read(0, 0);
         d.read(0, Check.at(1, 2, 5, 0));
-        d.read(0, Check.at(1, 0, 5, 0));
-        d.finish(100);
+        Check.finishedRead(d, 0, Check.at(1, 0, 5, 0));
         Check.same("counted", d.opened(0, 0, 0) + d.opened(1, 2, 5) + d.opened(1, 0, 5), 3);
         d.policy('a', 1);
         d.go(5);
@@ -164,14 +163,11 @@ final class RefreshTest {
     static void guardedRowsGoAheadOfRequests() {
         Dramwright d = new Dramwright();
         d.policy('h', 2);
-        d.read(0, Check.at(0, 0, 5, 0));
-        d.finish(100);
-        d.read(0, Check.at(0, 0, 20, 0));
-        d.finish(100);
+        Check.finishedRead(d, 0, Check.at(0, 0, 5, 0));
+        Check.finishedRead(d, 0, Check.at(0, 0, 20, 0));
         int before = d.commands();
         d.read(0, Check.at(0, 0, 5, 0));
-        d.read(0, Check.at(0, 0, 25, 0));
-        d.finish(300);
+        Check.finishedRead(d, 0, Check.at(0, 0, 25, 0));
         String trace = Check.trace(d, before);
         Check.isTrue("4, then 6, then 25: " + trace,
             trace.indexOf("a00:4") < trace.indexOf("a00:6") && trace.indexOf("a00:6") < trace.indexOf("a00:25")
@@ -183,8 +179,7 @@ final class RefreshTest {
         Dramwright d = new Dramwright();
         d.policy('h', 2);
         for (int row : rows) {
-            d.read(0, Check.at(0, 2, row, 0));
-            d.finish(100);
+            Check.finishedRead(d, 0, Check.at(0, 2, row, 0));
         }
         return d;
     }
@@ -201,8 +196,7 @@ final class RefreshTest {
 
     static void noRowIsGuardedTwiceAtOnce() {
         Dramwright d = openInTurn(9, 11, 10);
-        d.read(0, Check.at(0, 2, 25, 0));
-        d.finish(100);
+        Check.finishedRead(d, 0, Check.at(0, 2, 25, 0));
         d.read(0, Check.at(0, 2, 10, 0));
         int before = d.commands();
         for (int cycle = 0; cycle < 100 && d.openRow(0, 2) != 11; cycle++) {
@@ -241,8 +235,7 @@ final class RefreshTest {
         d.rows('c');
         int[] openings = {Check.at(0, 2, 5, 0), Check.at(0, 0, 20, 0), Check.at(0, 2, 5, 0)};
         for (int address : openings) {
-            d.read(0, address);
-            d.finish(100);
+            Check.finishedRead(d, 0, address);
             d.go(9);
         }
         d.go(60);
@@ -269,10 +262,8 @@ final class RefreshTest {
     static void guardingIsDoneByAnyOpening() {
         Dramwright d = new Dramwright();
         d.policy('h', 2);
-        d.read(0, Check.at(0, 0, 5, 0));
-        d.finish(100);
-        d.read(0, Check.at(0, 0, 20, 0));
-        d.finish(100);
+        Check.finishedRead(d, 0, Check.at(0, 0, 5, 0));
+        Check.finishedRead(d, 0, Check.at(0, 0, 20, 0));
         d.policy('i', 50);
         d.read(0, Check.at(0, 0, 5, 0));
         d.go(5);

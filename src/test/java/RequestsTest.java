@@ -91,17 +91,14 @@ final class RequestsTest {
 
     static void promise12Masks() {
         Dramwright d = new Dramwright();
-        d.write(0, 9, 0x11223344, 15, false);
-        d.finish(100);
+        Check.finishedWrite(d, 0, 9, 0x11223344);
         d.write(0, 9, 0xAABBCCDD, 0b0101, false);
         d.finish(100);
-        d.read(0, 9);
-        d.finish(100);
+        Check.finishedRead(d, 0, 9);
         Check.same("bytes 0 and 2", d.valueOf(2), 0x11BB33DD);
         d.write(0, 9, 0xAABBCCDD, 0b1000, false);
         d.finish(100);
-        d.read(0, 9);
-        d.finish(100);
+        Check.finishedRead(d, 0, 9);
         Check.same("byte 3", d.valueOf(4), 0xAABB33DD);
         Check.isTrue("consistent", d.isConsistent());
     }
@@ -112,20 +109,15 @@ final class RequestsTest {
         d.finish(100);
         d.write(0, 9, 0, 2, false);
         d.finish(100);
-        d.read(0, 9);
-        d.finish(100);
+        Check.finishedRead(d, 0, 9);
         Check.same("a poisoned word stays so", d.flagOf(2), 'p');
-        d.write(0, 9, 8, 15, false);
-        d.finish(100);
+        Check.finishedWrite(d, 0, 9, 8);
         d.write(0, 9, 1, 1, true);
         d.finish(100);
-        d.read(0, 9);
-        d.finish(100);
+        Check.finishedRead(d, 0, 9);
         Check.same("a write brings it", d.flagOf(5), 'p');
-        d.write(0, 9, 3, 15, false);
-        d.finish(100);
-        d.read(0, 9);
-        d.finish(100);
+        Check.finishedWrite(d, 0, 9, 3);
+        Check.finishedRead(d, 0, 9);
         Check.same("a whole write takes it away", d.flagOf(7), 'r');
     }
 
@@ -138,8 +130,7 @@ final class RequestsTest {
         d.write(0, 1, 0x100, 2, false);
         d.finish(100);
         d.read(0, 0);
-        d.read(0, 1);
-        d.finish(100);
+        Check.finishedRead(d, 0, 1);
         Check.same("of a lost word it is poisoned", d.flagOf(2), 'p');
         Check.same("as it is read", d.valueOf(2), 0x103);
         Check.same("of a mended word it is right", d.flagOf(3), 'r');
@@ -241,16 +232,14 @@ final class RequestsTest {
         d.finish(100);
         d.flip(0, 0, 0, 2, 20);
         d.flip(0, 0, 0, 2, 21);
-        d.read(0, 2);
-        d.finish(100);
+        Check.finishedRead(d, 0, 2);
         Check.same("lost goes ahead of poisoned", d.flagOf(9), 'l');
     }
 
     static void promise18DoneAt() {
         Dramwright d = new Dramwright();
         d.go(7);
-        d.write(0, 0, 5, 15, false);
-        d.finish(100);
+        Check.finishedWrite(d, 0, 0, 5);
         Check.same("a 4 w 3 data 2", d.doneAt(0), 16L);
         d.write(0, 0, 6, 15, false);
         d.read(0, 0);

@@ -57,8 +57,7 @@ final class SettingsTest {
         d.distance('A', 10);
         d.distance('L', 7);
         d.distance('N', 5);
-        d.read(0, 0);
-        d.finish(50);
+        Check.finishedRead(d, 0, 0);
         Check.same("trace", Check.trace(d), "a00:0@0 r00:0@10");
         Check.same("done", d.doneAt(0), 22L);
     }
@@ -241,23 +240,19 @@ final class SettingsTest {
 
     static void promise8CodeMakesCodesAnew() {
         Dramwright d = new Dramwright();
-        d.write(0, 0, 0x12345678, 15, false);
-        d.finish(50);
+        Check.finishedWrite(d, 0, 0, 0x12345678);
         d.code('c');
-        d.read(0, 0);
-        d.finish(50);
+        Check.finishedRead(d, 0, 0);
         Check.same("right by the new code", d.flagOf(1), 'r');
         Check.same("the word", d.valueOf(1), 0x12345678);
         d.flip(0, 0, 0, 0, 4);
         d.flip(0, 0, 0, 0, 7);
-        d.read(0, 0);
-        d.finish(50);
+        Check.finishedRead(d, 0, 0);
         Check.same("a whole chip is mended", d.flagOf(2), 'm');
         Check.same("the word", d.valueOf(2), 0x12345678);
         d.code('n');
         d.flip(0, 0, 0, 0, 0);
-        d.read(0, 0);
-        d.finish(50);
+        Check.finishedRead(d, 0, 0);
         Check.same("without a code it is right", d.flagOf(3), 'r');
     }
 
@@ -282,8 +277,7 @@ final class SettingsTest {
         Dramwright d = new Dramwright();
         d.slow(true);
         d.read(0, Check.at(0, 0, 0, 0));
-        d.read(0, Check.at(0, 1, 0, 0));
-        d.finish(50);
+        Check.finishedRead(d, 0, Check.at(0, 1, 0, 0));
         Check.same("A 4 counts 2", Check.trace(d), "a00:0@0 r00:0@2 a01:0@3 r01:0@5");
         Check.same("judged by it, too", d.judge('a', 0, 0, 1), '-');
         Check.same("judged by it, too", d.judge('a', 0, 1, 1), 'E');
@@ -297,12 +291,10 @@ final class SettingsTest {
         Check.illegal("-1", () -> d.warmth(-1));
         Check.illegal("100", () -> d.warmth(100));
         Check.same("unchanged", d.warmth(49), 99);
-        d.read(0, 0);
-        d.finish(50);
+        Check.finishedRead(d, 0, 0);
         Check.same("at 49 the eye begins at 8", d.flagOf(0), 'r');
         d.warmth(50);
-        d.read(0, 0);
-        d.finish(50);
+        Check.finishedRead(d, 0, 0);
         Check.same("at 50 it begins at 9", d.flagOf(1), 'm');
         Check.same("mended", d.valueOf(1), 0);
     }

@@ -129,7 +129,7 @@ final class Twins {
     }
 
     /** Asks for what only shows by telling something, lets the object go on, and tells what came of it. */
-    private static String aftermath(Dramwright d) {
+    static String aftermath(Dramwright d) {
         StringBuilder text = new StringBuilder();
         for (char which = 'A'; which <= 'S'; which++) {
             char distance = which;
