@@ -1115,8 +1115,10 @@ public final class Dramwright {
             isPoisoned[cell] = isPoison;
         }
 
+        /** Stores a word anew as it was mended; its poison stays. */
         void mendStored(int cell, int word) {
-            store(cell, word, isPoisoned[cell]);
+            data[cell] = word;
+            codeBits[cell] = codes.make(codeKind, word);
         }
 
         void changeCode(char kind) {

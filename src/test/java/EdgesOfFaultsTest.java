@@ -260,6 +260,40 @@ final class EdgesOfFaultsTest {
         }
     }
 
+    static void aChangeOfTheCodeMakesTheCodesOfAllWordsAnewByWhatIsRead() {
+        int[][] words = {{0, 0, 0, 0}, {0, 3, 31, 15}, {1, 0, 32, 0}, {1, 3, 33, 15}};
+        for (int[] at : words) {
+            Dramwright d = new Dramwright();
+            d.flip(at[0], at[1], at[2], at[3], 0);
+            d.flip(at[0], at[1], at[2], at[3], 1);
+            d.code('c');
+            StringBuilder code = new StringBuilder();
+            for (int bit = 39; bit >= 32; bit--) {
+                code.append(1 - d.flip(at[0], at[1], at[2], at[3], bit));
+            }
+            Check.same("3 was lost, and read as it is: a digit 3 of the chip 0", code.toString(), "00110011");
+        }
+        Dramwright d = new Dramwright();
+        Check.finishedWrite(d, 0, 0, 0x50);
+        d.flip(0, 0, 0, 0, 31);
+        d.code('c');
+        Check.same("the code of the word as it was mended", Check.flagAt(d, 0), 'm');
+        Check.same("mends it again", Check.wordAt(d, 0), 0x50);
+        d.code('n');
+        d.flip(0, 0, 0, 0, 31);
+        Check.same("the bit is stored as it was turned, and now turned back", Check.wordAt(d, 0), 0x50);
+    }
+
+    static void theCodeThatHoldsIsNoChange() {
+        Dramwright d = new Dramwright();
+        d.flip(0, 0, 0, 0, 32);
+        d.flip(0, 0, 0, 1, 0);
+        d.flip(0, 0, 0, 1, 1);
+        d.code('s');
+        Check.same("a code bit is still wrong", Check.flagAt(d, 0), 'm');
+        Check.same("a lost word is still lost", Check.flagAt(d, 1), 'l');
+    }
+
     static void aBitFadesWhenMoreCyclesPassThanItBears() {
         int[][] cases = {{20, 60, 60, 1}, {20, 60, 61, 0}, {49, 60, 60, 1}, {49, 60, 61, 0}, {50, 60, 30, 1},
             {50, 60, 31, 0}, {99, 60, 30, 1}, {99, 60, 31, 0}, {50, 61, 30, 1}, {50, 61, 31, 0}, {0, 1, 1, 1}, {0, 1, 2, 0},
