@@ -1,12 +1,13 @@
 import java.lang.reflect.InvocationTargetException;
 import java.lang.reflect.Method;
 import java.lang.reflect.Modifier;
-import java.util.Arrays;
+import java.util.ArrayList;
 import java.util.Comparator;
+import java.util.List;
 
 /** Runs each static method without arguments, not private, of the test classes as one test. */
 public final class AllTests {
-    private static final Class<?>[] CLASSES = {
+    static final Class<?>[] CLASSES = {
         FaceTest.class, SettingsTest.class, RequestsTest.class, ChipsTest.class, FaultsTest.class,
         AccountsTest.class, OrderTest.class, RefreshTest.class, CodesTest.class, RulesTest.class, FuzzTest.class,
         EdgesOfSettingsTest.class, EdgesOfRequestsTest.class, EdgesOfChipsTest.class,
@@ -22,17 +23,8 @@ public final class AllTests {
         int passed = 0;
         int failed = 0;
         for (Class<?> tests : CLASSES) {
-            Method[] methods = tests.getDeclaredMethods();
-            Arrays.sort(methods, Comparator.comparing(Method::getName));
-            for (Method method : methods) {
-                boolean isTest = Modifier.isStatic(method.getModifiers())
-                    && !Modifier.isPrivate(method.getModifiers())
-                    && !method.isSynthetic()
-                    && method.getParameterCount() == 0;
-                if (!isTest) {
-                    continue;
-                }
-                if (passes(method)) {
+            for (Method test : testsOf(tests)) {
+                if (passes(test)) {
                     passed++;
                 } else {
                     failed++;
@@ -43,6 +35,22 @@ public final class AllTests {
         if (failed > 0 || passed == 0) {
             System.exit(1);
         }
+    }
+
+    /** The tests of a class, by their names. */
+    static List<Method> testsOf(Class<?> tests) {
+        List<Method> found = new ArrayList<>();
+        for (Method method : tests.getDeclaredMethods()) {
+            boolean isTest = Modifier.isStatic(method.getModifiers())
+                && !Modifier.isPrivate(method.getModifiers())
+                && !method.isSynthetic()
+                && method.getParameterCount() == 0;
+            if (isTest) {
+                found.add(method);
+            }
+        }
+        found.sort(Comparator.comparing(Method::getName));
+        return found;
     }
 
     private static boolean passes(Method method) throws IllegalAccessException {

@@ -511,6 +511,32 @@ final class EdgesOfRefreshTest {
         Check.same("p of each, then t", trace, "p00 p01 p02 p03 t0");
     }
 
+    /** Opens the banks 3, 1 and 0 of the rank 0, the last one so late that C still holds it for long. */
+    private static Dramwright withBankZeroOpenedLast(int till) {
+        Dramwright d = new Dramwright();
+        d.distance('C', 40);
+        d.policy('i', 50);
+        Check.passTill(d, till - 50);
+        d.read(0, Check.at(0, 3, 0, 0));
+        d.read(0, Check.at(0, 1, 0, 0));
+        Check.passTill(d, till - 10);
+        d.read(0, Check.at(0, 0, 0, 0));
+        Check.passTill(d, till);
+        return d;
+    }
+
+    static void theLowestOpenBankIsTheOneThatCanBeShut() {
+        Dramwright t = withBankZeroOpenedLast(100);
+        t.train(0);
+        int before = t.commands();
+        t.go(40);
+        Check.same("for training", Check.trace(t, before), "p01@100 p03@101 p00@130 t0@134");
+        Dramwright f = withBankZeroOpenedLast(400);
+        before = f.commands();
+        f.go(40);
+        Check.same("for refresh", Check.trace(f, before), "p01@400 p03@401 f1@402 p00@430 f0@434");
+    }
+
     static void policyLShutsAtTheNumber2AndLeavesOpenAt1() {
         Dramwright d = new Dramwright();
         d.rows('l');

@@ -125,6 +125,26 @@ final class FaceTest {
         }
     }
 
+    /** The table of boundary cases names no test that is not there, and leaves out none of those for edges. */
+    static void tableOfEdgesIsWhole() throws IOException {
+        Set<String> named = new TreeSet<>();
+        Matcher matcher = Pattern.compile("(\\w+Test)\\.(\\w+)").matcher(Files.readString(Path.of("src/test/EDGES.md")));
+        while (matcher.find()) {
+            named.add(matcher.group());
+        }
+        Set<String> there = new TreeSet<>();
+        for (Class<?> tests : AllTests.CLASSES) {
+            for (Method test : AllTests.testsOf(tests)) {
+                String name = tests.getSimpleName() + "." + test.getName();
+                there.add(name);
+                Check.isTrue("the table has " + name, named.contains(name) || !name.startsWith("EdgesOf"));
+            }
+        }
+        for (String name : named) {
+            Check.isTrue("there is " + name, there.contains(name));
+        }
+    }
+
     private static void keepsLimits(Class<?> one, Set<String> publicNames) {
         int fields = 0;
         for (Field field : one.getDeclaredFields()) {
