@@ -5,7 +5,10 @@ import java.util.ArrayList;
 import java.util.Comparator;
 import java.util.List;
 
-/** Runs each static method without arguments, not private, of the test classes as one test. */
+/**
+ * Runs each static method without arguments, not private, of the test classes as one test; with arguments, those
+ * tests alone whose names, such as OrderTest.olderOnesGoFirst, begin as one of the arguments does.
+ */
 public final class AllTests {
     static final Class<?>[] CLASSES = {
         FaceTest.class, SettingsTest.class, RequestsTest.class, ChipsTest.class, FaultsTest.class,
@@ -13,7 +16,7 @@ public final class AllTests {
         EdgesOfSettingsTest.class, EdgesOfRequestsTest.class, EdgesOfChipsTest.class,
         EdgesOfFaultsTest.class, EdgesOfAccountsTest.class,
         EdgesOfPlacesTest.class, EdgesOfDistancesTest.class, EdgesOfOrderTest.class,
-        EdgesOfRefreshTest.class,
+        EdgesOfRefreshTest.class, ReadingsTest.class, LanguageTest.class, TablesTest.class,
     };
 
     private AllTests() {
@@ -24,6 +27,9 @@ public final class AllTests {
         int failed = 0;
         for (Class<?> tests : CLASSES) {
             for (Method test : testsOf(tests)) {
+                if (!isAsked(test, args)) {
+                    continue;
+                }
                 if (passes(test)) {
                     passed++;
                 } else {
@@ -35,6 +41,19 @@ public final class AllTests {
         if (failed > 0 || passed == 0) {
             System.exit(1);
         }
+    }
+
+    private static boolean isAsked(Method test, String[] asked) {
+        for (String beginning : asked) {
+            if (nameOf(test).startsWith(beginning)) {
+                return true;
+            }
+        }
+        return asked.length == 0;
+    }
+
+    static String nameOf(Method test) {
+        return test.getDeclaringClass().getSimpleName() + "." + test.getName();
     }
 
     /** The tests of a class, by their names. */
@@ -60,7 +79,7 @@ public final class AllTests {
             return true;
         } catch (InvocationTargetException e) {
             Throwable cause = e.getCause();
-            System.out.println(method.getDeclaringClass().getName() + "." + method.getName() + ": " + cause);
+            System.out.println(nameOf(method) + ": " + cause);
             if (!(cause instanceof AssertionError)) {
                 cause.printStackTrace(System.out);
             }
