@@ -16,7 +16,8 @@ public final class AllTests {
         EdgesOfSettingsTest.class, EdgesOfRequestsTest.class, EdgesOfChipsTest.class,
         EdgesOfFaultsTest.class, EdgesOfAccountsTest.class,
         EdgesOfPlacesTest.class, EdgesOfDistancesTest.class, EdgesOfOrderTest.class,
-        EdgesOfRefreshTest.class, ReadingsTest.class, LanguageTest.class, TablesTest.class,
+        EdgesOfRefreshTest.class, ReadingsTest.class, LanguageTest.class, ReadmeTest.class,
+        TablesTest.class,
     };
 
     private AllTests() {

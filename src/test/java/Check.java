@@ -1,4 +1,5 @@
 import java.util.Objects;
+import java.util.function.BooleanSupplier;
 
 /** What the tests share: comparisons that fail with a text, and short names for addresses and traces. */
 final class Check {
@@ -113,6 +114,14 @@ final class Check {
     static void pass(Dramwright d, int cycles) {
         for (int left = cycles; left > 0; left -= 150) {
             d.go(Math.min(left, 150));
+        }
+    }
+
+    /** Lets cycles pass, one by one, as long as something holds; it must end. */
+    static void goWhile(Dramwright d, BooleanSupplier holds) {
+        for (int cycles = 0; holds.getAsBoolean(); cycles++) {
+            isTrue("it ends in " + cycles + " cycles", cycles < 1000);
+            d.go(1);
         }
     }
 

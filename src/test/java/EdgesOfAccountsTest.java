@@ -19,6 +19,13 @@ final class EdgesOfAccountsTest {
         Check.same("a second open bank of a rank costs no more", d.energy() - before, 2 * (10L + 3 + 3));
     }
 
+    static void energyOfManyCycles() {
+        Dramwright d = new Dramwright();
+        d.policy('i', 2000);
+        Check.pass(d, 40000);
+        Check.same("4 in each cycle, and 40 for each f", d.energy(), 160000L + 40 * d.commands());
+    }
+
     static void energyInTheCycleOfPAndAtRest() {
         Dramwright d = new Dramwright();
         Check.finishedRead(d, 0, 0);
@@ -327,6 +334,8 @@ final class EdgesOfAccountsTest {
         Check.same("of a poisoned word, too", d.flip(0, 0, 0, 1, 31), 1);
         d.flip(0, 0, 0, 1, 31);
         Check.same("a lost one is left", d.flip(0, 0, 0, 2, 31), 0);
+        Check.same("as it was flipped", d.flip(0, 0, 0, 2, 31), 1);
+        Check.same("with its code, so that it is lost again", Check.flagAt(d, 2), 'l');
         Check.same("a code bit", d.flip(0, 0, 0, 3, 38), 1);
         int read = Check.finishedRead(d, 0, 1);
         Check.same("the poison stays", d.flagOf(read), 'p');

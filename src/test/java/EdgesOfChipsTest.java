@@ -157,14 +157,11 @@ final class EdgesOfChipsTest {
         d.read(0, Check.at(0, 0, 5, 0));
         d.go(1);
         Check.same("two", d.guarded(), 2);
-        while (d.opened(0, 0, 4) == 0) {
-            Check.same("two until the a of the first one", d.guarded(), 2);
-            d.go(1);
-        }
-        while (d.opened(0, 0, 6) == 0) {
-            Check.same("one until the a of the second one", d.guarded(), 1);
-            d.go(1);
-        }
+        Check.goWhile(d, () -> d.guarded() == 2);
+        Check.same("two until the a of the first one", Check.trace(d).indexOf("a00:4"), Check.trace(d).lastIndexOf("a"));
+        Check.same("one then", d.guarded(), 1);
+        Check.goWhile(d, () -> d.guarded() == 1);
+        Check.same("until the a of the second one", Check.trace(d).indexOf("a00:6"), Check.trace(d).lastIndexOf("a"));
         Check.same("none", d.guarded(), 0);
     }
 

@@ -72,6 +72,18 @@ final class EdgesOfFaultsTest {
         Twins.badState("the 21st, elsewhere", EdgesOfFaultsTest::stickTwenty, d -> d.stick(1, 3, 33, 15, 39, true));
     }
 
+    static void twentyBitsStickWhileTwentyFade() {
+        Dramwright d = new Dramwright();
+        for (int i = 0; i < 20; i++) {
+            Check.same("fades", d.fade(0, 0, 0, 0, i, 9999), i + 1);
+        }
+        for (int i = 0; i < 20; i++) {
+            Check.same("sticks", d.stick(0, 0, 0, 0, i, false), i + 1);
+        }
+        Check.badState("the 21st that fades", () -> d.fade(0, 0, 0, 0, 20, 9999));
+        Check.badState("the 21st that sticks", () -> d.stick(0, 0, 0, 0, 20, false));
+    }
+
     static void stickRefusesABitThatSticks() {
         Twins.illegal("it sticks", Twins::busy, d -> d.stick(0, 0, 5, 1, 7, true));
         Twins.illegal("at the other value, too", Twins::busy, d -> d.stick(0, 0, 5, 1, 7, false));
@@ -326,7 +338,9 @@ final class EdgesOfFaultsTest {
     static void eyeTakesRanks0And1() {
         Twins.outOfBounds("-1", Twins::busy, d -> d.eye(-1, 4, 8));
         Twins.outOfBounds("2", Twins::busy, d -> d.eye(2, 4, 8));
-        Twins.outOfBounds("listed first", Twins::busy, d -> d.eye(2, 21, 0));
+        for (int[] eye : new int[][] {{21, 8}, {-1, 8}, {4, 0}, {4, 17}}) {
+            Twins.outOfBounds("listed first, ahead of " + eye[0] + " and " + eye[1], Twins::busy, d -> d.eye(2, eye[0], eye[1]));
+        }
         Check.same("0", new Dramwright().eye(0, 4, 8), 8);
         Check.same("1", new Dramwright().eye(1, 4, 8), 8);
     }

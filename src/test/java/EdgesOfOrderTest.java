@@ -252,6 +252,12 @@ final class EdgesOfOrderTest {
         d.read(0, Check.at(0, 0, 0, 1));
         d.go(2);
         Check.same("r of the open row, then a", Check.trace(d, 2), "r00:1@11 a10:0@12");
+        Check.passTill(d, 30);
+        int before = d.commands();
+        d.read(0, Check.at(0, 0, 0, 2));
+        d.read(1, Check.at(1, 1, 0, 0));
+        d.go(2);
+        Check.same("the older one's, too", Check.trace(d, before), "r00:2@30 a11:0@31");
     }
 
     static void prioritiesGoAheadOfQuotientsAndAges() {

@@ -171,6 +171,19 @@ final class EdgesOfPlacesTest {
         Check.same("f in the next one", Check.trace(d), "f0@445");
     }
 
+    static void aRankThatRestsIsNotWokenInTheFiftyCycles() {
+        Dramwright d = new Dramwright();
+        d.policy('r', 1);
+        d.go(10);
+        Check.isTrue("both rest", d.rests(0) && d.rests(1));
+        d.map(1, false);
+        d.train(0);
+        d.go(50);
+        Check.same("the cycles 10 to 59", Check.trace(d), "d0@1 d1@2");
+        d.go(1);
+        Check.same("x behind them", Check.trace(d, 2), "x0@60");
+    }
+
     static void noPatrolComesTillANewMapHasCome() {
         Dramwright d = new Dramwright();
         d.policy('p', 5);

@@ -12,9 +12,7 @@ final class EdgesOfRefreshTest {
         Check.passTill(d, 50 * multiples + 1);
         d.policy('i', 2000);
         d.policy('a', 1);
-        while (d.owed(0) > owed) {
-            d.go(1);
-        }
+        Check.goWhile(d, () -> d.owed(0) > owed);
         d.policy('a', 0);
         Check.same("owed", d.owed(0), owed);
         return d;
@@ -304,10 +302,7 @@ final class EdgesOfRefreshTest {
         d.read(0, Check.at(0, 0, 10, 0));
         int[][] due = {{10, 2}, {9, 3}, {11, 3}, {8, 2}, {10, 1}, {12, 0}};
         for (int[] one : due) {
-            for (int i = 0; i < 30 && d.openRow(0, 0) != one[0]; i++) {
-                d.go(1);
-            }
-            Check.same("this one is open", d.openRow(0, 0), one[0]);
+            Check.goWhile(d, () -> d.openRow(0, 0) != one[0]);
             Check.same("10 tells 9 and 11; 9 tells 8 and 10; 11 tells 12 alone", d.guarded(), one[1]);
         }
     }
@@ -319,10 +314,7 @@ final class EdgesOfRefreshTest {
         d.read(0, Check.at(0, 0, 1, 0));
         int[][] due = {{1, 2}, {0, 2}, {2, 2}, {1, 1}, {3, 0}};
         for (int[] one : due) {
-            for (int i = 0; i < 30 && d.openRow(0, 0) != one[0]; i++) {
-                d.go(1);
-            }
-            Check.same("this one is open", d.openRow(0, 0), one[0]);
+            Check.goWhile(d, () -> d.openRow(0, 0) != one[0]);
             Check.same("1 tells 0 and 2; 0 tells 1; 2 tells 3 alone", d.guarded(), one[1]);
         }
     }
@@ -334,9 +326,7 @@ final class EdgesOfRefreshTest {
         Check.same("counted", d.opened(0, 0, 0) + d.opened(0, 0, 31) + d.opened(0, 0, 32), 3);
         d.policy('g', 1);
         d.policy('a', 1);
-        while (d.command(d.commands() - 1, 't') != 'g') {
-            d.go(1);
-        }
+        Check.goWhile(d, () -> d.command(d.commands() - 1, 't') != 'g');
         Check.same("g of the bank 0", d.opened(0, 0, 0) + d.opened(0, 0, 31) + d.opened(0, 0, 32) + d.opened(0, 0, 8), 0);
     }
 
@@ -383,11 +373,27 @@ final class EdgesOfRefreshTest {
         d.read(0, Check.at(0, 0, 9, 0));
         d.go(1);
         Check.same("8 and 10", d.guarded(), 2);
-        for (int i = 0; i < 100 && d.guarded() == 2; i++) {
-            d.go(1);
-        }
+        Check.goWhile(d, () -> d.guarded() == 2);
         Check.same("8 is open", d.openRow(0, 0), 8);
         Check.same("10 is left", d.guarded(), 1);
+    }
+
+    static void aRowThatIsNotTheFirstToldIsGuardedByItsOpening() {
+        Dramwright d = new Dramwright();
+        d.policy('h', 2);
+        d.distance('I', 60);
+        open(d, 9);
+        Check.finishedRead(d, 0, Check.at(0, 1, 9, 0));
+        d.go(20);
+        d.write(0, Check.at(0, 0, 9, 0), 1, 15, false);
+        d.go(5);
+        Check.same("8 and 10", d.guarded(), 2);
+        d.read(0, Check.at(0, 1, 9, 0));
+        d.go(10);
+        Check.same("those of the other bank, too", d.guarded(), 4);
+        Check.goWhile(d, () -> d.guarded() == 4);
+        Check.same("w lets the first bank wait", d.openRow(0, 0) * 100 + d.openRow(0, 1), 908);
+        Check.same("the third one is done", d.guarded(), 3);
     }
 
     static void aRankRestsBehindAsManyCyclesWithoutACommand() {
@@ -453,7 +459,21 @@ final class EdgesOfRefreshTest {
             d.policy('r', 1);
             d.go(20);
             Check.same("owes " + owed, d.rests(0), owed == 3);
+            int before = d.commands();
+            d.go(100);
+            Check.same("nor does 3 wake it, nor 4 come to rest", d.commands(), before);
         }
+    }
+
+    static void aRankThatRestsGoesOnRestingThoughRestIsTurnedOff() {
+        Dramwright d = new Dramwright();
+        d.policy('r', 1);
+        d.go(3);
+        d.policy('r', 0);
+        Check.isTrue("as 0 is told", d.rests(0) && d.rests(1));
+        d.go(50);
+        Check.isTrue("50 cycles behind", d.rests(0) && d.rests(1));
+        Check.same("no x", Check.trace(d), "d0@1 d1@2");
     }
 
     static void aRankThatRestsWakesWhenItOwes4() {
@@ -495,6 +515,66 @@ final class EdgesOfRefreshTest {
         d.train(0);
         d.go(2);
         Check.same("rank 0 first", Check.trace(d, before), "x0@10 x1@11");
+    }
+
+    /** Brings the rank 1 to owe 32 less than the rank 0, for which requests wait as refresh is drawn ahead. */
+    private static Dramwright owingInRank0() {
+        Dramwright d = new Dramwright();
+        d.policy('i', 50);
+        d.policy('h', 2);
+        d.distance('O', 1);
+        d.policy('a', 1);
+        d.read(0, Check.at(0, 0, 0, 0));
+        d.read(0, Check.at(0, 0, 1, 0));
+        d.go(17);
+        d.policy('a', 0);
+        d.go(10);
+        Check.same("owed", d.owed(0) * 100 + d.owed(1), -32);
+        return d;
+    }
+
+    static void wakingGoesAheadOfRefreshThatIsDue() {
+        Dramwright d = owingInRank0();
+        d.policy('r', 1);
+        Check.passTill(d, 400);
+        Check.isTrue("the rank 1 owes 28 less and rests", d.rests(1) && d.owed(1) == d.owed(0) - 32);
+        int before = d.commands();
+        d.read(0, Check.at(1, 0, 0, 0));
+        d.go(2);
+        Check.same("owes 32 in the cycle 400", Check.trace(d, before), "x1@400 p00@401");
+    }
+
+    static void refreshThatIsDueGoesAheadOfRowsToBeGuarded() {
+        Dramwright d = owingInRank0();
+        Check.finishedRead(d, 0, Check.at(1, 0, 5, 0));
+        Check.finishedRead(d, 0, Check.at(1, 0, 9, 0));
+        Check.passTill(d, 387);
+        d.read(0, Check.at(1, 0, 5, 0));
+        Check.passTill(d, 400);
+        Check.same("4 and 6 of the rank 1", d.guarded(), 2);
+        int before = d.commands();
+        d.go(2);
+        Check.same("both can be issued from 400 on", Check.trace(d, before), "p00@400 p10@401");
+    }
+
+    static void trainingGoesAheadOfRefreshThatIsDrawnAhead() {
+        for (int rank = 0; rank <= 1; rank++) {
+            Dramwright d = new Dramwright();
+            d.policy('a', 1);
+            d.train(rank);
+            d.go(2);
+            Check.same("t, then f of the other rank", Check.trace(d), "t" + rank + "@0 f" + (1 - rank) + "@1");
+        }
+    }
+
+    static void refreshThatIsDrawnAheadGoesAheadOfShuttingByPolicy() {
+        Dramwright d = new Dramwright();
+        Check.finishedRead(d, 0, Check.at(1, 0, 0, 0));
+        Check.passTill(d, 30);
+        d.rows('c');
+        d.policy('a', 1);
+        d.go(2);
+        Check.same("f of the rank 0 ahead of p of the rank 1", Check.trace(d, 2), "f0@30 p10@31");
     }
 
     static void aRankToBeTrainedIsShutFromItsLowestBankOn() {

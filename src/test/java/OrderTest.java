@@ -174,9 +174,7 @@ final class OrderTest {
         d.go(1);
         Check.isTrue("6 are enough", d.isDraining());
         Check.same("writes are looked at", Check.trace(d, 1), "a00:0@1");
-        for (int i = 0; i < 30 && d.isDraining(); i++) {
-            d.go(1);
-        }
+        Check.goWhile(d, d::isDraining);
         Check.same("until 2 wait, as the cycle begins", d.queued(true), 2);
         Check.same("the read waited for it", d.state(5), 'w');
     }

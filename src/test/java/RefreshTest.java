@@ -112,9 +112,7 @@ final class RefreshTest {
         d.finish(300);
         d.policy('a', 1);
         d.policy('g', 1);
-        for (int i = 0; i < 50 && d.owed(0) > -2; i++) {
-            d.go(1);
-        }
+        Check.goWhile(d, () -> d.owed(0) > -2);
         Check.same("g of the banks 0 and 1", d.opened(0, 0, 31) + d.opened(0, 1, 31), 0);
         Check.same("the others go on", d.opened(0, 2, 31) + d.opened(0, 3, 31), 2);
     }
