@@ -348,4 +348,48 @@ final class AccountsTest {
             Check.isTrue("but something was told", d.isConsistent());
         }
     }
+
+    static void promise42EnergyInTheCyclesOfANewMap() {
+        Dramwright d = new Dramwright();
+        Check.finishedRead(d, 0, 0);
+        long before = d.energy();
+        d.map(1, false);
+        d.go(50);
+        Check.same("3 with an open bank and 2 with none", d.energy() - before, 250L);
+    }
+
+    static void promise43WaitsOfTheRankThatRests() {
+        for (int rank = 0; rank < 2; rank++) {
+            Dramwright d = new Dramwright();
+            Check.finishedRead(d, 0, Check.at(1 - rank, 0, 0, 0));
+            d.policy('r', 1);
+            d.go(1);
+            Check.isTrue("one rests, the other one has an open bank", d.rests(rank) && !d.rests(1 - rank));
+            d.read(0, Check.at(rank, 0, 0, 0));
+            d.go(5);
+            Check.same("three cycles of S, then x", d.waits('d'), 3L);
+            Check.same("the fourth one behind d", Check.trace(d, 2), "d" + rank + "@11 x" + rank + "@15");
+        }
+    }
+
+    static void promise43WaitsWithTheSlowClock() {
+        Dramwright d = new Dramwright();
+        d.slow(true);
+        for (int row = 0; row < 2; row++) {
+            d.read(0, Check.at(0, 0, row, 0));
+            d.read(0, Check.at(1, 0, row, 0));
+            d.go(8);
+        }
+        Check.same("each p could be issued at 8", Check.trace(d, 4).substring(0, 11), "p00@8 p10@9");
+        Check.same("in the cycle 0 each a, too", d.waits('q'), 2L);
+    }
+
+    static void promise47HitsOfEachRank() {
+        Dramwright d = new Dramwright();
+        Check.finishedRead(d, 0, Check.at(0, 2, 7, 0));
+        Check.finishedRead(d, 0, Check.at(1, 2, 7, 0));
+        Check.same("the row of the other rank is another one", d.hitShare(), 0f);
+        Check.finishedRead(d, 0, Check.at(1, 2, 7, 1));
+        Check.same("one of three", d.hitShare(), 1f / 3f);
+    }
 }

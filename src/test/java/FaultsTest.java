@@ -451,4 +451,50 @@ final class FaultsTest {
         Check.same("and as it was read", Check.wordAt(d, 2), lost);
         Check.same("moving is no reading", d.mended() * 10 + d.lost(), 3);
     }
+
+    static void promise35FadesEachTime() {
+        Dramwright d = new Dramwright();
+        d.code('n');
+        d.fade(0, 0, 0, 0, 0, 30);
+        for (int times = 0; times < 3; times++) {
+            Check.finishedWrite(d, 0, 0, 1);
+            d.go(60);
+            Check.finishedRead(d, 0, Check.at(0, 0, 1, 0));
+            Check.same("shut and opened anew, time " + times, Check.wordAt(d, 0), 0);
+        }
+    }
+
+    static void promise40PatrolsCount() {
+        Dramwright d = new Dramwright();
+        d.policy('s', 1);
+        for (int column = 0; column < 3; column++) {
+            d.flip(0, 0, 0, column, 4);
+        }
+        d.policy('p', 20);
+        d.go(50);
+        Check.same("those of 20 and 40", d.faults(0, 0, 0) * 10 + d.mended(), 22);
+        Check.same("not yet", d.place(0, 'r'), 0);
+        d.go(20);
+        Check.same("that of 60", d.faults(0, 0, 0), 3);
+        Check.same("so the row is replaced", d.place(0, 'r') * 10 + d.spares(0, 0), 321);
+    }
+
+    static void promise41AWaitingPatrolMeansTheSpareRow() {
+        Dramwright d = new Dramwright();
+        d.policy('s', 1);
+        d.policy('b', 10);
+        d.distance('H', 30);
+        for (int column = 0; column < 3; column++) {
+            d.flip(0, 0, 0, column + 1, 4);
+            d.read(0, column + 1);
+        }
+        d.go(10);
+        d.policy('p', 60);
+        d.go(60);
+        Check.same("one patrol waits", d.queued(false), 1);
+        Check.same("and its row was replaced", d.place(0, 'r'), 32);
+        d.policy('p', 0);
+        d.go(100);
+        Check.same("done, of the spare row", d.patrolled() + " " + Check.trace(d).contains("a00:32"), "1 true");
+    }
 }

@@ -287,4 +287,47 @@ final class OrderTest {
         d.go(100);
         Check.same("trace", Check.trace(d), "a10:0@0 a00:0@1 r10:0@4 r00:0@7 p10@9 p00@10");
     }
+
+    static void anotherRowThatIsOpenIsNotTheirRow() {
+        Dramwright d = new Dramwright();
+        Check.finishedRead(d, 0, Check.at(0, 0, 0, 0));
+        Check.passTill(d, 20);
+        d.read(0, Check.at(0, 1, 0, 0));
+        d.read(0, Check.at(0, 0, 1, 0));
+        d.go(2);
+        Check.same("a of the older one, then p of the younger one", Check.trace(d, 2), "a01:0@20 p00@21");
+    }
+
+    static void policyCShutsRowsWhileWritesAreDrained() {
+        Dramwright d = new Dramwright();
+        d.rows('c');
+        for (int i = 0; i < 6; i++) {
+            d.write(0, i, i, 15, false);
+        }
+        d.finish(300);
+        d.go(10);
+        Check.isTrue("no read waits, so they are drained still", d.isDraining());
+        Check.same("shut", d.openRow(0, 0), -1);
+    }
+
+    static void drainingIsLookedAtInTheCyclesOfANewMap() {
+        Dramwright d = new Dramwright();
+        d.map(1, false);
+        d.go(1);
+        Check.bringWrites(d, 6);
+        d.go(1);
+        Check.isTrue("in the cycle 1, in which nothing is issued", d.isDraining());
+        Check.same("nor was it", d.commands(), 0);
+    }
+
+    static void aRowThatWasOpenLastIsTheSameBehindARefresh() {
+        Dramwright d = new Dramwright();
+        Check.finishedRead(d, 0, Check.at(0, 0, 5, 0));
+        d.policy('a', 1);
+        Check.goWhile(d, () -> d.owed(0) == 0);
+        d.policy('a', 0);
+        Check.same("3 behind the first opening, and shut", d.learned(0, 0) * 10 + d.openRow(0, 0), 29);
+        Check.finishedRead(d, 0, Check.at(0, 0, 5, 0));
+        Check.same("1 less behind p and f", d.learned(0, 0), 2);
+    }
 }

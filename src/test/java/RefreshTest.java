@@ -287,4 +287,50 @@ final class RefreshTest {
         d.go(30);
         Check.same("trace", Check.trace(d), "f0@400 f1@401 a00:0@420 a10:0@421 r00:0@424 r10:0@427");
     }
+
+    static void restIsCountedFromARefreshAndATraining() {
+        for (char letter : "fgt".toCharArray()) {
+            Dramwright d = new Dramwright();
+            d.policy('r', 40);
+            d.policy('g', letter == 'g' ? 1 : 0);
+            d.go(10);
+            if (letter == 't') {
+                d.train(0);
+            } else {
+                d.policy('a', 1);
+            }
+            d.go(1);
+            d.policy('a', 0);
+            Check.passTill(d, 60);
+            Check.same("40 cycles behind it, and 40 behind 0", Check.trace(d),
+                (letter == 'g' ? "g00" : letter + "0") + "@10 d1@40 d0@50");
+        }
+    }
+
+    static void aRowToBeGuardedShutsOneThatIsWanted() {
+        Dramwright d = openInTurn(5, 20);
+        d.read(0, Check.at(0, 2, 5, 0));
+        Check.goWhile(d, () -> d.openRow(0, 2) != 5);
+        int opened = (int) d.cycle() - 1;
+        Check.passTill(d, opened + 9);
+        d.read(0, Check.at(0, 2, 5, 1));
+        int before = d.commands();
+        d.go(1);
+        Check.same("p for the row 4, though a read is looked at for the row 5", Check.trace(d, before), "p02@" + (opened + 9));
+    }
+
+    static void whatIsOwedHasNoBound() {
+        Dramwright d = new Dramwright();
+        d.policy('i', 50);
+        d.distance('O', 99);
+        Check.pass(d, 4001);
+        int[] refreshed = new int[2];
+        for (int i = 0; i < d.commands(); i++) {
+            refreshed[d.command(i, 'k')]++;
+        }
+        for (int rank = 0; rank < 2; rank++) {
+            Check.same("80 times 4, less 4 for each f", d.owed(rank), 320 - 4 * refreshed[rank]);
+            Check.isTrue("far above 32", d.owed(rank) > 100);
+        }
+    }
 }

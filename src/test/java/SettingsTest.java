@@ -298,4 +298,13 @@ final class SettingsTest {
         Check.same("at 50 it begins at 9", d.flagOf(1), 'm');
         Check.same("mended", d.valueOf(1), 0);
     }
+
+    static void promise6AMapMayMixNoMore() {
+        Dramwright d = new Dramwright();
+        int address = Check.at(0, 0, 3, 0);
+        moveTo(d, 0, true);
+        Check.same("3 with the row 3", d.place(address, 'b'), 3);
+        moveTo(d, 0, false);
+        Check.same("0 again", d.place(address, 'b'), 0);
+    }
 }
