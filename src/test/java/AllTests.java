@@ -13,6 +13,7 @@ public final class AllTests {
     static final Class<?>[] CLASSES = {
         FaceTest.class, SettingsTest.class, RequestsTest.class, ChipsTest.class, FaultsTest.class,
         AccountsTest.class, OrderTest.class, RefreshTest.class, CodesTest.class, RulesTest.class, FuzzTest.class,
+        ModelTest.class,
         EdgesOfSettingsTest.class, EdgesOfRequestsTest.class, EdgesOfChipsTest.class,
         EdgesOfFaultsTest.class, EdgesOfAccountsTest.class,
         EdgesOfPlacesTest.class, EdgesOfDistancesTest.class, EdgesOfOrderTest.class,
