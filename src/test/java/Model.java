@@ -4,7 +4,7 @@ import java.util.List;
 import java.util.NoSuchElementException;
 
 /**
- * A second Dramwright, written from the document alone and in its plainest form: it keeps all commands and looks
+ * A second Dramwright, written along the document's sentences and in its plainest form: it keeps all commands and looks
  * through them for each question, mends by trying each change of a word, and sorts what it is to order. It looks at
  * its state, but at no arguments: it is asked only what is in range. Where the words leave a choice, it has the
  * readings that NOTES.md tells.
